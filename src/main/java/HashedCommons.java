@@ -22,6 +22,7 @@ public final class HashedCommons {
     private static final int MACHINES = 3;
     private static final int MOST_JOBS = 30;
     private static final int LINE = 200;
+    private static final int HASH_DIGITS = 16;
 
     /** No document limit: guards the recursions over nodes, which are at most MOST_DEPTH deep. */
     private static final int DEEPEST = 40;
@@ -1081,7 +1082,7 @@ public final class HashedCommons {
         }
 
         private static long mix(long row, long number) {
-            return (Long.rotateLeft(row, 5) ^ number) * ROW_FACTOR;
+            return ((row << 5 | row >>> 59) ^ number) * ROW_FACTOR;
         }
 
         private long rowOf(long row, Definition definition, boolean isPlaceless) {
@@ -1782,7 +1783,12 @@ public final class HashedCommons {
 
         int commonAncestor(int commit, int other) {
             long common = ancestorsOf(commit) & ancestorsOf(other);
-            return common == 0 ? NONE : 63 - Long.numberOfLeadingZeros(common);
+            for (int i = commitsMade - 1; i >= 0; i--) {
+                if ((common >> i & 1) != 0) {
+                    return i;
+                }
+            }
+            return NONE;
         }
 
         int mergeIn(int branch) {
@@ -2733,7 +2739,7 @@ public final class HashedCommons {
             put('#');
             int digits = digitsNeeded(definition);
             for (int i = 0; i < digits; i++) {
-                int digit = (int) (definition.hash >>> 60 - 4 * i & 15);
+                int digit = digitOf(definition.hash, i);
                 put((char) (digit < 10 ? '0' + digit : 'a' + digit - 10));
             }
         }
@@ -2743,11 +2749,22 @@ public final class HashedCommons {
             for (int i = 0; i < codebase.size(); i++) {
                 Definition other = codebase.at(i);
                 if (other != null && other != definition && other.isKept) {
-                    int same = Long.numberOfLeadingZeros(other.hash ^ definition.hash) / 4;
-                    digits = Math.max(digits, Math.min(same + 1, 16));
+                    digits = Math.max(digits, digitsApart(other.hash, definition.hash));
                 }
             }
             return digits;
+        }
+
+        private static int digitsApart(long hash, long other) {
+            int digits = 1;
+            while (digits < HASH_DIGITS && digitOf(hash, digits - 1) == digitOf(other, digits - 1)) {
+                digits++;
+            }
+            return digits;
+        }
+
+        private static int digitOf(long hash, int index) {
+            return (int) (hash >>> 60 - 4 * index & 15);
         }
 
         private void type(int node, Definition in, int depth) {
