@@ -80,7 +80,7 @@ public final class HashedCommons {
 
     // Nodes and staging
 
-    public int node(char kind, int a, int b, int c) {
+    public int node(char kind, int a, int b, int c) throws IllegalArgumentException, IllegalStateException {
         if (!nodes.fits(kind, a, b, c)) {
             throw new IllegalArgumentException("no such kind, or an operand is not as told for it");
         }
@@ -91,7 +91,8 @@ public final class HashedCommons {
         return node;
     }
 
-    public int stage(int name, int type, int term) {
+    public int stage(int name, int type, int term)
+        throws IllegalArgumentException, NoSuchElementException, UnsupportedOperationException, IllegalStateException {
         requireName(name);
         requireNode(type);
         requireNode(term);
@@ -102,7 +103,8 @@ public final class HashedCommons {
         return staging.put(name, false, type, term).stagedCount();
     }
 
-    public int stageData(int name, boolean isUnique, int constructor) {
+    public int stageData(int name, boolean isUnique, int constructor)
+        throws IllegalArgumentException, NoSuchElementException, UnsupportedOperationException, IllegalStateException {
         requireName(name);
         requireNode(constructor);
         if (nodes.sortAt(constructor) != CONSTRUCTOR_SORT) {
@@ -122,7 +124,7 @@ public final class HashedCommons {
         return staged;
     }
 
-    public int define() {
+    public int define() throws IllegalStateException, UnsupportedOperationException {
         if (staging.stagedCount() == 0 || !staging.areNamesFree()) {
             throw new IllegalStateException("nothing is staged, or a name is not free");
         }
@@ -133,7 +135,7 @@ public final class HashedCommons {
         return fresh;
     }
 
-    public int update() {
+    public int update() throws IllegalStateException, UnsupportedOperationException {
         if (staging.stagedCount() == 0 || !staging.haveNamesTheirKind() || patches.isFull()) {
             throw new IllegalStateException("nothing is staged, a name does not suit, or there are too many patches");
         }
@@ -158,7 +160,7 @@ public final class HashedCommons {
         return staging.lookOver();
     }
 
-    public int faultName() {
+    public int faultName() throws NoSuchElementException {
         if (staging.lookOver() == NOTHING) {
             throw new NoSuchElementException("there is no fault");
         }
@@ -169,7 +171,7 @@ public final class HashedCommons {
         return carrier.todoCount();
     }
 
-    public int todoAt(int index) {
+    public int todoAt(int index) throws IndexOutOfBoundsException {
         int name = carrier.todoName(index);
         if (name == NONE) {
             throw new IndexOutOfBoundsException("no such name to do");
@@ -179,7 +181,7 @@ public final class HashedCommons {
 
     // Names and definitions
 
-    public char kindOf(int name) {
+    public char kindOf(int name) throws IllegalArgumentException {
         requireName(name);
         Definition definition = branches.at(name);
         if (definition == null) {
@@ -188,11 +190,11 @@ public final class HashedCommons {
         return definition.isData ? 'd' : 't';
     }
 
-    public long hash(int name) {
+    public long hash(int name) throws IllegalArgumentException, NoSuchElementException {
         return definitionOf(name).hash;
     }
 
-    public long hashAnew(int name) {
+    public long hashAnew(int name) throws IllegalArgumentException, NoSuchElementException {
         Definition definition = definitionOf(name);
         codebase.beginMarks();
         codebase.mark(definition);
@@ -201,7 +203,7 @@ public final class HashedCommons {
         return definition.anew;
     }
 
-    public boolean needs(int name, int other) {
+    public boolean needs(int name, int other) throws IllegalArgumentException, NoSuchElementException {
         requireName(name);
         requireName(other);
         Definition definition = definitionOf(name);
@@ -210,12 +212,12 @@ public final class HashedCommons {
         return codebase.isMarked(wanted);
     }
 
-    public int needed(int name) {
+    public int needed(int name) throws IllegalArgumentException, NoSuchElementException {
         codebase.markAllNeededBy(definitionOf(name));
         return codebase.markedCount();
     }
 
-    public int alias(int name, int other) {
+    public int alias(int name, int other) throws IllegalArgumentException, NoSuchElementException {
         requireName(name);
         requireName(other);
         Definition definition = definitionOf(name);
@@ -223,7 +225,7 @@ public final class HashedCommons {
         return branches.namesOf(definition);
     }
 
-    public int unname(int name) {
+    public int unname(int name) throws IllegalArgumentException, NoSuchElementException {
         Definition definition = definitionOf(name);
         branches.give(name, null);
         return branches.namesOf(definition);
@@ -252,12 +254,12 @@ public final class HashedCommons {
         return patches.patchCount();
     }
 
-    public int patchSize(int patch) {
+    public int patchSize(int patch) throws NoSuchElementException {
         requirePatch(patch);
         return patches.sizeOf(patch);
     }
 
-    public int apply(int patch) {
+    public int apply(int patch) throws NoSuchElementException {
         requirePatch(patch);
         patches.noteChanges(patch);
         for (int name = 0; name < NAMES; name++) {
@@ -277,14 +279,14 @@ public final class HashedCommons {
         return changed;
     }
 
-    public int compose(int patch, int other) {
+    public int compose(int patch, int other) throws NoSuchElementException, IllegalStateException {
         requirePatch(patch);
         requirePatch(other);
         requirePlaceForPatch();
         return patches.addComposed(patch, other);
     }
 
-    public int mergePatches(int patch, int other) {
+    public int mergePatches(int patch, int other) throws NoSuchElementException, IllegalStateException {
         requirePatch(patch);
         requirePatch(other);
         requirePlaceForPatch();
@@ -293,12 +295,12 @@ public final class HashedCommons {
 
     // Branches and commits
 
-    public int commit() {
+    public int commit() throws IllegalStateException {
         requirePlaceForCommit();
         return branches.record(NONE);
     }
 
-    public int branch() {
+    public int branch() throws IllegalStateException {
         int made = branches.addBranch();
         if (made == NONE) {
             throw new IllegalStateException("there are too many branches");
@@ -306,12 +308,12 @@ public final class HashedCommons {
         return made;
     }
 
-    public int goTo(int branch) {
+    public int goTo(int branch) throws NoSuchElementException {
         requireBranch(branch);
         return branches.enter(branch);
     }
 
-    public int merge(int branch) {
+    public int merge(int branch) throws NoSuchElementException, IllegalArgumentException, IllegalStateException {
         requireBranch(branch);
         if (branches.isPresent(branch)) {
             throw new IllegalArgumentException("it is the present branch");
@@ -320,7 +322,7 @@ public final class HashedCommons {
         return branches.mergeIn(branch);
     }
 
-    public int conflictAt(int index) {
+    public int conflictAt(int index) throws IndexOutOfBoundsException {
         int name = branches.conflictName(index);
         if (name == NONE) {
             throw new IndexOutOfBoundsException("no such conflict");
@@ -328,7 +330,7 @@ public final class HashedCommons {
         return name;
     }
 
-    public int ancestor(int commit, int other) {
+    public int ancestor(int commit, int other) throws NoSuchElementException, UnsupportedOperationException {
         if (!branches.hasCommit(commit) || !branches.hasCommit(other)) {
             throw new NoSuchElementException("no such commit");
         }
@@ -343,7 +345,7 @@ public final class HashedCommons {
         return branches.commitCount();
     }
 
-    public int hashIn(int commit, int name) {
+    public int hashIn(int commit, int name) throws NoSuchElementException, IllegalArgumentException {
         if (!branches.hasCommit(commit)) {
             throw new NoSuchElementException("no such commit");
         }
@@ -357,18 +359,19 @@ public final class HashedCommons {
 
     // Working out, tests and jobs
 
-    public char work(int name) {
+    public char work(int name) throws IllegalArgumentException, NoSuchElementException, UnsupportedOperationException {
         return kindOfValue(worker.workOut(termOf(name)));
     }
 
-    public int writeValue(int name) {
+    public int writeValue(int name)
+        throws IllegalArgumentException, NoSuchElementException, UnsupportedOperationException {
         Cell value = worker.workOut(termOf(name));
         writer.clear();
         writer.value(value);
         return writer.lineLength();
     }
 
-    public char test(int name) {
+    public char test(int name) throws IllegalArgumentException, NoSuchElementException, UnsupportedOperationException {
         Definition definition = definitionOf(name);
         if (definition.isData || nodes.kindAt(definition.typeNode) != 'j') {
             throw new UnsupportedOperationException("it is no int");
@@ -385,7 +388,8 @@ public final class HashedCommons {
         return testCount;
     }
 
-    public int job(int machine, int name) {
+    public int job(int machine, int name)
+        throws IllegalArgumentException, NoSuchElementException, UnsupportedOperationException, IllegalStateException {
         requireMachine(machine);
         Definition definition = termOf(name);
         if (isDown(machine) || jobCount >= MOST_JOBS) {
@@ -398,7 +402,7 @@ public final class HashedCommons {
         return jobCount - 1;
     }
 
-    public int goOn(int machine) {
+    public int goOn(int machine) throws IllegalArgumentException, IllegalStateException, NoSuchElementException {
         requireMachine(machine);
         if (isDown(machine)) {
             throw new IllegalStateException("the machine is down");
@@ -419,18 +423,18 @@ public final class HashedCommons {
         return job;
     }
 
-    public char jobState(int job) {
+    public char jobState(int job) throws NoSuchElementException {
         requireJob(job);
         return jobStates[job];
     }
 
-    public char outcome(int job) {
+    public char outcome(int job) throws NoSuchElementException, IllegalStateException {
         requireJob(job);
         requireDone(job);
         return jobDefinitions[job].outcome;
     }
 
-    public int result(int job) {
+    public int result(int job) throws NoSuchElementException, IllegalStateException, UnsupportedOperationException {
         requireJob(job);
         requireDone(job);
         if (jobDefinitions[job].outcome != 'i') {
@@ -439,7 +443,8 @@ public final class HashedCommons {
         return jobDefinitions[job].number;
     }
 
-    public int retry(int job, int machine) {
+    public int retry(int job, int machine)
+        throws NoSuchElementException, IllegalArgumentException, IllegalStateException {
         requireJob(job);
         requireMachine(machine);
         if (jobStates[job] != 'f' || isDown(machine)) {
@@ -450,7 +455,7 @@ public final class HashedCommons {
         return waitingOn(machine);
     }
 
-    public int down(int machine) {
+    public int down(int machine) throws IllegalArgumentException, IllegalStateException {
         requireMachine(machine);
         if (isDown(machine)) {
             throw new IllegalStateException("the machine is down");
@@ -466,14 +471,14 @@ public final class HashedCommons {
         return failing;
     }
 
-    public boolean up(int machine) {
+    public boolean up(int machine) throws IllegalArgumentException {
         requireMachine(machine);
         boolean wasDown = isDown(machine);
         downMachines &= ~(1 << machine);
         return wasDown;
     }
 
-    public int lacking(int machine, int name) {
+    public int lacking(int machine, int name) throws IllegalArgumentException, NoSuchElementException {
         requireMachine(machine);
         markReachable(definitionOf(name));
         return codebase.markedWithout(1 << machine);
@@ -485,21 +490,22 @@ public final class HashedCommons {
 
     // Writing and counting
 
-    public int writeTerm(int name) {
+    public int writeTerm(int name) throws IllegalArgumentException, NoSuchElementException {
         Definition definition = definitionOf(name);
         writer.clear();
         writer.body(definition);
         return writer.lineLength();
     }
 
-    public int writeType(int name) {
+    public int writeType(int name)
+        throws IllegalArgumentException, NoSuchElementException, UnsupportedOperationException {
         Definition definition = termOf(name);
         writer.clear();
         writer.toldType(definition);
         return writer.lineLength();
     }
 
-    public char lineAt(int index) {
+    public char lineAt(int index) throws IndexOutOfBoundsException {
         if (index < 0 || index >= writer.lineLength()) {
             throw new IndexOutOfBoundsException("no such character");
         }
@@ -513,7 +519,7 @@ public final class HashedCommons {
         return codebase.areMarkedSound(checker);
     }
 
-    public float namedShare() {
+    public float namedShare() throws ArithmeticException {
         int all = codebase.keptCount();
         if (all == 0) {
             throw new ArithmeticException("there are no definitions");
@@ -521,7 +527,7 @@ public final class HashedCommons {
         return (float) branches.namedCount() / (float) all;
     }
 
-    public double meanNeeded() {
+    public double meanNeeded() throws ArithmeticException {
         int named = branches.namedCount();
         if (named == 0) {
             throw new ArithmeticException("no definition has a name");
