@@ -174,6 +174,19 @@ public final class BranchesTest extends Check {
         x.goTo(0);
         x.commit();
         due("7 comes of 5", 5, x.ancestor(7, 5));
+        begin("promise 31, a merge ahead of a commit without a parent");
+        x.branch();
+        x.branch();
+        x.commit();
+        x.goTo(1);
+        x.commit();
+        x.merge(0);
+        x.goTo(2);
+        x.commit();
+        due("the first parent", 1, x.ancestor(2, 1));
+        due("the second one", 0, x.ancestor(2, 0));
+        unsupported("apart", () -> x.ancestor(3, 2));
+        unsupported("apart", () -> x.ancestor(1, 3));
     }
 
     private void promise33() {

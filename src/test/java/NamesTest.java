@@ -173,6 +173,11 @@ public final class NamesTest extends Check {
         due("left", 5, x.definitions());
         due("the outcome stays", 1, x.result(0));
         due("sound", true, x.isSound());
+        begin("promise 20, the first name of the first commit");
+        defineInt(A, num(1));
+        x.commit();
+        x.unname(A);
+        due("the commit has it", 0, x.collect());
     }
 
     private void promise20Again() {

@@ -209,6 +209,7 @@ public final class PatchesTest extends Check {
         due("and still itself", 0, x.apply(4));
         due("twice", 6, x.compose(0, 0));
         due("one", 1, x.patchSize(6));
+        promise24Others();
         begin("promise 24, 20 patches");
         defineFunction(A, adder(1));
         for (int i = 0; i < 20; i++) {
@@ -218,6 +219,23 @@ public final class PatchesTest extends Check {
         refused("20", () -> x.compose(0, 1));
         missing("first what is missing", () -> x.mergePatches(20, 0));
         refused("20", () -> x.mergePatches(0, 1));
+    }
+
+    private void promise24Others() {
+        begin("promise 24, the patches that are composed stay as they are");
+        defineFunction(A, adder(1));
+        defineFunction(B, adder(10));
+        int other = x.branch();
+        int third = x.branch();
+        updateFunction(A, adder(2));
+        x.goTo(other);
+        x.stage(B, intToInt(), adder(1));
+        x.update();
+        due("composed", 2, x.compose(0, 1));
+        x.goTo(third);
+        due("b", 1, x.apply(1));
+        due("not further by the first one", row(31, 2, 1, 1, 13, 1, 15, 0, 12, 0, 11, 1), x.hash(B));
+        due("a stays", x.hash(A), x.hash(B));
     }
 
     private void promise25() {

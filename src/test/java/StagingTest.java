@@ -5,12 +5,14 @@ public final class StagingTest extends Check {
         test.promise1();
         test.promise2();
         test.promise2Limits();
+        test.promise2NodeZero();
         test.promise3();
         test.promise4();
         test.promise5();
         test.promise6();
         test.promise6Groups();
         test.promise6Data();
+        test.promise6Again();
         test.promise7();
         test.promise7Names();
         test.promise7Groups();
@@ -175,6 +177,55 @@ public final class StagingTest extends Check {
         }
         refused("node 300", () -> num(1));
         illegal("first the kind", () -> x.node('z', 0, 0, 0));
+    }
+
+    private void promise2NodeZero() {
+        begin("promise 2, the node 0 is a constructor");
+        due("plus", 0, constructors(NO));
+        int chain = 0;
+        for (int i = 1; i < 5; i++) {
+            x.stageData(A, false, chain);
+            due("up to four", '-', x.fault());
+            chain = x.node('+', NO, chain, 0);
+        }
+        x.stageData(A, false, chain);
+        due("five", 'k', x.fault());
+        x.stageData(A, false, 1);
+        x.stage(B, data(A), make(A, 1, NO));
+        x.stage(C, type(), cases(A, ref(B), num(3), num(4)));
+        x.define();
+        due("two constructors", row(30, 0, 2, 0, 0), x.hash(A));
+        due("written", "c0 | c1", written(A));
+        due("the second one", "c1", value(B));
+        due("its branch", "4", value(C));
+        x.stage(D, data(A), make(A, 2, NO));
+        due("no third one", 't', x.fault());
+        begin("promise 2, the node 0 is an argument");
+        num(5);
+        defineData(A, NO, type(), data(A));
+        x.stage(B, data(A), make(A, 1, 0));
+        x.define();
+        due("row", row(31, 3, x.hash(A), 20, x.hash(A), 1, 11, 5), x.hash(B));
+        due("written", "a.c1(5)", written(B));
+        due("value", "c1(5)", value(B));
+        x.stage(C, data(A), make(A, 0, 0));
+        due("one too much", 't', x.fault());
+        x.stage(C, data(A), make(A, 2, 0));
+        due("of another type", 't', x.fault());
+        begin("promise 2, the node 0 is a constructor with what it has");
+        due("m", 0, make(A, 1, NO));
+        defineData(A, NO, NO);
+        x.stage(B, data(A), 0);
+        x.define();
+        due("value", "c1", value(B));
+        due("row", row(31, 3, x.hash(A), 20, x.hash(A), 1), x.hash(B));
+        begin("promise 2, the node 0 is a name");
+        due("r", 0, ref(B));
+        x.stage(A, type(), 0);
+        due("none", 'n', x.fault());
+        x.stage(B, type(), num(7));
+        x.define();
+        due("value", "7", value(A));
     }
 
     private void promise3() {
@@ -371,6 +422,45 @@ public final class StagingTest extends Check {
         x.stageData(10, true, constructors(data(10)));
         x.define();
         due("unique", row(30, 1, 1, 1, 4), x.hash(10));
+    }
+
+    private void promise6Again() {
+        begin("promise 6, drafts that are there already");
+        defineData(B, NO, type());
+        x.stageData(A, false, constructors(NO, type()));
+        x.stage(C, data(A), make(A, 0, NO));
+        due("only the term is new", 1, x.define());
+        due("it needs the data that is there", true, x.needs(C, B));
+        due("one", 1, x.needed(C));
+        begin("promise 6, others after a group that is there already");
+        defineInt(20, num(9));
+        defineData(21, NO, NO);
+        x.stage(A, intToInt(), caller(B));
+        x.stage(B, intToInt(), caller(A));
+        x.define();
+        x.stage(C, intToInt(), caller(D));
+        x.stage(D, intToInt(), caller(C));
+        due("both are there", 0, x.define());
+        x.stage(E, type(), num(1));
+        x.stage(F, type(), op(ref(E), '+', ref(20)));
+        due("two", 2, x.define());
+        due("e", 0, x.needed(E));
+        due("f", 2, x.needed(F));
+        defineInt(22, op(ref(E), '+', num(1)));
+        due("e alone", 1, x.needed(22));
+        x.stage(10, intToInt(), caller(11));
+        x.stage(11, intToInt(), caller(10));
+        due("there again", 0, x.define());
+        x.stage(12, type(), num(5));
+        x.stageData(13, false, constructors(data(21)));
+        due("two", 2, x.define());
+        due("data", 1, x.needed(13));
+        defineInt(23, ref(22));
+        due("no data", 2, x.needed(23));
+        for (int name : new int[] {A, B, C, D, E, F, 12, 13}) {
+            due("anew", x.hash(name), x.hashAnew(name));
+        }
+        due("sound", true, x.isSound());
     }
 
     private void promise7() {

@@ -253,6 +253,14 @@ public final class WorkTest extends Check {
         refused("30 jobs", () -> x.job(0, A));
         unsupported("data, ahead of 30", () -> x.job(0, C));
         missing("none, ahead of 30", () -> x.job(0, 24));
+        due("of 30 jobs none is dropped", 0, x.collect());
+        due("the first one that waits", 4, x.goOn(0));
+        missing("no job 30", () -> x.jobState(30));
+        due("25 fail", 25, x.down(0));
+        due("the last one", 'f', x.jobState(29));
+        due("it waits alone", 1, x.retry(29, 2));
+        due("and works", 29, x.goOn(2));
+        missing("none waits", () -> x.goOn(2));
     }
 
     private void promise39Order() {
