@@ -297,7 +297,7 @@ public final class HashedCommons {
 
     public int commit() throws IllegalStateException {
         requirePlaceForCommit();
-        return branches.record(NONE);
+        return branches.recordCommit(NONE);
     }
 
     public int branch() throws IllegalStateException {
@@ -1340,7 +1340,8 @@ public final class HashedCommons {
                 case 'a':
                     return inferApplication(node, in, binders, depth + 1);
                 case 'o':
-                    boolean areInts = isInt(infer(a, in, binders, depth + 1)) && isInt(infer(b, in, binders, depth + 1));
+                    boolean areInts = isInt(infer(a, in, binders, depth + 1));
+                    areInts = areInts && isInt(infer(b, in, binders, depth + 1));
                     return areInts ? intType() : null;
                 case '?':
                     return inferChoice(node, in, binders, depth + 1);
@@ -1758,7 +1759,7 @@ public final class HashedCommons {
         }
 
         /** Commits the present branch, with a further parent if that is not NONE. */
-        int record(int parent) {
+        int recordCommit(int parent) {
             if (commitsMade >= MOST_COMMITS) {
                 return NONE;
             }
@@ -1813,7 +1814,7 @@ public final class HashedCommons {
                     names[present * NAMES + name] = there;
                 }
             }
-            record(lastCommits[branch]);
+            recordCommit(lastCommits[branch]);
             return conflicts;
         }
 
