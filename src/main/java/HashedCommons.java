@@ -1,4 +1,4 @@
-import java.util.ArrayList;
+import java.util.Arrays;
 import java.util.NoSuchElementException;
 
 /**
@@ -26,12 +26,27 @@ public final class HashedCommons {
 
     /** No document limit: guards the recursions over nodes, which are at most MOST_DEPTH deep. */
     private static final int DEEPEST = 40;
-    /** No document limit: guards what is kept; no run that the document allows comes near it. */
-    private static final int MOST_DEFINITIONS = 50_000;
     /** No document limit: stands far above the steps that 300 beginnings of 200 nodes can take. */
     private static final int MOST_STEPS = 1_000_000;
     private static final int MOST_FRAMES = 600;
-    private static final int BUCKETS = 256;
+    /** No document limit: stands above the definitions for which there is room. */
+    private static final int MOST_GROUPS = 1_000_000;
+
+    /**
+     * No document limit: definitions and patches grow as long as a run has room for them, which is some
+     * 7.3 million numbers in all. The rest is for the constructors and for what is worked out.
+     */
+    private static final int MOST_PARTS = 3000;
+    private static final int PART_BITS = 11;
+    private static final int PART = 1 << PART_BITS;
+    /** Parts that changes leave when they are carried along, that patches leave, and that are enough for one. */
+    private static final int CARRY_RESERVE = 64;
+    private static final int PATCH_RESERVE = 32;
+    private static final int LEAST_PARTS = 4;
+    private static final int BUCKETS = 4096;
+    /** Drafts of what is staged, and then of what is carried along, are the first definitions. */
+    private static final int FIRST_COPY = MOST_STAGED;
+    private static final int DRAFTS = 2 * MOST_STAGED;
 
     private static final int NONE = -1;
     private static final char NOTHING = '-';
@@ -52,10 +67,12 @@ public final class HashedCommons {
     private final Carrier carrier;
     private final Worker worker;
     private final Writer writer;
-    private final Definition[] before;
-    private final Definition[] jobDefinitions;
+    private final int[] before;
+    private final int[] jobDefinitions;
     private final int[] jobMachines;
     private final char[] jobStates;
+    private final char[] jobOutcomes;
+    private final int[] jobNumbers;
     private int jobCount;
     private int downMachines;
     private int testCount;
@@ -63,19 +80,21 @@ public final class HashedCommons {
 
     public HashedCommons() {
         nodes = new Nodes();
-        groups = new Groups(nodes);
-        checker = new Checker(nodes);
-        codebase = new Codebase();
+        codebase = new Codebase(nodes);
+        groups = new Groups(nodes, codebase);
+        checker = new Checker(nodes, codebase);
         branches = new Branches();
         staging = new Staging(nodes, groups, checker, codebase, branches);
         patches = new Patches(codebase);
         carrier = new Carrier(groups, checker, codebase, branches);
-        worker = new Worker(nodes);
+        worker = new Worker(nodes, codebase);
         writer = new Writer(nodes, codebase, branches);
-        before = new Definition[NAMES];
-        jobDefinitions = new Definition[MOST_JOBS];
+        before = new int[NAMES];
+        jobDefinitions = new int[MOST_JOBS];
         jobMachines = new int[MOST_JOBS];
         jobStates = new char[MOST_JOBS];
+        jobOutcomes = new char[MOST_JOBS];
+        jobNumbers = new int[MOST_JOBS];
     }
 
     // Nodes and staging
@@ -100,7 +119,7 @@ public final class HashedCommons {
             throw new UnsupportedOperationException("a type and a term are needed");
         }
         requirePlaceToStage(name);
-        return staging.put(name, false, type, term).stagedCount();
+        return staging.put(name, false, type, term);
     }
 
     public int stageData(int name, boolean isUnique, int constructor)
@@ -111,11 +130,7 @@ public final class HashedCommons {
             throw new UnsupportedOperationException("a constructor is needed");
         }
         requirePlaceToStage(name);
-        staging.put(name, true, NONE, constructor);
-        if (isUnique) {
-            staging.makeUnique();
-        }
-        return staging.stagedCount();
+        return staging.put(name, true, isUnique ? staging.nextUnique() : 0, constructor);
     }
 
     public int unstage() {
@@ -128,7 +143,9 @@ public final class HashedCommons {
         if (staging.stagedCount() == 0 || !staging.areNamesFree()) {
             throw new IllegalStateException("nothing is staged, or a name is not free");
         }
-        requireNoFault();
+        if (staging.lookOver() != NOTHING) {
+            throw new UnsupportedOperationException("what is staged has a fault");
+        }
         int fresh = staging.settle();
         staging.giveNames();
         staging.clear();
@@ -139,21 +156,25 @@ public final class HashedCommons {
         if (staging.stagedCount() == 0 || !staging.haveNamesTheirKind() || patches.isFull()) {
             throw new IllegalStateException("nothing is staged, a name does not suit, or there are too many patches");
         }
-        requireNoFault();
+        if (staging.lookOver() != NOTHING) {
+            throw new UnsupportedOperationException("what is staged has a fault");
+        }
         staging.settle();
         staging.noteChanges();
         staging.giveNames();
-        int carried = carrier.carryAlong();
+        carrier.begin();
+        for (int i = 0; i < MOST_GROUPS && carrier.findGroup(); i++) {
+            carrier.carryGroup();
+        }
         patches.addChanges();
         for (int name = 0; name < NAMES; name++) {
-            Definition given = branches.at(name);
-            if (given != null && given.became != null && (given.isCarried || !staging.isStaged(name))) {
-                branches.give(name, given.became);
+            if (!staging.isStaged(name) || codebase.isCarried(branches.at(name))) {
+                takeWhatItBecame(name);
             }
         }
         codebase.forgetChanges();
         staging.clear();
-        return carried;
+        return carrier.carriedCount();
     }
 
     public char fault() {
@@ -183,31 +204,29 @@ public final class HashedCommons {
 
     public char kindOf(int name) throws IllegalArgumentException {
         requireName(name);
-        Definition definition = branches.at(name);
-        if (definition == null) {
+        int definition = branches.at(name);
+        if (definition == NONE) {
             return NOTHING;
         }
-        return definition.isData ? 'd' : 't';
+        return codebase.isData(definition) ? 'd' : 't';
     }
 
     public long hash(int name) throws IllegalArgumentException, NoSuchElementException {
-        return definitionOf(name).hash;
+        return codebase.hashAt(definitionOf(name));
     }
 
     public long hashAnew(int name) throws IllegalArgumentException, NoSuchElementException {
-        Definition definition = definitionOf(name);
-        codebase.beginMarks();
-        codebase.mark(definition);
-        codebase.sweep();
+        int definition = definitionOf(name);
+        markReachable(definition);
         codebase.hashMarkedAnew(groups);
-        return definition.anew;
+        return codebase.hashOf(definition, true);
     }
 
     public boolean needs(int name, int other) throws IllegalArgumentException, NoSuchElementException {
         requireName(name);
         requireName(other);
-        Definition definition = definitionOf(name);
-        Definition wanted = definitionOf(other);
+        int definition = definitionOf(name);
+        int wanted = definitionOf(other);
         codebase.markAllNeededBy(definition);
         return codebase.isMarked(wanted);
     }
@@ -220,14 +239,14 @@ public final class HashedCommons {
     public int alias(int name, int other) throws IllegalArgumentException, NoSuchElementException {
         requireName(name);
         requireName(other);
-        Definition definition = definitionOf(name);
+        int definition = definitionOf(name);
         branches.give(other, definition);
         return branches.namesOf(definition);
     }
 
     public int unname(int name) throws IllegalArgumentException, NoSuchElementException {
-        Definition definition = definitionOf(name);
-        branches.give(name, null);
+        int definition = definitionOf(name);
+        branches.give(name, NONE);
         return branches.namesOf(definition);
     }
 
@@ -266,11 +285,13 @@ public final class HashedCommons {
             before[name] = branches.at(name);
             takeWhatItBecame(name);
         }
-        carrier.carryAlong();
+        carrier.begin();
+        for (int i = 0; i < MOST_GROUPS && carrier.findGroup(); i++) {
+            carrier.carryGroup();
+        }
         int changed = 0;
         for (int name = 0; name < NAMES; name++) {
-            Definition given = branches.at(name);
-            if (given != null && given.isCarried) {
+            if (codebase.isCarried(branches.at(name))) {
                 takeWhatItBecame(name);
             }
             changed += branches.at(name) == before[name] ? 0 : 1;
@@ -350,11 +371,11 @@ public final class HashedCommons {
             throw new NoSuchElementException("no such commit");
         }
         requireName(name);
-        Definition definition = branches.atCommit(commit, name);
-        if (definition == null) {
+        int definition = branches.atCommit(commit, name);
+        if (definition == NONE) {
             throw new NoSuchElementException("the name has no definition in the commit");
         }
-        return (int) (definition.hash >>> 32);
+        return (int) (codebase.hashAt(definition) >>> 32);
     }
 
     // Working out, tests and jobs
@@ -372,16 +393,16 @@ public final class HashedCommons {
     }
 
     public char test(int name) throws IllegalArgumentException, NoSuchElementException, UnsupportedOperationException {
-        Definition definition = definitionOf(name);
-        if (definition.isData || nodes.kindAt(definition.typeNode) != 'j') {
+        int definition = definitionOf(name);
+        if (nodes.kindAt(codebase.typeNode(definition)) != 'j') {
             throw new UnsupportedOperationException("it is no int");
         }
-        if (definition.tested == 0) {
+        if (codebase.testedAs(definition) == 0) {
             testCount++;
             Cell value = worker.workOut(definition);
-            definition.tested = value == null ? 'l' : value.number != 0 ? 'p' : 'n';
+            codebase.noteTested(definition, value == null ? 'l' : value.number != 0 ? 'p' : 'n');
         }
-        return definition.tested;
+        return codebase.testedAs(definition);
     }
 
     public int tests() {
@@ -391,7 +412,7 @@ public final class HashedCommons {
     public int job(int machine, int name)
         throws IllegalArgumentException, NoSuchElementException, UnsupportedOperationException, IllegalStateException {
         requireMachine(machine);
-        Definition definition = termOf(name);
+        int definition = termOf(name);
         if (isDown(machine) || jobCount >= MOST_JOBS) {
             throw new IllegalStateException("the machine is down, or there are too many jobs");
         }
@@ -411,13 +432,18 @@ public final class HashedCommons {
         if (job == NONE) {
             throw new NoSuchElementException("no job waits on the machine");
         }
-        Definition definition = jobDefinitions[job];
-        if (definition.outcome == 0) {
+        int definition = jobDefinitions[job];
+        int done = firstDone(definition);
+        if (done == NONE) {
             markReachable(definition);
-            sent += codebase.sendMarked(1 << machine);
+            sent += codebase.sendMarked(machine);
             Cell value = worker.workOut(definition);
-            definition.outcome = kindOfValue(value);
-            definition.number = value == null ? 0 : value.number;
+            codebase.noteWorked(definition);
+            jobOutcomes[job] = kindOfValue(value);
+            jobNumbers[job] = value == null ? 0 : value.number;
+        } else {
+            jobOutcomes[job] = jobOutcomes[done];
+            jobNumbers[job] = jobNumbers[done];
         }
         jobStates[job] = 'd';
         return job;
@@ -431,16 +457,16 @@ public final class HashedCommons {
     public char outcome(int job) throws NoSuchElementException, IllegalStateException {
         requireJob(job);
         requireDone(job);
-        return jobDefinitions[job].outcome;
+        return jobOutcomes[job];
     }
 
     public int result(int job) throws NoSuchElementException, IllegalStateException, UnsupportedOperationException {
         requireJob(job);
         requireDone(job);
-        if (jobDefinitions[job].outcome != 'i') {
+        if (jobOutcomes[job] != 'i') {
             throw new UnsupportedOperationException("no int came of the job");
         }
-        return jobDefinitions[job].number;
+        return jobNumbers[job];
     }
 
     public int retry(int job, int machine)
@@ -467,7 +493,7 @@ public final class HashedCommons {
             }
         }
         downMachines |= 1 << machine;
-        codebase.emptyMachine(1 << machine);
+        codebase.emptyMachine(machine);
         return failing;
     }
 
@@ -481,7 +507,7 @@ public final class HashedCommons {
     public int lacking(int machine, int name) throws IllegalArgumentException, NoSuchElementException {
         requireMachine(machine);
         markReachable(definitionOf(name));
-        return codebase.markedWithout(1 << machine);
+        return codebase.markedWithout(machine);
     }
 
     public long traffic() {
@@ -491,7 +517,7 @@ public final class HashedCommons {
     // Writing and counting
 
     public int writeTerm(int name) throws IllegalArgumentException, NoSuchElementException {
-        Definition definition = definitionOf(name);
+        int definition = definitionOf(name);
         writer.clear();
         writer.body(definition);
         return writer.lineLength();
@@ -499,7 +525,7 @@ public final class HashedCommons {
 
     public int writeType(int name)
         throws IllegalArgumentException, NoSuchElementException, UnsupportedOperationException {
-        Definition definition = termOf(name);
+        int definition = termOf(name);
         writer.clear();
         writer.toldType(definition);
         return writer.lineLength();
@@ -534,8 +560,8 @@ public final class HashedCommons {
         }
         int sum = 0;
         for (int name = 0; name < NAMES; name++) {
-            Definition definition = branches.at(name);
-            if (definition != null && branches.lowestNameOf(definition) == name) {
+            int definition = branches.at(name);
+            if (definition != NONE && branches.lowestNameOf(definition) == name) {
                 codebase.markAllNeededBy(definition);
                 sum += codebase.markedCount();
             }
@@ -564,12 +590,6 @@ public final class HashedCommons {
     private void requirePlaceToStage(int name) {
         if (!staging.hasPlaceFor(name)) {
             throw new IllegalStateException("too many others are staged");
-        }
-    }
-
-    private void requireNoFault() {
-        if (staging.lookOver() != NOTHING) {
-            throw new UnsupportedOperationException("what is staged has a fault");
         }
     }
 
@@ -615,31 +635,31 @@ public final class HashedCommons {
         }
     }
 
-    private Definition definitionOf(int name) {
+    private int definitionOf(int name) {
         requireName(name);
-        Definition definition = branches.at(name);
-        if (definition == null) {
+        int definition = branches.at(name);
+        if (definition == NONE) {
             throw new NoSuchElementException("no definition has this name");
         }
         return definition;
     }
 
-    private Definition termOf(int name) {
-        Definition definition = definitionOf(name);
-        if (definition.isData) {
+    private int termOf(int name) {
+        int definition = definitionOf(name);
+        if (codebase.isData(definition)) {
             throw new UnsupportedOperationException("it is data");
         }
         return definition;
     }
 
     private void takeWhatItBecame(int name) {
-        Definition definition = branches.at(name);
-        if (definition != null && definition.became != null) {
-            branches.give(name, definition.became);
+        int became = codebase.became(branches.at(name));
+        if (became != NONE) {
+            branches.give(name, became);
         }
     }
 
-    private void markReachable(Definition definition) {
+    private void markReachable(int definition) {
         codebase.beginMarks();
         codebase.mark(definition);
         codebase.sweep();
@@ -656,6 +676,16 @@ public final class HashedCommons {
     private int firstWaiting(int machine) {
         for (int job = 0; job < jobCount; job++) {
             if (jobStates[job] == 'w' && jobMachines[job] == machine) {
+                return job;
+            }
+        }
+        return NONE;
+    }
+
+    /** A job for which a definition was worked out before, NONE if there is none. */
+    private int firstDone(int definition) {
+        for (int job = 0; job < jobCount; job++) {
+            if (jobStates[job] == 'd' && jobDefinitions[job] == definition) {
                 return job;
             }
         }
@@ -851,107 +881,615 @@ public final class HashedCommons {
     }
 
     /**
-     * A definition, or a draft of one: nodes, and what the names in them mean. It stays when it is
-     * dropped from the codebase, since tests, jobs and machines keep what they know of its hash.
+     * A row of numbers, 0 at first, that grows by parts: what is there is never copied, so that a run
+     * with many definitions stays in its room. The rows of a commons share the parts that are left.
      */
-    private static final class Definition {
-        /** What the names mean, data first, then terms; data itself stands for itself within it. */
-        private final Definition[] meant = new Definition[2 * NAMES];
-        private boolean isData;
-        private int own;
-        private int typeNode;
-        private int termNode;
-        private long hash;
-        private long anew;
-        private int place;
-        private boolean isGrouped;
-        private boolean isKept;
-        private int mark;
-        private int machines;
-        private char tested;
-        private char outcome;
-        private int number;
-        /** What its hash becomes by what is going on. */
-        private Definition became;
-        private boolean isCarried;
-        private Definition follow;
-        /** For a draft what is kept in its place; for what is being copied its copy. */
-        private Definition standIn;
-        private Definition next;
+    private static final class Row {
+        private final long[] numbers = new long[PART];
+        private final Row[] further;
+        private final int[] partsLeft;
 
-        Definition dataAt(int name) {
-            return name >= 0 && name < NAMES ? meant[name] : null;
+        /** The further parts are null for a row that is a part itself. */
+        Row(Row[] further, int[] partsLeft) {
+            this.further = further;
+            this.partsLeft = partsLeft;
         }
 
-        Definition termAt(int name) {
-            return name >= 0 && name < NAMES ? meant[NAMES + name] : null;
+        long at(int index) {
+            if (index >= 0 && index < PART) {
+                return numbers[index];
+            }
+            int part = (index >> PART_BITS) - 1;
+            if (further == null || part < 0 || part >= further.length || further[part] == null) {
+                return 0;
+            }
+            return further[part].numbers[index & PART - 1];
+        }
+
+        /** Nothing is put if no part is left for it. */
+        void put(int index, long number) {
+            if (index >= 0 && index < PART) {
+                numbers[index] = number;
+                return;
+            }
+            int part = (index >> PART_BITS) - 1;
+            if (further == null || part < 0 || part >= further.length) {
+                return;
+            }
+            if (further[part] == null && partsLeft[0] > 0) {
+                partsLeft[0]--;
+                further[part] = new Row(null, partsLeft);
+            }
+            if (further[part] != null) {
+                further[part].numbers[index & PART - 1] = number;
+            }
+        }
+    }
+
+    /**
+     * The definitions, each a number: drafts first, then what is in the codebase, and what was dropped
+     * from it while machines, tests or jobs still know its hash. A definition is nodes, and what the
+     * names in them mean, data first, then terms; data itself stands for itself within it.
+     *
+     * <p>In the order each one stands behind those that it needs, but for what was settled together;
+     * this begins with one that has the bit START, and is in the order of its places.
+     */
+    private static final class Codebase {
+        private static final int HASH = 0;
+        private static final int ANEW = 1;
+        private static final int SHAPE = 2;
+        private static final int NAMES_USED = 3;
+        private static final int MEANT = 4;
+        private static final int STATE = 5;
+        private static final int NEXT = 6;
+        private static final int MARK = 7;
+        private static final int BECAME = 8;
+        private static final int FOLLOW = 9;
+        private static final int FIELDS = 10;
+
+        private static final long KEPT = 1;
+        private static final long START = 2;
+        private static final long CARRIED = 4;
+        private static final long WORKED = 8;
+        private static final int MACHINE_SHIFT = 4;
+        private static final int TEST_SHIFT = 8;
+        private static final long CHARACTER = 0xFFFF;
+
+        private final Nodes nodes;
+        private final int[] partsLeft = {MOST_PARTS};
+        private final Row facts = new Row(new Row[MOST_PARTS], partsLeft);
+        private final Row meanings = new Row(new Row[MOST_PARTS], partsLeft);
+        private final Row order = new Row(new Row[MOST_PARTS], partsLeft);
+        private final int[] buckets = new int[BUCKETS];
+        private final int[] settled = new int[DRAFTS];
+        private int rows = DRAFTS;
+        private int free;
+        private int kept;
+        private int meaningEnd = DRAFTS * 2 * NAMES;
+        private long stamp;
+
+        Codebase(Nodes nodes) {
+            this.nodes = nodes;
+        }
+
+        /** A row that shares the parts. */
+        Row furtherRow() {
+            return new Row(new Row[MOST_PARTS], partsLeft);
+        }
+
+        // What a definition says
+
+        /** Shapes a draft; data has a number of its own, or 0, where a term has its type. */
+        void shape(int draft, boolean isData, int typeOrOwn, int term) {
+            int type = isData ? NONE : typeOrOwn;
+            long data = nodes.dataNamesAt(type) | nodes.dataNamesAt(term);
+            facts.put(draft * FIELDS + SHAPE, (long) typeOrOwn << 32 | (long) term << 1 | (isData ? 1 : 0));
+            facts.put(draft * FIELDS + NAMES_USED, data << 32 | nodes.termNamesAt(term));
+            facts.put(draft * FIELDS + MEANT, draft * 2L * NAMES);
+        }
+
+        boolean isData(int definition) {
+            return (facts.at(definition * FIELDS + SHAPE) & 1) != 0;
+        }
+
+        /** The number of its own that data has, 0 for none. */
+        int ownOf(int data) {
+            return (int) (facts.at(data * FIELDS + SHAPE) >> 32);
+        }
+
+        int typeNode(int term) {
+            long shape = facts.at(term * FIELDS + SHAPE);
+            return term < 0 || (shape & 1) != 0 ? NONE : (int) (shape >> 32);
+        }
+
+        int termNode(int definition) {
+            return definition < 0 ? NONE : (int) facts.at(definition * FIELDS + SHAPE) >> 1;
+        }
+
+        int dataNames(int definition) {
+            return (int) (facts.at(definition * FIELDS + NAMES_USED) >> 32);
+        }
+
+        int termNames(int definition) {
+            return (int) facts.at(definition * FIELDS + NAMES_USED);
+        }
+
+        /** What a name of data means in a definition, NONE if it is not in it. */
+        int dataAt(int definition, int name) {
+            int data = (int) (facts.at(definition * FIELDS + NAMES_USED) >> 32);
+            if (!isName(name) || (data >> name & 1) == 0) {
+                return NONE;
+            }
+            int start = (int) facts.at(definition * FIELDS + MEANT);
+            return (int) meanings.at(start + Integer.bitCount(data & (1 << name) - 1));
+        }
+
+        int termAt(int definition, int name) {
+            long used = facts.at(definition * FIELDS + NAMES_USED);
+            int terms = (int) used;
+            if (!isName(name) || (terms >> name & 1) == 0) {
+                return NONE;
+            }
+            int start = (int) facts.at(definition * FIELDS + MEANT) + Integer.bitCount((int) (used >> 32));
+            return (int) meanings.at(start + Integer.bitCount(terms & (1 << name) - 1));
+        }
+
+        int meaningCount(int definition) {
+            return Long.bitCount(facts.at(definition * FIELDS + NAMES_USED));
+        }
+
+        int meaning(int definition, int slot) {
+            return (int) meanings.at((int) facts.at(definition * FIELDS + MEANT) + slot);
+        }
+
+        void setMeaning(int draft, int slot, int meaning) {
+            meanings.put(draft * 2 * NAMES + slot, meaning);
         }
 
         /** Whether another one, or itself, is needed at first hand; data do not need themselves. */
-        boolean uses(Definition other) {
-            if (isData && other == this) {
+        boolean uses(int definition, int other) {
+            if (definition == other && isData(definition)) {
                 return false;
             }
-            for (int i = 0; i < meant.length; i++) {
-                if (meant[i] == other) {
+            int count = meaningCount(definition);
+            for (int slot = 0; slot < count; slot++) {
+                if (meaning(definition, slot) == other) {
                     return true;
                 }
             }
             return false;
         }
 
-        boolean usesChanged() {
-            for (int i = 0; i < meant.length; i++) {
-                if (meant[i] != null && meant[i].became != null) {
+        boolean usesChanged(int definition) {
+            int count = meaningCount(definition);
+            for (int slot = 0; slot < count; slot++) {
+                if (became(meaning(definition, slot)) != NONE) {
                     return true;
                 }
             }
             return false;
         }
 
-        void copyReplaced(Definition from) {
-            isData = from.isData;
-            own = from.own;
-            typeNode = from.typeNode;
-            termNode = from.termNode;
-            standIn = null;
-            for (int i = 0; i < meant.length; i++) {
-                meant[i] = replaced(from.meant[i]);
-            }
+        // Hashes
+
+        long hashAt(int definition) {
+            return facts.at(definition * FIELDS + HASH);
         }
 
-        private static Definition replaced(Definition meaning) {
-            if (meaning == null) {
-                return null;
-            }
-            if (meaning.standIn != null) {
-                return meaning.standIn;
-            }
-            return meaning.became != null ? meaning.became : meaning;
+        /** The hash, or the one that was found anew last. */
+        long hashOf(int definition, boolean isAnew) {
+            return facts.at(definition * FIELDS + (isAnew ? ANEW : HASH));
         }
 
-        void takeStandIns() {
-            for (int i = 0; i < meant.length; i++) {
-                if (meant[i] != null && meant[i].standIn != null) {
-                    meant[i] = meant[i].standIn;
+        void setHash(int definition, long hash, boolean isAnew) {
+            facts.put(definition * FIELDS + (isAnew ? ANEW : HASH), hash);
+        }
+
+        private static int bucketOf(long hash) {
+            return (int) (hash ^ hash >>> 32) & BUCKETS - 1;
+        }
+
+        private int find(long hash) {
+            int found = buckets[bucketOf(hash)];
+            for (int i = 0; i < rows && found != 0; i++) {
+                if (facts.at(found * FIELDS + HASH) == hash) {
+                    return found;
+                }
+                found = (int) facts.at(found * FIELDS + NEXT);
+            }
+            return NONE;
+        }
+
+        private void link(int row) {
+            int bucket = bucketOf(hashAt(row));
+            facts.put(row * FIELDS + NEXT, buckets[bucket]);
+            buckets[bucket] = row;
+        }
+
+        // What is kept
+
+        int rowCount() {
+            return rows;
+        }
+
+        int keptCount() {
+            return kept;
+        }
+
+        int at(int index) {
+            return index >= 0 && index < kept ? (int) order.at(index) : NONE;
+        }
+
+        /** Whether further definitions, or as many parts of patches, leave enough for what is staged. */
+        boolean hasRoomFor(int more, int reserve) {
+            return partsLeft[0] - (more >> PART_BITS) > reserve;
+        }
+
+        /** Keeps the members of a group that is hashed, each hash once; answers how many are new. */
+        int settle(Groups groups) {
+            int before = kept;
+            int fresh = 0;
+            for (int i = 0; i < groups.size(); i++) {
+                int draft = groups.member(i);
+                int there = find(hashAt(draft));
+                if (there == NONE || (facts.at(there * FIELDS + STATE) & KEPT) == 0) {
+                    there = append(there, draft, kept == before);
+                    fresh |= 1 << i;
+                }
+                if (draft >= 0 && draft < DRAFTS) {
+                    settled[draft] = there;
                 }
             }
+            for (int i = 0; i < groups.size(); i++) {
+                if ((fresh >> i & 1) != 0) {
+                    takeMeanings(groups.member(i));
+                }
+            }
+            return kept - before;
+        }
+
+        /** What is kept for a draft that was settled; others are what they are. */
+        int settledFor(int definition) {
+            return definition >= 0 && definition < DRAFTS ? settled[definition] : definition;
+        }
+
+        /** Keeps a draft; one with its hash that was dropped is no more what it was. */
+        private int append(int dropped, int draft, boolean isStart) {
+            if (partsLeft[0] < LEAST_PARTS) {
+                return NONE;
+            }
+            int row = dropped;
+            if (row == NONE) {
+                row = newRow();
+                facts.put(row * FIELDS + HASH, hashAt(draft));
+                facts.put(row * FIELDS + STATE, 0);
+                link(row);
+            }
+            long state = facts.at(row * FIELDS + STATE);
+            facts.put(row * FIELDS + STATE, state | KEPT | (isStart ? START : 0));
+            facts.put(row * FIELDS + SHAPE, facts.at(draft * FIELDS + SHAPE));
+            facts.put(row * FIELDS + NAMES_USED, facts.at(draft * FIELDS + NAMES_USED));
+            facts.put(row * FIELDS + MARK, 0);
+            facts.put(row * FIELDS + BECAME, 0);
+            facts.put(row * FIELDS + FOLLOW, 0);
+            order.put(kept, row);
+            kept++;
+            return row;
+        }
+
+        private int newRow() {
+            int row = free;
+            if (row != 0) {
+                free = (int) facts.at(row * FIELDS + NEXT);
+                return row;
+            }
+            rows++;
+            return rows - 1;
+        }
+
+        private void takeMeanings(int draft) {
+            int row = settledFor(draft);
+            if (row == NONE) {
+                return;
+            }
+            int count = meaningCount(draft);
+            for (int slot = 0; slot < count; slot++) {
+                meanings.put(meaningEnd + slot, settledFor(meaning(draft, slot)));
+            }
+            facts.put(row * FIELDS + MEANT, meaningEnd);
+            meaningEnd += count;
+        }
+
+        /** Drops what is not marked; what stays moves together, in its order. */
+        int dropUnmarked() {
+            int before = kept;
+            boolean isStart = false;
+            kept = 0;
+            meaningEnd = DRAFTS * 2 * NAMES;
+            for (int i = 0; i < before; i++) {
+                int row = (int) order.at(i);
+                long state = facts.at(row * FIELDS + STATE);
+                isStart = isStart || (state & START) != 0;
+                if (isMarked(row)) {
+                    facts.put(row * FIELDS + STATE, isStart ? state | START : state);
+                    isStart = false;
+                    moveMeanings(row);
+                    order.put(kept, row);
+                    kept++;
+                } else {
+                    facts.put(row * FIELDS + STATE, state & ~(KEPT | START));
+                }
+            }
+            linkAnew();
+            return before - kept;
+        }
+
+        private void moveMeanings(int row) {
+            int count = meaningCount(row);
+            for (int slot = 0; slot < count; slot++) {
+                meanings.put(meaningEnd + slot, meaning(row, slot));
+            }
+            facts.put(row * FIELDS + MEANT, meaningEnd);
+            meaningEnd += count;
+        }
+
+        /** Frees what was dropped, but for hashes that tests, jobs or machines know. */
+        private void linkAnew() {
+            Arrays.fill(buckets, 0);
+            free = 0;
+            for (int row = rows - 1; row >= DRAFTS; row--) {
+                if (facts.at(row * FIELDS + STATE) != 0) {
+                    link(row);
+                } else {
+                    facts.put(row * FIELDS + NEXT, free);
+                    free = row;
+                }
+            }
+        }
+
+        // Marks
+
+        void beginMarks() {
+            stamp++;
+        }
+
+        void mark(int definition) {
+            if (definition >= 0) {
+                facts.put(definition * FIELDS + MARK, stamp);
+            }
+        }
+
+        boolean isMarked(int definition) {
+            return definition >= 0 && facts.at(definition * FIELDS + MARK) == stamp;
+        }
+
+        private void markUsed(int definition) {
+            int count = meaningCount(definition);
+            boolean isData = isData(definition);
+            for (int slot = 0; slot < count; slot++) {
+                int used = meaning(definition, slot);
+                if (!isData || used != definition) {
+                    mark(used);
+                }
+            }
+        }
+
+        void markAllNeededBy(int definition) {
+            stamp++;
+            markUsed(definition);
+            sweep();
+        }
+
+        void markKept() {
+            for (int i = 0; i < kept; i++) {
+                mark(at(i));
+            }
+        }
+
+        /** Whether what was settled together begins at an index. */
+        boolean isStart(int index) {
+            return (facts.at(at(index) * FIELDS + STATE) & START) != 0;
+        }
+
+        /** The index behind what was settled together from an index on. */
+        int endFrom(int start) {
+            int end = start + 1;
+            while (end < kept && !isStart(end)) {
+                end++;
+            }
+            return end;
+        }
+
+        /** One way through the order is enough: whatever is needed stands ahead, or was settled together. */
+        void sweep() {
+            int end = kept;
+            for (int start = kept - 1; start >= 0; start--) {
+                if (isStart(start)) {
+                    spread(start, end);
+                    end = start;
+                }
+            }
+        }
+
+        /** Among those settled together marks go to and fro, at most once for each of them. */
+        private void spread(int start, int end) {
+            for (int round = start; round < end; round++) {
+                for (int i = start; i < end; i++) {
+                    if (isMarked(at(i))) {
+                        markUsed(at(i));
+                    }
+                }
+            }
+        }
+
+        int markedCount() {
+            int count = 0;
+            for (int i = 0; i < kept; i++) {
+                count += isMarked(at(i)) ? 1 : 0;
+            }
+            return count;
+        }
+
+        // What machines, tests and jobs know
+
+        int markedWithout(int machine) {
+            int count = 0;
+            for (int i = 0; i < kept; i++) {
+                int row = at(i);
+                boolean isThere = (facts.at(row * FIELDS + STATE) >> MACHINE_SHIFT + machine & 1) != 0;
+                count += isMarked(row) && !isThere ? 1 : 0;
+            }
+            return count;
+        }
+
+        int sendMarked(int machine) {
+            int count = markedWithout(machine);
+            for (int i = 0; i < kept; i++) {
+                int row = at(i);
+                if (isMarked(row)) {
+                    setState(row, 1L << MACHINE_SHIFT + machine);
+                }
+            }
+            return count;
+        }
+
+        void emptyMachine(int machine) {
+            long all = ~(1L << MACHINE_SHIFT + machine);
+            for (int row = DRAFTS; row < rows; row++) {
+                facts.put(row * FIELDS + STATE, facts.at(row * FIELDS + STATE) & all);
+            }
+        }
+
+        private void setState(int definition, long bits) {
+            facts.put(definition * FIELDS + STATE, facts.at(definition * FIELDS + STATE) | bits);
+        }
+
+        void noteWorked(int definition) {
+            setState(definition, WORKED);
+        }
+
+        /** The outcome of its test, 0 if there was none. */
+        char testedAs(int definition) {
+            return (char) (facts.at(definition * FIELDS + STATE) >> TEST_SHIFT & CHARACTER);
+        }
+
+        void noteTested(int definition, char outcome) {
+            setState(definition, (long) outcome << TEST_SHIFT);
+        }
+
+        // Changes
+
+        /** What its hash becomes by what is going on, NONE if it stays. */
+        int became(int definition) {
+            int to = definition < 0 ? 0 : (int) facts.at(definition * FIELDS + BECAME);
+            return to == 0 ? NONE : to;
+        }
+
+        void setBecame(int definition, int to) {
+            if (definition >= 0) {
+                facts.put(definition * FIELDS + BECAME, to < 0 ? 0 : to);
+            }
+        }
+
+        boolean isCarried(int definition) {
+            return definition >= 0 && (facts.at(definition * FIELDS + STATE) & CARRIED) != 0;
+        }
+
+        void setCarried(int definition, int to) {
+            setBecame(definition, to);
+            setState(definition, CARRIED);
+        }
+
+        /** What a patch keeps with it, NONE for nothing. */
+        int follow(int definition) {
+            int to = definition < 0 ? 0 : (int) facts.at(definition * FIELDS + FOLLOW);
+            return to == 0 ? NONE : to;
+        }
+
+        void setFollow(int definition, int to) {
+            facts.put(definition * FIELDS + FOLLOW, to < 0 ? 0 : to);
+        }
+
+        void forgetChanges() {
+            for (int i = 0; i < kept; i++) {
+                int row = at(i);
+                facts.put(row * FIELDS + BECAME, 0);
+                facts.put(row * FIELDS + STATE, facts.at(row * FIELDS + STATE) & ~CARRIED);
+            }
+        }
+
+        /** Makes a draft say what a definition says, each hash in it replaced once. */
+        void copyReplaced(int definition, int draft, int[] originals, int count) {
+            long shape = facts.at(definition * FIELDS + SHAPE);
+            shape(draft, (shape & 1) != 0, (int) (shape >> 32), (int) shape >> 1);
+            int used = meaningCount(definition);
+            for (int slot = 0; slot < used; slot++) {
+                int meaning = meaning(definition, slot);
+                int to = became(meaning) != NONE ? became(meaning) : meaning;
+                for (int i = 0; i < count && i < originals.length; i++) {
+                    to = originals[i] == meaning ? FIRST_COPY + i : to;
+                }
+                setMeaning(draft, slot, to);
+            }
+        }
+
+        // Finding anew
+
+        void hashMarkedAnew(Groups groups) {
+            groups.setAnew(true);
+            for (int start = 0; start < kept; start++) {
+                if (!isStart(start)) {
+                    continue;
+                }
+                int end = endFrom(start);
+                groups.clear();
+                for (int i = start; i < end; i++) {
+                    if (isMarked(at(i))) {
+                        groups.add(at(i));
+                    }
+                }
+                groups.connect();
+                for (int i = 0; i < MOST_STAGED && groups.nextGroup(); i++) {
+                    groups.hashMembers();
+                }
+            }
+            groups.setAnew(false);
+        }
+
+        boolean areMarkedSound(Checker checker) {
+            for (int i = 0; i < kept; i++) {
+                int row = at(i);
+                if (isMarked(row)
+                    && (hashAt(row) != hashOf(row, true) || !isData(row) && !checker.hasItsType(row))) {
+                    return false;
+                }
+            }
+            return true;
         }
     }
 
     /** Parts at most eight definitions into groups that need one another, and hashes these. */
     private static final class Groups {
         private final Nodes nodes;
-        private final Definition[] items = new Definition[MOST_STAGED];
+        private final Codebase codebase;
+        private final int[] items = new int[MOST_STAGED];
         private final int[] reach = new int[MOST_STAGED];
-        private final Definition[] members = new Definition[MOST_STAGED];
+        private final int[] members = new int[MOST_STAGED];
         private final long[] keys = new long[MOST_STAGED];
         private int itemCount;
         private int memberCount;
         private int left;
+        private boolean isGroup;
+        private boolean isAnew;
 
-        Groups(Nodes nodes) {
+        Groups(Nodes nodes, Codebase codebase) {
             this.nodes = nodes;
+            this.codebase = codebase;
+        }
+
+        /** Whether hashes are found anew from what was found anew, beside those that are kept. */
+        void setAnew(boolean isAnew) {
+            this.isAnew = isAnew;
         }
 
         void clear() {
@@ -960,7 +1498,7 @@ public final class HashedCommons {
             left = 0;
         }
 
-        void add(Definition definition) {
+        void add(int definition) {
             if (itemCount < MOST_STAGED) {
                 items[itemCount] = definition;
                 itemCount++;
@@ -971,11 +1509,11 @@ public final class HashedCommons {
             return memberCount;
         }
 
-        Definition member(int index) {
-            return index >= 0 && index < memberCount ? members[index] : null;
+        int member(int index) {
+            return index >= 0 && index < memberCount ? members[index] : NONE;
         }
 
-        void setMember(int index, Definition definition) {
+        void setMember(int index, int definition) {
             if (index >= 0 && index < memberCount) {
                 members[index] = definition;
             }
@@ -986,7 +1524,7 @@ public final class HashedCommons {
             for (int i = 0; i < itemCount; i++) {
                 reach[i] = 0;
                 for (int j = 0; j < itemCount; j++) {
-                    reach[i] |= items[i].uses(items[j]) ? 1 << j : 0;
+                    reach[i] |= codebase.uses(items[i], items[j]) ? 1 << j : 0;
                 }
             }
             for (int over = 0; over < itemCount; over++) {
@@ -997,7 +1535,7 @@ public final class HashedCommons {
             left = (1 << itemCount) - 1;
         }
 
-        /** Makes the members those of a group that needs no group which is still left. */
+        /** Makes the members those of the first group that needs no group which is still left. */
         boolean nextGroup() {
             for (int i = 0; i < itemCount; i++) {
                 int group = groupOf(i);
@@ -1031,7 +1569,7 @@ public final class HashedCommons {
         }
 
         /** Makes one definition the only member, without a look at what it needs. */
-        void setOnly(Definition definition) {
+        void setOnly(int definition) {
             members[0] = definition;
             memberCount = 1;
         }
@@ -1041,15 +1579,13 @@ public final class HashedCommons {
          * keep the order in which they were gathered.
          */
         void hashMembers() {
-            Definition only = memberCount == 1 ? members[0] : null;
-            if (only != null && !only.uses(only)) {
-                only.place = 0;
-                only.anew = rowOf(ROW_START, only, false);
+            if (memberCount == 1 && !codebase.uses(members[0], members[0])) {
+                codebase.setHash(members[0], rowOf(ROW_START, members[0], false), isAnew);
                 return;
             }
-            setGrouped(true);
+            isGroup = true;
             for (int i = 0; i < memberCount; i++) {
-                Definition member = members[i];
+                int member = members[i];
                 long key = rowOf(ROW_START, member, true);
                 int at = i;
                 while (at > 0 && keys[at - 1] > key) {
@@ -1060,54 +1596,37 @@ public final class HashedCommons {
                 keys[at] = key;
                 members[at] = member;
             }
-            setPlaces();
             long whole = mix(mix(ROW_START, 32), memberCount);
             for (int i = 0; i < memberCount; i++) {
                 whole = rowOf(whole, members[i], false);
             }
-            setGrouped(false);
+            isGroup = false;
             for (int i = 0; i < memberCount; i++) {
-                members[i].anew = mix(mix(mix(ROW_START, 33), whole), i);
+                codebase.setHash(members[i], mix(mix(mix(ROW_START, 33), whole), i), isAnew);
             }
-        }
-
-        private void setGrouped(boolean isGrouped) {
-            for (int i = 0; i < memberCount; i++) {
-                members[i].isGrouped = isGrouped;
-            }
-        }
-
-        private void setPlaces() {
-            for (int i = 0; i < memberCount; i++) {
-                members[i].place = i;
-            }
-        }
-
-        long hashOfData(Definition data) {
-            return dataRow(ROW_START, data);
         }
 
         private static long mix(long row, long number) {
             return ((row << 5 | row >>> 59) ^ number) * ROW_FACTOR;
         }
 
-        private long rowOf(long row, Definition definition, boolean isPlaceless) {
-            if (definition.isData) {
+        private long rowOf(long row, int definition, boolean isPlaceless) {
+            if (codebase.isData(definition)) {
                 return dataRow(row, definition);
             }
-            long typed = typeRow(mix(row, 31), definition.typeNode, definition, 0);
-            return termRow(typed, definition.termNode, definition, isPlaceless, 0);
+            long typed = typeRow(mix(row, 31), codebase.typeNode(definition), definition, 0);
+            return termRow(typed, codebase.termNode(definition), definition, isPlaceless, 0);
         }
 
-        private long dataRow(long start, Definition data) {
+        private long dataRow(long start, int data) {
             int constructors = 0;
-            int at = data.termNode;
+            int at = codebase.termNode(data);
             for (int i = 0; i < MOST_WEIGHT && at >= 0; i++) {
                 constructors++;
                 at = nodes.bAt(at);
             }
-            long row = mix(mix(mix(start, 30), data.own), constructors);
-            at = data.termNode;
+            long row = mix(mix(mix(start, 30), codebase.ownOf(data)), constructors);
+            at = codebase.termNode(data);
             for (int i = 0; i < constructors; i++) {
                 int argument = nodes.aAt(at);
                 row = argument < 0 ? mix(row, 0) : typeRow(mix(row, 1), argument, data, 0);
@@ -1116,7 +1635,7 @@ public final class HashedCommons {
             return row;
         }
 
-        private long typeRow(long row, int node, Definition in, int depth) {
+        private long typeRow(long row, int node, int in, int depth) {
             if (depth > DEEPEST) {
                 return row;
             }
@@ -1125,18 +1644,14 @@ public final class HashedCommons {
                     long from = typeRow(mix(row, 2), nodes.aAt(node), in, depth + 1);
                     return typeRow(from, nodes.bAt(node), in, depth + 1);
                 case 'd':
-                    Definition data = in.dataAt(nodes.aAt(node));
-                    return in.isData && data == in ? mix(row, 4) : mix(mix(row, 3), anewOf(data));
+                    int data = codebase.dataAt(in, nodes.aAt(node));
+                    return data == in ? mix(row, 4) : mix(mix(row, 3), codebase.hashOf(data, isAnew));
                 default:
                     return mix(row, 1);
             }
         }
 
-        private static long anewOf(Definition definition) {
-            return definition == null ? 0 : definition.anew;
-        }
-
-        private long termRow(long row, int node, Definition in, boolean isPlaceless, int depth) {
+        private long termRow(long row, int node, int in, boolean isPlaceless, int depth) {
             if (depth > DEEPEST) {
                 return row;
             }
@@ -1166,12 +1681,12 @@ public final class HashedCommons {
                     next = termRow(mix(row, 17), a, in, isPlaceless, depth + 1);
                     return termRow(next, b, in, isPlaceless, depth + 1);
                 case 'r':
-                    return nameRow(row, in.termAt(a), isPlaceless);
+                    return nameRow(row, codebase.termAt(in, a), isPlaceless);
                 case 'm':
-                    next = mix(mix(mix(row, 20), anewOf(in.dataAt(a))), b);
+                    next = mix(mix(mix(row, 20), codebase.hashOf(codebase.dataAt(in, a), isAnew)), b);
                     return c < 0 ? next : termRow(next, c, in, isPlaceless, depth + 1);
                 case 'c':
-                    next = mix(mix(row, 21), anewOf(in.dataAt(a)));
+                    next = mix(mix(row, 21), codebase.hashOf(codebase.dataAt(in, a), isAnew));
                     next = termRow(next, b, in, isPlaceless, depth + 1);
                     return branchRows(next, c, in, isPlaceless, depth + 1);
                 default:
@@ -1179,14 +1694,16 @@ public final class HashedCommons {
             }
         }
 
-        private static long nameRow(long row, Definition named, boolean isPlaceless) {
-            if (named != null && named.isGrouped) {
-                return mix(mix(row, 19), isPlaceless ? 0 : named.place);
+        private long nameRow(long row, int named, boolean isPlaceless) {
+            for (int place = 0; place < memberCount && isGroup; place++) {
+                if (members[place] == named) {
+                    return mix(mix(row, 19), isPlaceless ? 0 : place);
+                }
             }
-            return mix(mix(row, 18), anewOf(named));
+            return mix(mix(row, 18), codebase.hashOf(named, isAnew));
         }
 
-        private long branchRows(long row, int node, Definition in, boolean isPlaceless, int depth) {
+        private long branchRows(long row, int node, int in, boolean isPlaceless, int depth) {
             long next = row;
             int at = node;
             for (int i = 0; i < MOST_WEIGHT && at >= 0; i++) {
@@ -1202,7 +1719,7 @@ public final class HashedCommons {
         private char kind;
         private int number;
         private int node;
-        private Definition definition;
+        private int definition;
         /** From what a function type is, an argument that is had, the scope of a function, or what is bound. */
         private Cell inner;
         /** To what a function type is, or the scope outside of this one. */
@@ -1216,7 +1733,7 @@ public final class HashedCommons {
             after.kind = nextKind;
             after.number = 0;
             after.node = NONE;
-            after.definition = null;
+            after.definition = NONE;
             after.inner = null;
             after.outer = null;
             return after;
@@ -1226,23 +1743,25 @@ public final class HashedCommons {
     /** Finds the types of terms. */
     private static final class Checker {
         private final Nodes nodes;
+        private final Codebase codebase;
         private final Cell[] bound = new Cell[DEEPEST];
         private final Cell first = new Cell();
         private Cell last;
 
-        Checker(Nodes nodes) {
+        Checker(Nodes nodes, Codebase codebase) {
             this.nodes = nodes;
+            this.codebase = codebase;
             last = first;
         }
 
-        boolean hasItsType(Definition term) {
+        boolean hasItsType(int term) {
             last = first;
-            Cell told = typeOf(term.typeNode, term, 0);
-            Cell found = infer(term.termNode, term, 0, 0);
+            Cell told = typeOf(codebase.typeNode(term), term, 0);
+            Cell found = infer(codebase.termNode(term), term, 0, 0);
             return isSame(told, found, 0);
         }
 
-        private Cell typeOf(int node, Definition in, int depth) {
+        private Cell typeOf(int node, int in, int depth) {
             if (depth > DEEPEST) {
                 return null;
             }
@@ -1259,7 +1778,7 @@ public final class HashedCommons {
                     return last;
                 case 'd':
                     last = last.following('d');
-                    last.definition = in.dataAt(nodes.aAt(node));
+                    last.definition = codebase.dataAt(in, nodes.aAt(node));
                     return last;
                 default:
                     return null;
@@ -1281,14 +1800,14 @@ public final class HashedCommons {
             return last;
         }
 
-        private Cell dataType(Definition data) {
+        private Cell dataType(int data) {
             last = last.following('d');
             last.definition = data;
             return last;
         }
 
         /** What a function is to can be a long chain, so only what it is from is a recursion. */
-        private static boolean isSame(Cell type, Cell other, int depth) {
+        private boolean isSame(Cell type, Cell other, int depth) {
             Cell one = type;
             Cell two = other;
             for (int i = 0; i < MOST_STEPS && depth <= DEEPEST && one != null && two != null; i++) {
@@ -1299,7 +1818,7 @@ public final class HashedCommons {
                     return false;
                 }
                 if (one.kind == 'd') {
-                    return isData(one, two.definition);
+                    return codebase.hashAt(one.definition) == codebase.hashAt(two.definition);
                 }
                 if (one.kind != '>') {
                     return true;
@@ -1317,13 +1836,12 @@ public final class HashedCommons {
             return type != null && type.kind == 'j';
         }
 
-        private static boolean isData(Cell type, Definition data) {
-            return type != null && type.kind == 'd' && type.definition != null && data != null
-                && type.definition.hash == data.hash;
+        private boolean isOf(Cell type, int data) {
+            return type != null && type.kind == 'd' && codebase.hashAt(type.definition) == codebase.hashAt(data);
         }
 
         /** Answers null if there is a fault. */
-        private Cell infer(int node, Definition in, int binders, int depth) {
+        private Cell infer(int node, int in, int binders, int depth) {
             if (depth > DEEPEST) {
                 return null;
             }
@@ -1348,8 +1866,8 @@ public final class HashedCommons {
                 case 'l':
                     return inferInside(infer(a, in, binders, depth + 1), b, in, binders, depth + 1);
                 case 'r':
-                    Definition named = in.termAt(a);
-                    return named == null || named.isData ? null : typeOf(named.typeNode, named, 0);
+                    int named = codebase.termAt(in, a);
+                    return typeOf(codebase.typeNode(named), named, 0);
                 case 'm':
                     return inferConstructor(node, in, binders, depth + 1);
                 case 'c':
@@ -1359,7 +1877,7 @@ public final class HashedCommons {
             }
         }
 
-        private Cell inferInside(Cell type, int node, Definition in, int binders, int depth) {
+        private Cell inferInside(Cell type, int node, int in, int binders, int depth) {
             if (type == null || binders >= bound.length) {
                 return null;
             }
@@ -1367,7 +1885,7 @@ public final class HashedCommons {
             return infer(node, in, binders + 1, depth);
         }
 
-        private Cell inferApplication(int node, Definition in, int binders, int depth) {
+        private Cell inferApplication(int node, int in, int binders, int depth) {
             Cell function = infer(nodes.aAt(node), in, binders, depth);
             if (function == null || function.kind != '>') {
                 return null;
@@ -1376,7 +1894,7 @@ public final class HashedCommons {
             return isSame(function.inner, argument, 0) ? function.outer : null;
         }
 
-        private Cell inferChoice(int node, Definition in, int binders, int depth) {
+        private Cell inferChoice(int node, int in, int binders, int depth) {
             if (!isInt(infer(nodes.aAt(node), in, binders, depth))) {
                 return null;
             }
@@ -1385,12 +1903,12 @@ public final class HashedCommons {
             return isSame(one, other, 0) ? one : null;
         }
 
-        private Cell inferConstructor(int node, Definition in, int binders, int depth) {
-            Definition data = in.dataAt(nodes.aAt(node));
-            if (data == null) {
+        private Cell inferConstructor(int node, int in, int binders, int depth) {
+            int data = codebase.dataAt(in, nodes.aAt(node));
+            if (!codebase.isData(data)) {
                 return null;
             }
-            int constructor = data.termNode;
+            int constructor = codebase.termNode(data);
             for (int i = 0; i < nodes.bAt(node) && constructor >= 0; i++) {
                 constructor = nodes.bAt(constructor);
             }
@@ -1405,13 +1923,13 @@ public final class HashedCommons {
             return dataType(data);
         }
 
-        private Cell inferBranches(int node, Definition in, int binders, int depth) {
-            Definition data = in.dataAt(nodes.aAt(node));
-            if (data == null || !isData(infer(nodes.bAt(node), in, binders, depth), data)) {
+        private Cell inferBranches(int node, int in, int binders, int depth) {
+            int data = codebase.dataAt(in, nodes.aAt(node));
+            if (!codebase.isData(data) || !isOf(infer(nodes.bAt(node), in, binders, depth), data)) {
                 return null;
             }
             int branch = nodes.cAt(node);
-            int constructor = data.termNode;
+            int constructor = codebase.termNode(data);
             Cell common = null;
             for (int i = 0; i < MOST_WEIGHT && branch >= 0 && constructor >= 0; i++) {
                 int argument = nodes.aAt(constructor);
@@ -1429,233 +1947,11 @@ public final class HashedCommons {
         }
     }
 
-    /**
-     * All definitions that were ever made, by their hashes. In the list each one stands behind those
-     * that it needs, and the members of a group stand together in the order of their places.
-     */
-    private static final class Codebase {
-        private final ArrayList<Definition> all = new ArrayList<Definition>();
-        private final Definition[] buckets = new Definition[BUCKETS];
-        private int stamp;
-        private int kept;
-
-        int size() {
-            return all.size();
-        }
-
-        Definition at(int index) {
-            return index >= 0 && index < all.size() ? all.get(index) : null;
-        }
-
-        int keptCount() {
-            return kept;
-        }
-
-        private static int bucketOf(long hash) {
-            return (int) (hash ^ hash >>> 32) & BUCKETS - 1;
-        }
-
-        private Definition find(long hash) {
-            Definition found = buckets[bucketOf(hash)];
-            for (int i = 0; i < all.size() && found != null && found.hash != hash; i++) {
-                found = found.next;
-            }
-            return found;
-        }
-
-        /** Keeps the members of a group that is hashed, each hash once; answers how many are new. */
-        int settle(Groups groups) {
-            int fresh = 0;
-            for (int i = 0; i < groups.size(); i++) {
-                Definition draft = groups.member(i);
-                if (draft == null) {
-                    continue;
-                }
-                draft.hash = draft.anew;
-                Definition there = find(draft.hash);
-                if (there == null) {
-                    there = draft;
-                    append(draft);
-                } else {
-                    draft.standIn = there;
-                }
-                if (!there.isKept) {
-                    there.isKept = true;
-                    kept++;
-                    fresh++;
-                }
-            }
-            for (int i = 0; i < groups.size(); i++) {
-                Definition draft = groups.member(i);
-                if (draft != null) {
-                    draft.takeStandIns();
-                }
-            }
-            return fresh;
-        }
-
-        private void append(Definition definition) {
-            int bucket = bucketOf(definition.hash);
-            definition.next = buckets[bucket];
-            buckets[bucket] = definition;
-            all.add(definition);
-        }
-
-        void beginMarks() {
-            stamp++;
-        }
-
-        void mark(Definition definition) {
-            if (definition != null) {
-                definition.mark = stamp;
-            }
-        }
-
-        boolean isMarked(Definition definition) {
-            return definition != null && definition.mark == stamp;
-        }
-
-        private void markUsed(Definition definition) {
-            for (int i = 0; i < definition.meant.length; i++) {
-                Definition used = definition.meant[i];
-                if (used != null && !(definition.isData && used == definition)) {
-                    used.mark = stamp;
-                }
-            }
-        }
-
-        void markAllNeededBy(Definition definition) {
-            stamp++;
-            markUsed(definition);
-            sweep();
-        }
-
-        void markKept() {
-            for (int i = 0; i < all.size(); i++) {
-                if (all.get(i).isKept) {
-                    all.get(i).mark = stamp;
-                }
-            }
-        }
-
-        /** Whether a group, or a definition that is in none, begins at an index. */
-        boolean isStart(int index) {
-            return index >= 0 && index < all.size() && all.get(index).place == 0;
-        }
-
-        /** The index of the last one of the group that begins at an index. */
-        int groupEnd(int start) {
-            int end = start;
-            for (int i = start + 1; i < all.size() && !isStart(i); i++) {
-                end = i;
-            }
-            return end;
-        }
-
-        /** One way through the list is enough: whatever is needed stands ahead, or in the same group. */
-        void sweep() {
-            int end = all.size() - 1;
-            boolean isReached = false;
-            for (int start = all.size() - 1; start >= 0; start--) {
-                isReached = isReached || all.get(start).mark == stamp;
-                if (!isStart(start)) {
-                    continue;
-                }
-                for (int i = start; i <= end && isReached; i++) {
-                    markUsed(all.get(i));
-                }
-                end = start - 1;
-                isReached = false;
-            }
-        }
-
-        int markedCount() {
-            int count = 0;
-            for (int i = 0; i < all.size(); i++) {
-                count += all.get(i).mark == stamp ? 1 : 0;
-            }
-            return count;
-        }
-
-        int markedWithout(int machineBit) {
-            int count = 0;
-            for (int i = 0; i < all.size(); i++) {
-                Definition definition = all.get(i);
-                count += definition.mark == stamp && (definition.machines & machineBit) == 0 ? 1 : 0;
-            }
-            return count;
-        }
-
-        int sendMarked(int machineBit) {
-            int count = markedWithout(machineBit);
-            for (int i = 0; i < all.size(); i++) {
-                all.get(i).machines |= all.get(i).mark == stamp ? machineBit : 0;
-            }
-            return count;
-        }
-
-        void emptyMachine(int machineBit) {
-            for (int i = 0; i < all.size(); i++) {
-                all.get(i).machines &= ~machineBit;
-            }
-        }
-
-        int dropUnmarked() {
-            int dropped = 0;
-            for (int i = 0; i < all.size(); i++) {
-                Definition definition = all.get(i);
-                if (definition.isKept && definition.mark != stamp) {
-                    definition.isKept = false;
-                    dropped++;
-                }
-            }
-            kept -= dropped;
-            return dropped;
-        }
-
-        void forgetChanges() {
-            for (int i = 0; i < all.size(); i++) {
-                all.get(i).became = null;
-                all.get(i).isCarried = false;
-            }
-        }
-
-        void hashMarkedAnew(Groups groups) {
-            for (int start = 0; start < all.size(); start++) {
-                if (!isStart(start) || all.get(start).mark != stamp) {
-                    continue;
-                }
-                int end = groupEnd(start);
-                groups.clear();
-                for (int i = start; i <= end; i++) {
-                    groups.add(all.get(i));
-                }
-                groups.connect();
-                if (groups.nextGroup()) {
-                    groups.hashMembers();
-                }
-            }
-        }
-
-        boolean areMarkedSound(Checker checker) {
-            for (int i = 0; i < all.size(); i++) {
-                Definition definition = all.get(i);
-                if (definition.mark != stamp) {
-                    continue;
-                }
-                if (definition.anew != definition.hash || !definition.isData && !checker.hasItsType(definition)) {
-                    return false;
-                }
-            }
-            return true;
-        }
-    }
-
     /** The names of each branch, and what the commits keep of them. */
     private static final class Branches {
-        private final Definition[] names = new Definition[MOST_BRANCHES * NAMES];
+        private final int[] names = new int[MOST_BRANCHES * NAMES];
         private final int[] lastCommits = new int[MOST_BRANCHES];
-        private final Definition[] committed = new Definition[MOST_COMMITS * NAMES];
+        private final int[] committed = new int[MOST_COMMITS * NAMES];
         private final int[] parents = new int[2 * MOST_COMMITS];
         private final boolean[] isConflict = new boolean[NAMES];
         private int branchCount = 1;
@@ -1664,19 +1960,22 @@ public final class HashedCommons {
 
         Branches() {
             lastCommits[0] = NONE;
+            Arrays.fill(names, NONE);
+            Arrays.fill(committed, NONE);
         }
 
-        Definition at(int name) {
-            return isName(name) ? names[present * NAMES + name] : null;
+        /** The definition to which a name belongs, NONE for none. */
+        int at(int name) {
+            return isName(name) ? names[present * NAMES + name] : NONE;
         }
 
-        void give(int name, Definition definition) {
+        void give(int name, int definition) {
             if (isName(name)) {
                 names[present * NAMES + name] = definition;
             }
         }
 
-        int namesOf(Definition definition) {
+        int namesOf(int definition) {
             int count = 0;
             for (int name = 0; name < NAMES; name++) {
                 count += names[present * NAMES + name] == definition ? 1 : 0;
@@ -1684,7 +1983,7 @@ public final class HashedCommons {
             return count;
         }
 
-        int lowestNameOf(Definition definition) {
+        int lowestNameOf(int definition) {
             for (int name = 0; name < NAMES; name++) {
                 if (names[present * NAMES + name] == definition) {
                     return name;
@@ -1697,8 +1996,8 @@ public final class HashedCommons {
         int namedCount() {
             int count = 0;
             for (int name = 0; name < NAMES; name++) {
-                Definition definition = at(name);
-                count += definition != null && lowestNameOf(definition) == name ? 1 : 0;
+                int definition = at(name);
+                count += definition != NONE && lowestNameOf(definition) == name ? 1 : 0;
             }
             return count;
         }
@@ -1754,8 +2053,8 @@ public final class HashedCommons {
             return commitsMade;
         }
 
-        Definition atCommit(int commit, int name) {
-            return hasCommit(commit) && isName(name) ? committed[commit * NAMES + name] : null;
+        int atCommit(int commit, int name) {
+            return hasCommit(commit) && isName(name) ? committed[commit * NAMES + name] : NONE;
         }
 
         /** Commits the present branch, with a further parent if that is not NONE. */
@@ -1805,9 +2104,9 @@ public final class HashedCommons {
             int base = commonAncestor(lastCommits[present], lastCommits[branch]);
             int conflicts = 0;
             for (int name = 0; name < NAMES; name++) {
-                Definition was = atCommit(base, name);
-                Definition here = names[present * NAMES + name];
-                Definition there = names[branch * NAMES + name];
+                int was = atCommit(base, name);
+                int here = names[present * NAMES + name];
+                int there = names[branch * NAMES + name];
                 isConflict[name] = here != was && there != was && here != there;
                 conflicts += isConflict[name] ? 1 : 0;
                 if (here == was) {
@@ -1839,7 +2138,7 @@ public final class HashedCommons {
         private final Checker checker;
         private final Codebase codebase;
         private final Branches branches;
-        private final Definition[] drafts = new Definition[MOST_STAGED];
+        private final int[] drafts = new int[MOST_STAGED];
         private final int[] names = new int[MOST_STAGED];
         private int count;
         private int uniques;
@@ -1852,7 +2151,7 @@ public final class HashedCommons {
             this.codebase = codebase;
             this.branches = branches;
             for (int i = 0; i < MOST_STAGED; i++) {
-                drafts[i] = new Definition();
+                drafts[i] = i;
             }
         }
 
@@ -1877,8 +2176,8 @@ public final class HashedCommons {
             return count < MOST_STAGED || isStaged(name);
         }
 
-        /** Stages behind all others, in place of what had this name. */
-        Staging put(int name, boolean isData, int type, int term) {
+        /** Stages behind all others, in place of what had this name; answers how many are staged. */
+        int put(int name, boolean isData, int typeOrOwn, int term) {
             int earlier = indexOf(name);
             if (earlier != NONE) {
                 moveBehind(earlier);
@@ -1886,16 +2185,12 @@ public final class HashedCommons {
                 count++;
             }
             names[count - 1] = name;
-            Definition draft = drafts[count - 1];
-            draft.isData = isData;
-            draft.own = 0;
-            draft.typeNode = type;
-            draft.termNode = term;
-            return this;
+            codebase.shape(drafts[count - 1], isData, typeOrOwn, term);
+            return count;
         }
 
         private void moveBehind(int index) {
-            Definition moved = drafts[index];
+            int moved = drafts[index];
             for (int i = index; i + 1 < count; i++) {
                 drafts[i] = drafts[i + 1];
                 names[i] = names[i + 1];
@@ -1903,27 +2198,19 @@ public final class HashedCommons {
             drafts[count - 1] = moved;
         }
 
-        /** Gives the data that was staged last a number of its own. */
-        void makeUnique() {
+        /** A number of its own for data that is unique. */
+        int nextUnique() {
             uniques++;
-            if (count > 0) {
-                drafts[count - 1].own = uniques;
-            }
+            return uniques;
         }
 
-        /** Drafts that became definitions are the codebase's now, so new ones take their places. */
         void clear() {
-            for (int i = 0; i < count; i++) {
-                if (drafts[i].isKept) {
-                    drafts[i] = new Definition();
-                }
-            }
             count = 0;
         }
 
         boolean areNamesFree() {
             for (int i = 0; i < count; i++) {
-                if (branches.at(names[i]) != null) {
+                if (branches.at(names[i]) != NONE) {
                     return false;
                 }
             }
@@ -1932,8 +2219,8 @@ public final class HashedCommons {
 
         boolean haveNamesTheirKind() {
             for (int i = 0; i < count; i++) {
-                Definition old = branches.at(names[i]);
-                if (old == null || old.isData != drafts[i].isData) {
+                int old = branches.at(names[i]);
+                if (old == NONE || codebase.isData(old) != codebase.isData(drafts[i])) {
                     return false;
                 }
             }
@@ -1947,20 +2234,20 @@ public final class HashedCommons {
         /** Finds what the names in the drafts mean, and the types; answers the fault. */
         char lookOver() {
             for (int i = 0; i < count; i++) {
-                char fault = drafts[i].isData ? lookAtData(i) : NOTHING;
+                char fault = codebase.isData(drafts[i]) ? lookAtData(i) : NOTHING;
                 if (fault != NOTHING) {
                     faulty = names[i];
                     return fault;
                 }
             }
             for (int i = 0; i < count; i++) {
-                if (!drafts[i].isData && !findMeanings(i)) {
+                if (!codebase.isData(drafts[i]) && !findMeanings(drafts[i], count)) {
                     faulty = names[i];
                     return 'n';
                 }
             }
             for (int i = 0; i < count; i++) {
-                if (!drafts[i].isData && !checker.hasItsType(drafts[i])) {
+                if (!codebase.isData(drafts[i]) && !checker.hasItsType(drafts[i])) {
                     faulty = names[i];
                     return 't';
                 }
@@ -1969,71 +2256,63 @@ public final class HashedCommons {
         }
 
         private char lookAtData(int index) {
-            Definition draft = drafts[index];
-            draft.standIn = null;
-            int used = nodes.dataNamesAt(draft.termNode);
-            boolean areThere = true;
-            for (int name = 0; name < NAMES; name++) {
-                boolean isUsed = (used >> name & 1) != 0;
-                draft.meant[NAMES + name] = null;
-                draft.meant[name] = isUsed ? meaning(name, true, index + 1) : null;
-                areThere = areThere && (!isUsed || draft.meant[name] != null);
-            }
-            if (!areThere) {
+            int draft = drafts[index];
+            if (!findMeanings(draft, index + 1)) {
                 return 'n';
             }
-            int constructor = draft.termNode;
+            int constructor = codebase.termNode(draft);
             for (int i = 0; i < MOST_CONSTRUCTORS && constructor >= 0; i++) {
                 constructor = nodes.bAt(constructor);
             }
             if (constructor >= 0) {
                 return 'k';
             }
-            draft.place = 0;
-            draft.anew = groups.hashOfData(draft);
-            draft.hash = draft.anew;
+            codebase.setHash(draft, groups.dataRow(ROW_START, draft), false);
             return NOTHING;
         }
 
-        private boolean findMeanings(int index) {
-            Definition draft = drafts[index];
-            draft.standIn = null;
-            int data = nodes.dataNamesAt(draft.typeNode) | nodes.dataNamesAt(draft.termNode);
-            int terms = nodes.termNamesAt(draft.termNode);
+        /** Finds what the names in a draft mean; answers whether there is something for each. */
+        private boolean findMeanings(int draft, int first) {
+            int data = codebase.dataNames(draft);
+            int terms = codebase.termNames(draft);
+            int slot = 0;
             boolean areThere = true;
-            for (int name = 0; name < NAMES; name++) {
-                boolean isData = (data >> name & 1) != 0;
-                boolean isTerm = (terms >> name & 1) != 0;
-                draft.meant[name] = isData ? meaning(name, true, count) : null;
-                draft.meant[NAMES + name] = isTerm ? meaning(name, false, count) : null;
-                areThere = areThere && (!isData || draft.meant[name] != null);
-                areThere = areThere && (!isTerm || draft.meant[NAMES + name] != null);
+            for (int i = 0; i < 2 * NAMES; i++) {
+                boolean isData = i < NAMES;
+                int name = isData ? i : i - NAMES;
+                if (((isData ? data : terms) >> name & 1) == 0) {
+                    continue;
+                }
+                int found = meaning(name, isData, first);
+                codebase.setMeaning(draft, slot, found);
+                areThere = areThere && found != NONE;
+                slot++;
             }
             return areThere;
         }
 
-        /** What a name means: one of the first staged ones, or what is in the branch, null for none. */
-        private Definition meaning(int name, boolean isData, int first) {
+        /** What a name means: one of the first staged ones, or what is in the branch, NONE for none. */
+        private int meaning(int name, boolean isData, int first) {
             int index = indexOf(name);
-            if (index != NONE && index < first && drafts[index].isData == isData) {
+            if (index != NONE && index < first && codebase.isData(drafts[index]) == isData) {
                 return drafts[index];
             }
-            Definition there = branches.at(name);
-            return there != null && there.isData == isData ? there : null;
+            int there = branches.at(name);
+            return there != NONE && codebase.isData(there) == isData ? there : NONE;
         }
 
         /** Keeps the drafts, in which there is no fault; answers how many are new. */
         int settle() {
             int fresh = 0;
             for (int i = 0; i < count; i++) {
-                if (drafts[i].isData) {
+                if (codebase.isData(drafts[i])) {
                     groups.setOnly(drafts[i]);
                     fresh += codebase.settle(groups);
                 }
             }
             groups.clear();
             for (int i = 0; i < count; i++) {
-                if (!drafts[i].isData) {
+                if (!codebase.isData(drafts[i])) {
                     groups.add(drafts[i]);
                 }
             }
@@ -2045,44 +2324,38 @@ public final class HashedCommons {
             return fresh;
         }
 
-        private Definition settled(int index) {
-            Definition draft = drafts[index];
-            return draft.standIn != null ? draft.standIn : draft;
-        }
-
         /** The hashes that the names have become the new ones; of two for one hash the later counts. */
         void noteChanges() {
             for (int i = 0; i < count; i++) {
-                Definition old = branches.at(names[i]);
-                if (old != null) {
-                    old.became = settled(i);
-                }
+                codebase.setBecame(branches.at(names[i]), codebase.settledFor(drafts[i]));
             }
             for (int i = 0; i < count; i++) {
-                Definition old = branches.at(names[i]);
-                if (old != null && old.became == old) {
-                    old.became = null;
+                int old = branches.at(names[i]);
+                if (codebase.became(old) == old) {
+                    codebase.setBecame(old, NONE);
                 }
             }
         }
 
         void giveNames() {
             for (int i = 0; i < count; i++) {
-                branches.give(names[i], settled(i));
+                branches.give(names[i], codebase.settledFor(drafts[i]));
             }
         }
     }
 
-    /** The patches, one behind the other in two lists: what becomes another, and what it becomes. */
+    /** The patches, one behind the other: each hash that is kept, and what it becomes. */
     private static final class Patches {
         private final Codebase codebase;
-        private final ArrayList<Definition> froms = new ArrayList<Definition>();
-        private final ArrayList<Definition> tos = new ArrayList<Definition>();
+        /** What becomes another in the high half of each number, and what it becomes in the low one. */
+        private final Row entries;
         private final int[] starts = new int[MOST_PATCHES + 1];
         private int count;
+        private int end;
 
         Patches(Codebase codebase) {
             this.codebase = codebase;
+            entries = codebase.furtherRow();
         }
 
         int patchCount() {
@@ -2094,125 +2367,180 @@ public final class HashedCommons {
         }
 
         private int startOf(int patch) {
-            return patch >= 0 && patch <= count && patch < starts.length ? starts[patch] : froms.size();
-        }
-
-        private int endOf(int patch) {
-            return Math.min(startOf(patch + 1), froms.size());
+            return patch >= 0 && patch <= count && patch < starts.length ? starts[patch] : end;
         }
 
         int sizeOf(int patch) {
-            return endOf(patch) - startOf(patch);
+            return startOf(patch + 1) - startOf(patch);
         }
 
-        private void add(Definition from, Definition to) {
-            froms.add(from);
-            tos.add(to);
+        private int from(int index) {
+            return (int) (entries.at(index) >> 32);
+        }
+
+        private int to(int index) {
+            return (int) entries.at(index);
+        }
+
+        private void set(int index, int from, int to) {
+            entries.put(index, (long) from << 32 | to);
+        }
+
+        private void add(int from, int to) {
+            if (codebase.hasRoomFor(0, PATCH_RESERVE)) {
+                set(end, from, to);
+                end++;
+            }
         }
 
         private void close() {
             if (count < MOST_PATCHES) {
                 count++;
-                starts[count] = froms.size();
+                starts[count] = end;
             }
         }
 
         void markAll() {
-            for (int i = 0; i < froms.size(); i++) {
-                codebase.mark(froms.get(i));
-                codebase.mark(tos.get(i));
+            for (int i = 0; i < end; i++) {
+                codebase.mark(from(i));
+                codebase.mark(to(i));
             }
         }
 
         void addChanges() {
-            for (int i = 0; i < codebase.size(); i++) {
-                Definition definition = codebase.at(i);
-                if (definition != null && definition.became != null) {
-                    add(definition, definition.became);
+            for (int i = 0; i < codebase.keptCount(); i++) {
+                int definition = codebase.at(i);
+                if (codebase.became(definition) != NONE) {
+                    add(definition, codebase.became(definition));
                 }
             }
             close();
         }
 
+        /** Notes at each definition that a patch keeps what is kept with it. */
         private void setFollowing(int patch, boolean isFollowed) {
-            int end = endOf(patch);
-            for (int i = startOf(patch); i < end; i++) {
-                froms.get(i).follow = isFollowed ? tos.get(i) : null;
+            int until = startOf(patch + 1);
+            for (int i = startOf(patch); i < until; i++) {
+                codebase.setFollow(from(i), isFollowed ? to(i) : NONE);
             }
         }
 
-        /** The last one of what follows, ahead of what would come again. */
-        private Definition lastOf(Definition definition) {
-            codebase.beginMarks();
-            codebase.mark(definition);
-            Definition at = definition;
-            for (int i = 0; i < codebase.size() && at.follow != null && !codebase.isMarked(at.follow); i++) {
-                at = at.follow;
-                codebase.mark(at);
+        /** Notes at each definition that a patch keeps what it becomes by it, itself perhaps. */
+        private void noteLasts(int patch) {
+            setFollowing(patch, true);
+            int until = startOf(patch + 1);
+            for (int i = startOf(patch); i < until; i++) {
+                if (codebase.became(from(i)) == NONE) {
+                    follow(from(i));
+                }
             }
-            return at;
+            setFollowing(patch, false);
+        }
+
+        /**
+         * Goes on from a definition until nothing follows, one comes again, or it is known what comes
+         * of one; then notes at all that were passed what they become.
+         */
+        private void follow(int start) {
+            codebase.beginMarks();
+            codebase.mark(start);
+            int at = start;
+            int next = codebase.follow(at);
+            for (int i = 0; i < end && next != NONE && !codebase.isMarked(next)
+                && codebase.became(next) == NONE; i++) {
+                codebase.mark(next);
+                at = next;
+                next = codebase.follow(at);
+            }
+            if (next == NONE) {
+                notePassed(start, at, at);
+            } else if (codebase.became(next) != NONE) {
+                notePassed(start, next, codebase.became(next));
+            } else {
+                notePassed(start, next, at);
+                noteRing(next, at);
+            }
+        }
+
+        private void notePassed(int start, int behind, int last) {
+            int at = start;
+            for (int i = 0; i < end && at != behind; i++) {
+                codebase.setBecame(at, last);
+                at = codebase.follow(at);
+            }
+        }
+
+        /** In a ring each one becomes the one ahead of it. */
+        private void noteRing(int start, int aheadOfStart) {
+            int ahead = aheadOfStart;
+            int at = start;
+            for (int i = 0; i < end && codebase.became(at) == NONE; i++) {
+                codebase.setBecame(at, ahead);
+                ahead = at;
+                at = codebase.follow(at);
+            }
+        }
+
+        private int lastOf(int definition) {
+            int last = codebase.became(definition);
+            return last == NONE ? definition : last;
         }
 
         /** Notes at each definition what it becomes by a patch, if that is another one. */
         void noteChanges(int patch) {
-            setFollowing(patch, true);
-            int end = endOf(patch);
-            for (int i = startOf(patch); i < end; i++) {
-                Definition last = lastOf(froms.get(i));
-                froms.get(i).became = last == froms.get(i) ? null : last;
+            noteLasts(patch);
+            int until = startOf(patch + 1);
+            for (int i = startOf(patch); i < until; i++) {
+                if (codebase.became(from(i)) == from(i)) {
+                    codebase.setBecame(from(i), NONE);
+                }
             }
-            setFollowing(patch, false);
         }
 
         int addComposed(int patch, int other) {
-            int made = froms.size();
-            int end = endOf(patch);
+            int made = end;
+            int until = startOf(patch + 1);
+            noteLasts(patch);
+            for (int i = startOf(patch); i < until; i++) {
+                add(from(i), lastOf(from(i)));
+            }
+            codebase.forgetChanges();
+            int madeUntil = end;
+            noteLasts(other);
+            for (int i = made; i < madeUntil; i++) {
+                set(i, from(i), lastOf(to(i)));
+            }
             setFollowing(patch, true);
-            for (int i = startOf(patch); i < end; i++) {
-                add(froms.get(i), lastOf(froms.get(i)));
+            until = startOf(other + 1);
+            for (int i = startOf(other); i < until; i++) {
+                if (codebase.follow(from(i)) == NONE) {
+                    add(from(i), lastOf(from(i)));
+                }
             }
             setFollowing(patch, false);
-            setFollowing(other, true);
-            for (int i = made; i < froms.size(); i++) {
-                tos.set(i, lastOf(tos.get(i)));
-            }
-            end = endOf(other);
-            for (int i = startOf(other); i < end; i++) {
-                if (indexIn(patch, froms.get(i)) == NONE) {
-                    add(froms.get(i), lastOf(froms.get(i)));
-                }
-            }
-            setFollowing(other, false);
+            codebase.forgetChanges();
             close();
             return count - 1;
-        }
-
-        private int indexIn(int patch, Definition from) {
-            int end = endOf(patch);
-            for (int i = startOf(patch); i < end; i++) {
-                if (froms.get(i) == from) {
-                    return i;
-                }
-            }
-            return NONE;
         }
 
         /** Answers the number of conflicts. */
         int addMerged(int patch, int other) {
             int conflicts = 0;
-            int end = endOf(patch);
-            for (int i = startOf(patch); i < end; i++) {
-                add(froms.get(i), tos.get(i));
+            int until = startOf(patch + 1);
+            for (int i = startOf(patch); i < until; i++) {
+                add(from(i), to(i));
             }
-            end = endOf(other);
-            for (int i = startOf(other); i < end; i++) {
-                int there = indexIn(patch, froms.get(i));
+            setFollowing(patch, true);
+            until = startOf(other + 1);
+            for (int i = startOf(other); i < until; i++) {
+                int there = codebase.follow(from(i));
                 if (there == NONE) {
-                    add(froms.get(i), tos.get(i));
+                    add(from(i), to(i));
                 } else {
-                    conflicts += tos.get(there) == tos.get(i) ? 0 : 1;
+                    conflicts += there == to(i) ? 0 : 1;
                 }
             }
+            setFollowing(patch, false);
             close();
             return conflicts;
         }
@@ -2224,19 +2552,17 @@ public final class HashedCommons {
         private final Checker checker;
         private final Codebase codebase;
         private final Branches branches;
-        private final Definition[] originals = new Definition[MOST_STAGED];
-        private final Definition[] copies = new Definition[MOST_STAGED];
+        private final int[] originals = new int[MOST_STAGED];
         private final boolean[] isTodo = new boolean[NAMES];
         private int carried;
+        private int old;
+        private int next;
 
         Carrier(Groups groups, Checker checker, Codebase codebase, Branches branches) {
             this.groups = groups;
             this.checker = checker;
             this.codebase = codebase;
             this.branches = branches;
-            for (int i = 0; i < MOST_STAGED; i++) {
-                copies[i] = new Definition();
-            }
         }
 
         int todoCount() {
@@ -2260,80 +2586,79 @@ public final class HashedCommons {
             return NONE;
         }
 
-        /**
-         * Goes through all that can be reached from the names of the branch; what has become another
-         * one already is left out. Answers how many definitions were replaced.
-         */
-        int carryAlong() {
+        /** How many definitions were replaced. */
+        int carriedCount() {
+            return carried;
+        }
+
+        /** Begins to go through all that can be reached from the names of the branch. */
+        void begin() {
             for (int name = 0; name < NAMES; name++) {
                 isTodo[name] = false;
             }
             carried = 0;
+            next = 0;
+            old = codebase.keptCount();
             codebase.beginMarks();
-            branches.markNames(codebase);
+            for (int name = 0; name < NAMES; name++) {
+                codebase.mark(branches.at(name));
+            }
             codebase.sweep();
-            int old = codebase.size();
-            for (int start = 0; start < old; start++) {
-                if (!codebase.isStart(start) || !codebase.isMarked(codebase.at(start))) {
-                    continue;
-                }
-                addUnchanged(start, codebase.groupEnd(start));
-                for (int i = 0; i < MOST_STAGED && groups.nextGroup(); i++) {
-                    carryGroup();
+            groups.clear();
+        }
+
+        /** Finds the next group among what has not become another one already. */
+        boolean findGroup() {
+            boolean isFound = groups.nextGroup();
+            for (int i = next; i < old && !isFound; i++) {
+                if (codebase.isStart(i)) {
+                    next = codebase.endFrom(i);
+                    addUnchanged(i, next);
+                    isFound = groups.nextGroup();
                 }
             }
-            return carried;
+            return isFound;
         }
 
         private void addUnchanged(int start, int end) {
             groups.clear();
-            for (int i = start; i <= end; i++) {
-                Definition definition = codebase.at(i);
-                if (definition != null && definition.became == null) {
+            for (int i = start; i < end; i++) {
+                int definition = codebase.at(i);
+                if (codebase.isMarked(definition) && codebase.became(definition) == NONE) {
                     groups.add(definition);
                 }
             }
             groups.connect();
         }
 
-        private void carryGroup() {
-            int size = groups.size();
+        /** Replaces the group that was found, if it is to be; it stays, too, if there is no room. */
+        void carryGroup() {
+            int size = Math.min(groups.size(), originals.length);
             boolean isReplaced = false;
             for (int i = 0; i < size; i++) {
                 originals[i] = groups.member(i);
-                isReplaced = isReplaced || originals[i] != null && originals[i].usesChanged();
+                isReplaced = isReplaced || codebase.usesChanged(originals[i]);
             }
             if (!isReplaced) {
                 return;
             }
-            copyOriginals(size);
-            boolean haveTypes = codebase.size() + size <= MOST_DEFINITIONS;
+            for (int i = 0; i < size; i++) {
+                codebase.copyReplaced(originals[i], FIRST_COPY + i, originals, size);
+            }
+            boolean haveTypes = codebase.hasRoomFor(carried, CARRY_RESERVE);
             for (int i = 0; i < size && haveTypes; i++) {
-                haveTypes = copies[i].isData || checker.hasItsType(copies[i]);
+                int copy = FIRST_COPY + i;
+                haveTypes = codebase.isData(copy) || checker.hasItsType(copy);
+                groups.setMember(i, copy);
             }
             if (!haveTypes) {
                 leaveToDo(size);
                 return;
             }
-            for (int i = 0; i < size; i++) {
-                groups.setMember(i, copies[i]);
-            }
             groups.hashMembers();
             codebase.settle(groups);
             for (int i = 0; i < size; i++) {
-                takeCopy(i);
-            }
-        }
-
-        private void copyOriginals(int size) {
-            for (int i = 0; i < size; i++) {
-                originals[i].standIn = copies[i];
-            }
-            for (int i = 0; i < size; i++) {
-                copies[i].copyReplaced(originals[i]);
-            }
-            for (int i = 0; i < size; i++) {
-                originals[i].standIn = null;
+                takeCopy(originals[i], codebase.settledFor(FIRST_COPY + i));
             }
         }
 
@@ -2345,17 +2670,10 @@ public final class HashedCommons {
             }
         }
 
-        private void takeCopy(int index) {
-            Definition original = originals[index];
-            Definition copy = copies[index];
-            Definition made = copy.standIn != null ? copy.standIn : copy;
-            if (made != original) {
-                original.became = made;
-                original.isCarried = true;
+        private void takeCopy(int original, int made) {
+            if (made != NONE && made != original) {
+                codebase.setCarried(original, made);
                 carried++;
-            }
-            if (copy.isKept) {
-                copies[index] = new Definition();
             }
         }
     }
@@ -2363,9 +2681,10 @@ public final class HashedCommons {
     /** Works terms out, with frames of its own in place of a recursion. */
     private static final class Worker {
         private final Nodes nodes;
+        private final Codebase codebase;
         private final int[] frameNodes = new int[MOST_FRAMES];
         private final int[] frameSteps = new int[MOST_FRAMES];
-        private final Definition[] frameDefinitions = new Definition[MOST_FRAMES];
+        private final int[] frameDefinitions = new int[MOST_FRAMES];
         private final Cell[] frameScopes = new Cell[MOST_FRAMES];
         private final Cell[] frameHeld = new Cell[MOST_FRAMES];
         private final Cell first = new Cell();
@@ -2376,13 +2695,14 @@ public final class HashedCommons {
         private int underWay;
         private boolean isStopped;
 
-        Worker(Nodes nodes) {
+        Worker(Nodes nodes, Codebase codebase) {
             this.nodes = nodes;
+            this.codebase = codebase;
             last = first;
         }
 
         /** Answers the value, which holds until the next call, or null if it was stopped. */
-        Cell workOut(Definition term) {
+        Cell workOut(int term) {
             last = first;
             answer = null;
             frames = 0;
@@ -2390,7 +2710,7 @@ public final class HashedCommons {
             underWay = 0;
             isStopped = false;
             if (isBegun()) {
-                push(term.termNode, term, null);
+                push(codebase.termNode(term), term, null);
             }
             for (int i = 0; i < MOST_STEPS && frames > 0 && !isStopped; i++) {
                 advance(frames - 1);
@@ -2408,7 +2728,7 @@ public final class HashedCommons {
             return true;
         }
 
-        private void push(int node, Definition in, Cell scope) {
+        private void push(int node, int in, Cell scope) {
             if (frames >= MOST_FRAMES) {
                 isStopped = true;
                 return;
@@ -2587,12 +2907,12 @@ public final class HashedCommons {
                 finish(answer);
                 return;
             }
-            Definition named = frameDefinitions[top] == null ? null : frameDefinitions[top].termAt(nodes.aAt(node));
-            if (named == null) {
+            int named = codebase.termAt(frameDefinitions[top], nodes.aAt(node));
+            if (named == NONE) {
                 isStopped = true;
             } else if (isBegun()) {
                 frameSteps[top]++;
-                push(named.termNode, named, null);
+                push(codebase.termNode(named), named, null);
             }
         }
 
@@ -2713,16 +3033,16 @@ public final class HashedCommons {
             }
         }
 
-        void toldType(Definition term) {
-            type(term.typeNode, term, 0);
+        void toldType(int term) {
+            type(codebase.typeNode(term), term, 0);
         }
 
-        void body(Definition definition) {
-            if (!definition.isData) {
-                term(definition.termNode, definition, 0, 0);
+        void body(int definition) {
+            int at = codebase.termNode(definition);
+            if (!codebase.isData(definition)) {
+                term(at, definition, 0, 0);
                 return;
             }
-            int at = definition.termNode;
             for (int i = 0; i < MOST_CONSTRUCTORS && at >= 0; i++) {
                 put(i == 0 ? "" : " | ");
                 constructor(i);
@@ -2734,8 +3054,8 @@ public final class HashedCommons {
             }
         }
 
-        private void named(Definition definition) {
-            if (definition == null) {
+        private void named(int definition) {
+            if (definition == NONE) {
                 return;
             }
             int name = branches.lowestNameOf(definition);
@@ -2746,17 +3066,18 @@ public final class HashedCommons {
             put('#');
             int digits = digitsNeeded(definition);
             for (int i = 0; i < digits; i++) {
-                int digit = digitOf(definition.hash, i);
+                int digit = digitOf(codebase.hashAt(definition), i);
                 put((char) (digit < 10 ? '0' + digit : 'a' + digit - 10));
             }
         }
 
-        private int digitsNeeded(Definition definition) {
+        private int digitsNeeded(int definition) {
+            long hash = codebase.hashAt(definition);
             int digits = 1;
-            for (int i = 0; i < codebase.size(); i++) {
-                Definition other = codebase.at(i);
-                if (other != null && other != definition && other.isKept) {
-                    digits = Math.max(digits, digitsApart(other.hash, definition.hash));
+            for (int i = 0; i < codebase.keptCount(); i++) {
+                int other = codebase.at(i);
+                if (other != definition) {
+                    digits = Math.max(digits, digitsApart(codebase.hashAt(other), hash));
                 }
             }
             return digits;
@@ -2774,7 +3095,7 @@ public final class HashedCommons {
             return (int) (hash >>> 60 - 4 * index & 15);
         }
 
-        private void type(int node, Definition in, int depth) {
+        private void type(int node, int in, int depth) {
             if (depth > DEEPEST) {
                 return;
             }
@@ -2787,8 +3108,8 @@ public final class HashedCommons {
                     put(')');
                     break;
                 case 'd':
-                    Definition data = in.dataAt(nodes.aAt(node));
-                    if (in.isData && data == in) {
+                    int data = codebase.dataAt(in, nodes.aAt(node));
+                    if (data == in) {
                         put('.');
                     } else {
                         named(data);
@@ -2799,7 +3120,7 @@ public final class HashedCommons {
             }
         }
 
-        private void term(int node, Definition in, int binders, int depth) {
+        private void term(int node, int in, int binders, int depth) {
             if (depth > DEEPEST) {
                 return;
             }
@@ -2827,7 +3148,7 @@ public final class HashedCommons {
                     put(')');
                     break;
                 case 'r':
-                    named(in.termAt(a));
+                    named(codebase.termAt(in, a));
                     break;
                 case 'm':
                     construction(node, in, binders, depth + 1);
@@ -2840,7 +3161,7 @@ public final class HashedCommons {
             }
         }
 
-        private void inBrackets(int node, Definition in, int binders, int depth) {
+        private void inBrackets(int node, int in, int binders, int depth) {
             boolean isBinding = nodes.kindAt(node) == 'l';
             put('(');
             if (isBinding) {
@@ -2881,8 +3202,8 @@ public final class HashedCommons {
             }
         }
 
-        private void construction(int node, Definition in, int binders, int depth) {
-            named(in.dataAt(nodes.aAt(node)));
+        private void construction(int node, int in, int binders, int depth) {
+            named(codebase.dataAt(in, nodes.aAt(node)));
             put('.');
             constructor(nodes.bAt(node));
             if (nodes.cAt(node) >= 0) {
@@ -2892,11 +3213,11 @@ public final class HashedCommons {
             }
         }
 
-        private void selection(int node, Definition in, int binders, int depth) {
+        private void selection(int node, int in, int binders, int depth) {
             put('(');
             term(nodes.bAt(node), in, binders, depth);
-            Definition data = in.dataAt(nodes.aAt(node));
-            int constructor = data == null ? NONE : data.termNode;
+            int data = codebase.dataAt(in, nodes.aAt(node));
+            int constructor = codebase.isData(data) ? codebase.termNode(data) : NONE;
             int branch = nodes.cAt(node);
             for (int i = 0; i < MOST_CONSTRUCTORS && branch >= 0; i++) {
                 put(" | ");
