@@ -43,7 +43,7 @@ public final class HashedCommons {
     private static final int CARRY_RESERVE = 64;
     private static final int PATCH_RESERVE = 32;
     private static final int LEAST_PARTS = 4;
-    private static final int BUCKETS = 4096;
+    private static final int ROWS_IN_BUCKET = 4;
     /** Drafts of what is staged, and then of what is carried along, are the first definitions. */
     private static final int FIRST_COPY = MOST_STAGED;
     private static final int DRAFTS = 2 * MOST_STAGED;
@@ -960,8 +960,9 @@ public final class HashedCommons {
         private final Row facts = new Row(new Row[MOST_PARTS], partsLeft);
         private final Row meanings = new Row(new Row[MOST_PARTS], partsLeft);
         private final Row order = new Row(new Row[MOST_PARTS], partsLeft);
-        private final int[] buckets = new int[BUCKETS];
+        private final Row buckets = new Row(new Row[MOST_PARTS], partsLeft);
         private final int[] settled = new int[DRAFTS];
+        private int bucketCount = PART;
         private int rows = DRAFTS;
         private int free;
         private int kept;
@@ -1085,12 +1086,12 @@ public final class HashedCommons {
             facts.put(definition * FIELDS + (isAnew ? ANEW : HASH), hash);
         }
 
-        private static int bucketOf(long hash) {
-            return (int) (hash ^ hash >>> 32) & BUCKETS - 1;
+        private int bucketOf(long hash) {
+            return (int) (hash ^ hash >>> 32) & bucketCount - 1;
         }
 
         private int find(long hash) {
-            int found = buckets[bucketOf(hash)];
+            int found = (int) buckets.at(bucketOf(hash));
             for (int i = 0; i < rows && found != 0; i++) {
                 if (facts.at(found * FIELDS + HASH) == hash) {
                     return found;
@@ -1102,8 +1103,8 @@ public final class HashedCommons {
 
         private void link(int row) {
             int bucket = bucketOf(hashAt(row));
-            facts.put(row * FIELDS + NEXT, buckets[bucket]);
-            buckets[bucket] = row;
+            facts.put(row * FIELDS + NEXT, buckets.at(bucket));
+            buckets.put(bucket, row);
         }
 
         // What is kept
@@ -1160,6 +1161,10 @@ public final class HashedCommons {
             }
             int row = dropped;
             if (row == NONE) {
+                if (rows > ROWS_IN_BUCKET * bucketCount && hasRoomFor(bucketCount, CARRY_RESERVE)) {
+                    bucketCount *= 2;
+                    linkAnew();
+                }
                 row = newRow();
                 facts.put(row * FIELDS + HASH, hashAt(draft));
                 facts.put(row * FIELDS + STATE, 0);
@@ -1235,7 +1240,9 @@ public final class HashedCommons {
 
         /** Frees what was dropped, but for hashes that tests, jobs or machines know. */
         private void linkAnew() {
-            Arrays.fill(buckets, 0);
+            for (int i = 0; i < bucketCount; i++) {
+                buckets.put(i, 0);
+            }
             free = 0;
             for (int row = rows - 1; row >= DRAFTS; row--) {
                 if (facts.at(row * FIELDS + STATE) != 0) {

@@ -67,6 +67,12 @@ final class Model {
 
     private static final class Stop extends RuntimeException { }
 
+    /**
+     * The document does not tell the answer: a term would be worked out that lost its types, since a hash
+     * in it is that of another definition.
+     */
+    static final class Unclear extends RuntimeException { }
+
     static final class Job {
         long hash;
         int machine;
@@ -76,8 +82,8 @@ final class Model {
     final List<int[]> nodes = new ArrayList<>();
     final List<Staged> staged = new ArrayList<>();
     int uniques;
-    final Map<Long, Def> made = new HashMap<>();
-    final Set<Long> codebase = new TreeSet<>();
+    /** The codebase, in the order in which definitions were made. */
+    final Map<Long, Def> made = new LinkedHashMap<>();
     final List<Map<Integer, Long>> branchNames = new ArrayList<>(List.of(new TreeMap<>()));
     final List<Integer> branchLast = new ArrayList<>(Collections.singletonList(null));
     int present;
@@ -277,108 +283,145 @@ final class Model {
         return hash;
     }
 
-    /** What is staged as definitions by names, with their hashes, put into `made` aside. */
-    private LinkedHashMap<Integer, Long> look(Map<Long, Def> aside) throws Fault {
-        LinkedHashMap<Integer, Long> hashes = new LinkedHashMap<>();
-        for (Staged s : staged) {
-            if (!s.isData) {
-                continue;
+    private int stagedIndex(int name, boolean isData) {
+        for (int i = 0; i < staged.size(); i++) {
+            if (staged.get(i).name == name && staged.get(i).isData == isData) {
+                return i;
             }
-            List<Tree> constructors = new ArrayList<>();
-            try {
-                for (int at = s.term; at >= 0; at = nodes.get(at)[2]) {
-                    int argument = nodes.get(at)[1];
-                    constructors.add(argument < 0 ? null : typeTree(argument,
-                        n -> n == s.name ? SELF : hashes.containsKey(n) ? hashes.get(n) : inBranch(n, true)));
+        }
+        return -1;
+    }
+
+    /** A staged one ahead of a place is its index, what is in the branch its hash. */
+    private Object meant(int name, boolean isData, int ahead) {
+        int index = stagedIndex(name, isData);
+        return index >= 0 && index < ahead ? (Object) index : inBranch(name, isData);
+    }
+
+    /** What is staged as definitions, in the order of staging; the hashes of data are put into `hashes`. */
+    private List<Def> look(Map<Object, Object> hashes) throws Fault {
+        List<Def> protos = new ArrayList<>(Collections.nCopies(staged.size(), null));
+        for (int i = 0; i < staged.size(); i++) {
+            Staged s = staged.get(i);
+            if (s.isData) {
+                final int ahead = i;
+                List<Tree> constructors = new ArrayList<>();
+                try {
+                    for (int at = s.term; at >= 0; at = nodes.get(at)[2]) {
+                        int argument = nodes.get(at)[1];
+                        constructors.add(argument < 0 ? null
+                            : typeTree(argument, n -> n == s.name ? SELF : meant(n, true, ahead)));
+                    }
+                } catch (NoSuchElementException e) {
+                    throw new Fault('n', s.name);
                 }
-            } catch (NoSuchElementException e) {
-                throw new Fault('n', s.name);
-            }
-            if (constructors.size() > 4) {
-                throw new Fault('k', s.name);
-            }
-            Def def = new Def(true, s.own, null, null, constructors);
-            long hash = fold(row(def, false, Map.of()));
-            aside.put(hash, def);
-            hashes.put(s.name, hash);
-        }
-        List<Staged> terms = staged.stream().filter(s -> !s.isData).toList();
-        Map<Integer, Integer> indices = new HashMap<>();
-        terms.forEach(s -> indices.put(s.name, indices.size()));
-        List<Def> protos = new ArrayList<>();
-        for (Staged s : terms) {
-            try {
-                Meaning data = n -> hashes.containsKey(n) ? hashes.get(n) : inBranch(n, true);
-                Meaning named = n -> indices.containsKey(n) ? (Object) indices.get(n) : inBranch(n, false);
-                Tree type = typeTree(s.type, data);
-                protos.add(new Def(false, 0, type, termTree(s.term, data, named), null));
-            } catch (NoSuchElementException e) {
-                throw new Fault('n', s.name);
+                if (constructors.size() > 4) {
+                    throw new Fault('k', s.name);
+                }
+                protos.set(i, new Def(true, s.own, null, null, constructors));
+                hashes.put(i, hashOf(row(replace(protos.get(i), hashes), false, Map.of())));
             }
         }
-        for (int i = 0; i < protos.size(); i++) {
-            if (!isTyped(protos.get(i), protos, aside)) {
-                throw new Fault('t', terms.get(i).name);
+        for (int i = 0; i < staged.size(); i++) {
+            Staged s = staged.get(i);
+            if (!s.isData) {
+                Meaning data = n -> meant(n, true, 8);
+                try {
+                    Tree type = typeTree(s.type, data);
+                    protos.set(i, new Def(false, 0, type, termTree(s.term, data, n -> meant(n, false, 8)), null));
+                } catch (NoSuchElementException e) {
+                    throw new Fault('n', s.name);
+                }
             }
         }
-        Map<Integer, Long> done = settle(protos, aside);
-        for (int i = 0; i < protos.size(); i++) {
-            hashes.put(terms.get(i).name, done.get(i));
+        for (int i = 0; i < staged.size(); i++) {
+            if (!staged.get(i).isData && !new Types(protos, hashes).has(protos.get(i))) {
+                throw new Fault('t', staged.get(i).name);
+            }
         }
-        return hashes;
+        return protos;
     }
 
     // Groups and hashes
 
-    /** Hashes terms that refer to one another by their indices. */
-    private Map<Integer, Long> settle(List<Def> protos, Map<Long, Def> aside) {
-        Map<Integer, Set<Integer>> reach = new HashMap<>();
+    /** Makes definitions of what is staged; each hash is kept once. */
+    private Map<Integer, Long> settleStaged(List<Def> protos) {
+        Map<Object, Object> done = new HashMap<>();
+        List<Integer> terms = new ArrayList<>();
         for (int i = 0; i < protos.size(); i++) {
+            if (protos.get(i).isData) {
+                Def def = replace(protos.get(i), done);
+                long hash = hashOf(row(def, false, Map.of()));
+                made.putIfAbsent(hash, def);
+                done.put(i, hash);
+            } else {
+                terms.add(i);
+            }
+        }
+        settle(terms, protos, done);
+        Map<Integer, Long> given = new LinkedHashMap<>();
+        for (int i = 0; i < protos.size(); i++) {
+            given.put(staged.get(i).name, (Long) done.get(i));
+        }
+        return given;
+    }
+
+    /** Keeps terms that refer to one another by their indices; the first that can be is made first. */
+    private void settle(List<Integer> terms, List<Def> protos, Map<Object, Object> done) {
+        Map<Integer, Set<Integer>> reach = new HashMap<>();
+        for (int i : terms) {
             Set<Integer> seen = new TreeSet<>();
             List<Integer> open = new ArrayList<>(List.of(i));
             while (!open.isEmpty()) {
                 for (Object ref : protos.get(open.remove(0)).refs()) {
-                    if (ref instanceof Integer j && seen.add(j)) {
+                    if (ref instanceof Integer j && terms.contains(j) && seen.add(j)) {
                         open.add(j);
                     }
                 }
             }
             reach.put(i, seen);
         }
-        Map<Integer, Long> done = new TreeMap<>();
-        while (done.size() < protos.size()) {
-            for (int i = 0; i < protos.size(); i++) {
+        while (!done.keySet().containsAll(terms)) {
+            for (int i : terms) {
                 final int at = i;
                 Set<Integer> group = new TreeSet<>(List.of(i));
                 reach.get(i).stream().filter(j -> reach.get(j).contains(at)).forEach(group::add);
                 Set<Integer> others = new TreeSet<>(reach.get(i));
                 others.removeAll(group);
                 if (!done.containsKey(i) && done.keySet().containsAll(others)) {
-                    hashGroup(new ArrayList<>(group), protos, done, reach.get(i).contains(i), aside);
+                    hashGroup(new ArrayList<>(group), protos, done, reach.get(i).contains(i));
+                    break;
                 }
             }
         }
-        return done;
     }
 
-    private void hashGroup(List<Integer> group, List<Def> protos, Map<Integer, Long> done, boolean isGroup,
-            Map<Long, Def> aside) {
-        Map<Object, Object> known = new HashMap<>(done);
+    private void hashGroup(List<Integer> group, List<Def> protos, Map<Object, Object> done, boolean isGroup) {
         List<Def> members = new ArrayList<>();
-        for (int i : group) {
-            members.add(replace(protos.get(i), known));
-        }
+        group.forEach(i -> members.add(replace(protos.get(i), done)));
         if (!isGroup) {
-            long hash = fold(row(members.get(0), false, Map.of()));
+            long hash = hashOf(row(members.get(0), false, Map.of()));
+            made.putIfAbsent(hash, members.get(0));
             done.put(group.get(0), hash);
-            aside.put(hash, members.get(0));
             return;
         }
         List<Integer> order = new ArrayList<>();
+        List<Long> hashes = groupHashes(group, members, order);
+        for (int place = 0; place < order.size(); place++) {
+            done.put(group.get(order.get(place)), hashes.get(place));
+        }
+        for (int place = 0; place < order.size(); place++) {
+            made.putIfAbsent(hashes.get(place), replace(members.get(order.get(place)), done));
+        }
+    }
+
+    /** The hashes of the members of a group by their places; the order of these is put into `order`. */
+    private static List<Long> groupHashes(List<Integer> group, List<Def> members, List<Integer> order) {
         for (int i = 0; i < group.size(); i++) {
             order.add(i);
         }
-        order.sort((x, y) -> Long.compare(fold(row(members.get(x), true, Map.of())), fold(row(members.get(y), true, Map.of()))));
+        order.sort((x, y) -> Long.compare(fold(row(members.get(x), true, Map.of())),
+            fold(row(members.get(y), true, Map.of()))));
         Map<Integer, Integer> places = new HashMap<>();
         for (int i = 0; i < order.size(); i++) {
             places.put(group.get(order.get(i)), i);
@@ -386,12 +429,44 @@ final class Model {
         List<Long> row = new ArrayList<>(List.of(32L, (long) group.size()));
         order.forEach(i -> row.addAll(row(members.get(i), false, places)));
         long whole = fold(row);
-        for (int i : group) {
-            done.put(i, fold(List.of(33L, whole, (long) places.get(i))));
+        List<Long> hashes = new ArrayList<>();
+        for (long place = 0; place < order.size(); place++) {
+            hashes.add(hashOf(List.of(33L, whole, place)));
         }
-        for (int i = 0; i < group.size(); i++) {
-            aside.put(done.get(group.get(i)), replace(members.get(i), new HashMap<>(done)));
+        return hashes;
+    }
+
+    /** The hashes of all that is in the codebase, found anew from the rows. */
+    private Map<Long, Long> anew() {
+        Map<Object, Object> done = new HashMap<>();
+        Map<Long, Long> all = new HashMap<>();
+        while (all.size() < made.size()) {
+            for (long hash : made.keySet()) {
+                List<Long> group = new ArrayList<>(made.keySet());
+                group.retainAll(groupAmong(hash, made.keySet()));
+                Set<Long> others = neededBy(hash);
+                boolean isGroup = others.contains(hash);
+                others.removeAll(group);
+                if (!all.containsKey(hash) && all.keySet().containsAll(others)) {
+                    Map<Object, Object> by = new HashMap<>(done);
+                    List<Integer> indices = new ArrayList<>();
+                    for (int i = 0; i < group.size() && isGroup; i++) {
+                        by.put(group.get(i), i);
+                        indices.add(i);
+                    }
+                    List<Def> members = new ArrayList<>();
+                    group.forEach(h -> members.add(replace(made.get(h), by)));
+                    List<Integer> order = new ArrayList<>(isGroup ? List.of() : List.of(0));
+                    List<Long> hashes = isGroup ? groupHashes(indices, members, order)
+                        : List.of(hashOf(row(members.get(0), false, Map.of())));
+                    for (int place = 0; place < order.size(); place++) {
+                        done.put(group.get(order.get(place)), hashes.get(place));
+                        all.put(group.get(order.get(place)), hashes.get(place));
+                    }
+                }
+            }
         }
+        return all;
     }
 
     private static Def replace(Def def, Map<Object, Object> by) {
@@ -410,6 +485,11 @@ final class Model {
         Object ref = tree.ref == null ? null : by.getOrDefault(tree.ref, tree.ref);
         List<Tree> more = tree.more.stream().map(t -> replace(t, by)).toList();
         return new Tree(tree.kind, tree.a, tree.b, ref, replace(tree.one, by), replace(tree.two, by), more);
+    }
+
+    /** The hash of a definition. */
+    static long hashOf(List<Long> row) {
+        return fold(row);
     }
 
     static long fold(List<Long> row) {
@@ -463,95 +543,114 @@ final class Model {
 
     // Checking
 
-    private Def find(Object hash, Map<Long, Def> aside) {
-        return aside.containsKey(hash) ? aside.get(hash) : made.get(hash);
-    }
-
-    private boolean isTyped(Def def, List<Def> protos, Map<Long, Def> aside) {
-        return def.type.equals(infer(def.term, new ArrayList<>(), protos, aside));
-    }
-
     private static final Tree INT = Tree.of('j', 0, 0, null, null, null);
 
-    private Tree argument(Object hash, int constructor, Map<Long, Def> aside) {
-        Tree type = find(hash, aside).constructors.get(constructor);
-        return type == null ? null : replace(type, Map.of(SELF, hash));
-    }
+    /** Finds types, in which data is told by its hash; refs are hashes, or indices of protos. */
+    private final class Types {
+        private final List<Def> protos;
+        private final Map<Object, Object> hashes;
 
-    private Tree under(Tree type, Tree term, List<Tree> env, List<Def> protos, Map<Long, Def> aside) {
-        if (type == null) {
-            return null;
+        Types(List<Def> protos, Map<Object, Object> hashes) {
+            this.protos = protos;
+            this.hashes = hashes;
         }
-        List<Tree> inside = new ArrayList<>(env);
-        inside.add(0, type);
-        return infer(term, inside, protos, aside);
-    }
 
-    private Tree infer(Tree t, List<Tree> env, List<Def> protos, Map<Long, Def> aside) {
-        switch (t.kind) {
-            case 'i':
-                return INT;
-            case 'v':
-                return t.a < env.size() ? env.get(t.a) : null;
-            case 'f':
-                Tree to = under(t.one, t.two, env, protos, aside);
-                return to == null ? null : Tree.of('>', 0, 0, null, t.one, to);
-            case 'a':
-                Tree function = infer(t.one, env, protos, aside);
-                Tree given = infer(t.two, env, protos, aside);
-                return function != null && function.kind == '>' && function.one.equals(given) ? function.two : null;
-            case 'o':
-                return INT.equals(infer(t.one, env, protos, aside)) && INT.equals(infer(t.two, env, protos, aside)) ? INT : null;
-            case '?':
-                Tree yes = infer(t.two, env, protos, aside);
-                boolean isOne = yes != null && yes.equals(infer(t.more.get(0), env, protos, aside));
-                return isOne && INT.equals(infer(t.one, env, protos, aside)) ? yes : null;
-            case 'l':
-                return under(infer(t.one, env, protos, aside), t.two, env, protos, aside);
-            case 'r':
-                return t.ref instanceof Integer i ? protos.get(i).type : find(t.ref, aside).type;
-            case 'm':
-                if (t.b >= find(t.ref, aside).constructors.size()) {
-                    return null;
-                }
-                Tree wanted = argument(t.ref, t.b, aside);
-                Tree had = t.one == null ? null : infer(t.one, env, protos, aside);
-                boolean fits = wanted == null ? t.one == null : wanted.equals(had);
-                return fits ? Tree.of('d', 0, 0, t.ref, null, null) : null;
-            default:
-                Def data = find(t.ref, aside);
-                Tree of = infer(t.one, env, protos, aside);
-                if (!Tree.of('d', 0, 0, t.ref, null, null).equals(of) || data.constructors.size() != t.more.size()) {
-                    return null;
-                }
-                Tree common = null;
-                for (int i = 0; i < t.more.size(); i++) {
-                    Tree bound = argument(t.ref, i, aside);
-                    Tree found = bound == null ? infer(t.more.get(i), env, protos, aside)
-                        : under(bound, t.more.get(i), env, protos, aside);
-                    if (found == null || common != null && !common.equals(found)) {
+        boolean has(Def def) {
+            return replace(def.type, hashes).equals(infer(def.term, new ArrayList<>()));
+        }
+
+        private Def find(Object ref) {
+            return ref instanceof Integer i ? protos.get(i) : made.get(ref);
+        }
+
+        private Tree data(Object ref) {
+            return Tree.of('d', 0, 0, hashes.getOrDefault(ref, ref), null, null);
+        }
+
+        private Tree argument(Object ref, int constructor) {
+            Map<Object, Object> by = new HashMap<>(hashes);
+            by.put(SELF, data(ref).ref);
+            return replace(find(ref).constructors.get(constructor), by);
+        }
+
+        private Tree under(Tree type, Tree term, List<Tree> env) {
+            if (type == null) {
+                return null;
+            }
+            List<Tree> inside = new ArrayList<>(env);
+            inside.add(0, type);
+            return infer(term, inside);
+        }
+
+        private boolean isInt(Tree term, List<Tree> env) {
+            return INT.equals(infer(term, env));
+        }
+
+        private Tree infer(Tree t, List<Tree> env) {
+            switch (t.kind) {
+                case 'i':
+                    return INT;
+                case 'v':
+                    return t.a < env.size() ? env.get(t.a) : null;
+                case 'f':
+                    Tree from = replace(t.one, hashes);
+                    Tree to = under(from, t.two, env);
+                    return to == null ? null : Tree.of('>', 0, 0, null, from, to);
+                case 'a':
+                    Tree function = infer(t.one, env);
+                    Tree given = infer(t.two, env);
+                    return function != null && function.kind == '>' && function.one.equals(given) ? function.two : null;
+                case 'o':
+                    return isInt(t.one, env) && isInt(t.two, env) ? INT : null;
+                case '?':
+                    Tree yes = infer(t.two, env);
+                    boolean isOne = yes != null && yes.equals(infer(t.more.get(0), env));
+                    return isOne && isInt(t.one, env) ? yes : null;
+                case 'l':
+                    return under(infer(t.one, env), t.two, env);
+                case 'r':
+                    return replace(find(t.ref).type, hashes);
+                case 'm':
+                    Def of = find(t.ref);
+                    if (!of.isData || t.b >= of.constructors.size()) {
                         return null;
                     }
-                    common = found;
-                }
-                return common;
+                    Tree wanted = argument(t.ref, t.b);
+                    Tree had = t.one == null ? null : infer(t.one, env);
+                    boolean fits = wanted == null ? t.one == null : wanted.equals(had);
+                    return fits ? data(t.ref) : null;
+                default:
+                    return selected(t, env);
+            }
         }
+
+        private Tree selected(Tree t, List<Tree> env) {
+            Def data = find(t.ref);
+            if (!data.isData || !data(t.ref).equals(infer(t.one, env)) || data.constructors.size() != t.more.size()) {
+                return null;
+            }
+            Tree common = null;
+            for (int i = 0; i < t.more.size(); i++) {
+                Tree bound = argument(t.ref, i);
+                Tree found = bound == null ? infer(t.more.get(i), env) : under(bound, t.more.get(i), env);
+                if (found == null || common != null && !common.equals(found)) {
+                    return null;
+                }
+                common = found;
+            }
+            return common;
+        }
+    }
+
+    private boolean isTyped(Def def) {
+        return def.isData || new Types(List.of(), Map.of()).has(def);
     }
 
     // Defining and updating
 
-    private int keep(Map<Long, Def> aside) {
-        int fresh = 0;
-        for (Map.Entry<Long, Def> e : aside.entrySet()) {
-            made.putIfAbsent(e.getKey(), e.getValue());
-            fresh += codebase.add(e.getKey()) ? 1 : 0;
-        }
-        return fresh;
-    }
-
-    private LinkedHashMap<Integer, Long> lookOrThrow(Map<Long, Def> aside) {
+    private List<Def> lookOrThrow() {
         try {
-            return look(aside);
+            return look(new HashMap<>());
         } catch (Fault e) {
             throw new UnsupportedOperationException();
         }
@@ -561,10 +660,11 @@ final class Model {
         if (staged.isEmpty() || staged.stream().anyMatch(s -> names().containsKey(s.name))) {
             throw new IllegalStateException();
         }
-        Map<Long, Def> aside = new HashMap<>();
-        names().putAll(lookOrThrow(aside));
+        List<Def> protos = lookOrThrow();
+        int before = made.size();
+        names().putAll(settleStaged(protos));
         staged.clear();
-        return keep(aside);
+        return made.size() - before;
     }
 
     int update() {
@@ -572,9 +672,7 @@ final class Model {
                 s -> !names().containsKey(s.name) || made.get(names().get(s.name)).isData != s.isData)) {
             throw new IllegalStateException();
         }
-        Map<Long, Def> aside = new HashMap<>();
-        Map<Integer, Long> given = lookOrThrow(aside);
-        keep(aside);
+        Map<Integer, Long> given = settleStaged(lookOrThrow());
         Map<Long, Long> base = new HashMap<>();
         for (Staged s : staged) {
             base.put(names().get(s.name), given.get(s.name));
@@ -596,22 +694,21 @@ final class Model {
 
     private Map<Long, Long> carry(Map<Long, Long> base) {
         todos.clear();
-        Set<Long> through = new LinkedHashSet<>();
-        for (long hash : new TreeSet<>(reachable(names().values()))) {
-            if (!base.containsKey(hash) && !Collections.disjoint(neededBy(hash), base.keySet())) {
-                through.add(hash);
-            }
-        }
+        Set<Long> through = new LinkedHashSet<>(made.keySet());
+        through.retainAll(reachable(names().values()));
+        through.removeIf(h -> base.containsKey(h) || Collections.disjoint(neededBy(h), base.keySet()));
         Map<Long, Long> carried = new HashMap<>();
         Set<Long> left = new LinkedHashSet<>(through);
         while (!left.isEmpty()) {
-            for (long hash : new ArrayList<>(left)) {
-                Set<Long> group = groupAmong(hash, through);
+            for (long hash : left) {
+                List<Long> group = new ArrayList<>(through);
+                group.retainAll(groupAmong(hash, through));
                 Set<Long> others = new HashSet<>(neededAmong(hash, through));
                 others.removeAll(group);
-                if (left.contains(hash) && Collections.disjoint(others, left)) {
+                if (Collections.disjoint(others, left)) {
                     left.removeAll(group);
-                    carryGroup(new ArrayList<>(group), base, carried);
+                    carryGroup(group, base, carried);
+                    break;
                 }
             }
         }
@@ -641,85 +738,23 @@ final class Model {
         return group;
     }
 
-    private final Map<Long, Integer> placeOf = new HashMap<>();
-
-    /** The place that a member has in its whole group, found anew from the rows. */
-    private int place(long hash) {
-        return placeOf.computeIfAbsent(hash, h -> {
-            List<Long> group = new ArrayList<>(groupAmong(h, made.keySet()));
-            for (int place = 0; place < group.size(); place++) {
-                for (long whole : wholesOf(group)) {
-                    if (fold(List.of(33L, whole, (long) place)) == h) {
-                        return place;
-                    }
-                }
-            }
-            return 0;
-        });
-    }
-
-    /** The hash of a group for each order of its members in which their hashes come out. */
-    private List<Long> wholesOf(List<Long> group) {
-        List<Long> wholes = new ArrayList<>();
-        orders(group, 0, wholes);
-        return wholes;
-    }
-
-    private void orders(List<Long> order, int from, List<Long> wholes) {
-        if (from == order.size()) {
-            Map<Object, Object> index = new HashMap<>();
-            Map<Integer, Integer> places = new HashMap<>();
-            for (int i = 0; i < order.size(); i++) {
-                index.put(order.get(i), i);
-                places.put(i, i);
-            }
-            List<Long> row = new ArrayList<>(List.of(32L, (long) order.size()));
-            order.forEach(h -> row.addAll(row(replaceTerms(made.get(h), index), false, places)));
-            long whole = fold(row);
-            for (int i = 0; i < order.size(); i++) {
-                if (fold(List.of(33L, whole, (long) i)) != order.get(i)) {
-                    return;
-                }
-            }
-            wholes.add(whole);
-            return;
-        }
-        for (int i = from; i < order.size(); i++) {
-            Collections.swap(order, from, i);
-            orders(order, from + 1, wholes);
-            Collections.swap(order, from, i);
-        }
-    }
-
-    private static Def replaceTerms(Def def, Map<Object, Object> by) {
-        return replace(def, by);
-    }
-
+    /** Members of a group stand in the order in which they were made, which is that of their places. */
     private void carryGroup(List<Long> group, Map<Long, Long> base, Map<Long, Long> carried) {
-        if (group.size() > 1) {
-            group.sort((x, y) -> Integer.compare(place(x), place(y)));
-        }
         Map<Object, Object> by = new HashMap<>(base);
         by.putAll(carried);
-        boolean isReplaced = group.stream().anyMatch(h -> !Collections.disjoint(made.get(h).refs(), by.keySet()));
-        if (!isReplaced) {
-            return;
-        }
-        Map<Long, Def> aside = new HashMap<>();
-        if (made.get(group.get(0)).isData) {
-            Def def = replace(made.get(group.get(0)), by);
-            long hash = fold(row(def, false, Map.of()));
-            aside.put(hash, def);
-            carried.put(group.get(0), hash);
-            keep(aside);
+        if (group.stream().allMatch(h -> Collections.disjoint(made.get(h).refs(), by.keySet()))) {
             return;
         }
         for (int i = 0; i < group.size(); i++) {
             by.put(group.get(i), i);
         }
         List<Def> protos = new ArrayList<>();
-        group.forEach(h -> protos.add(replace(made.get(h), by)));
-        if (!protos.stream().allMatch(p -> isTyped(p, protos, aside))) {
+        List<Integer> indices = new ArrayList<>();
+        group.forEach(h -> {
+            indices.add(protos.size());
+            protos.add(replace(made.get(h), by));
+        });
+        if (!protos.stream().allMatch(p -> p.isData || new Types(protos, Map.of()).has(p))) {
             names().forEach((n, h) -> {
                 if (group.contains(h)) {
                     todos.add(n);
@@ -727,10 +762,12 @@ final class Model {
             });
             return;
         }
-        Map<Integer, Long> done = settle(protos, aside);
-        keep(aside);
+        Map<Object, Object> done = new HashMap<>();
+        settle(indices, protos, done);
         for (int i = 0; i < group.size(); i++) {
-            carried.put(group.get(i), done.get(i));
+            if (!done.get(i).equals(group.get(i))) {
+                carried.put(group.get(i), (Long) done.get(i));
+            }
         }
     }
 
@@ -848,9 +885,9 @@ final class Model {
             roots.addAll(p.values());
         });
         jobs.stream().filter(j -> j.state != 'd').forEach(j -> roots.add(j.hash));
-        int before = codebase.size();
-        codebase.retainAll(reachable(roots));
-        return before - codebase.size();
+        int before = made.size();
+        made.keySet().retainAll(reachable(roots));
+        return before - made.size();
     }
 
     // Patches
@@ -1123,8 +1160,15 @@ final class Model {
         return hash;
     }
 
+    private void checkClear(long hash) {
+        if (!reachable(List.of(hash)).stream().allMatch(h -> isTyped(made.get(h)))) {
+            throw new Unclear();
+        }
+    }
+
     char work(int name) {
-        return letter(workOut(needTerm(name)));
+        checkClear(needTerm(name));
+        return letter(workOut(need(name)));
     }
 
     private static String show(Object value) {
@@ -1140,7 +1184,8 @@ final class Model {
     }
 
     int writeValue(int name) {
-        return put(show(workOut(needTerm(name))));
+        checkClear(needTerm(name));
+        return put(show(workOut(need(name))));
     }
 
     char test(int name) {
@@ -1149,6 +1194,7 @@ final class Model {
             throw new UnsupportedOperationException();
         }
         if (!tested.containsKey(hash)) {
+            checkClear(hash);
             testCount++;
             Object value = workOut(hash);
             tested.put(hash, value == null ? 'l' : (Integer) value != 0 ? 'p' : 'n');
@@ -1178,6 +1224,7 @@ final class Model {
         if (isDown[machine] || jobs.size() >= 30) {
             throw new IllegalStateException();
         }
+        checkClear(job.hash);
         jobs.add(job);
         return jobs.size() - 1;
     }
@@ -1277,7 +1324,7 @@ final class Model {
         }
         String digits = String.format("%016x", (Long) hash);
         int n = 1;
-        for (long other : codebase) {
+        for (long other : made.keySet()) {
             String others = String.format("%016x", other);
             while (other != (Long) hash && n < 16 && others.startsWith(digits.substring(0, n))) {
                 n++;
@@ -1318,7 +1365,8 @@ final class Model {
             default:
                 StringBuilder text = new StringBuilder("(" + showTerm(t.one, out));
                 for (int i = 0; i < t.more.size(); i++) {
-                    boolean binds = made.get((Long) t.ref).constructors.get(i) != null;
+                    Def data = made.get((Long) t.ref);
+                    boolean binds = data.isData && i < data.constructors.size() && data.constructors.get(i) != null;
                     text.append(" | c" + i + (binds ? " x" + out : "") + " => "
                         + showTerm(t.more.get(i), binds ? out + 1 : out));
                 }
@@ -1343,10 +1391,10 @@ final class Model {
     }
 
     float namedShare() {
-        if (codebase.isEmpty()) {
+        if (made.isEmpty()) {
             throw new ArithmeticException();
         }
-        return (float) new HashSet<>(names().values()).size() / (float) codebase.size();
+        return (float) new HashSet<>(names().values()).size() / (float) made.size();
     }
 
     double meanNeeded() {
@@ -1369,7 +1417,7 @@ final class Model {
     }
 
     int definitions() {
-        return codebase.size();
+        return made.size();
     }
 
     int patches() {
@@ -1389,10 +1437,11 @@ final class Model {
     }
 
     long hashAnew(int name) {
-        return need(name);
+        return anew().get(need(name));
     }
 
     boolean isSound() {
-        return true;
+        return anew().entrySet().stream().allMatch(e -> e.getKey().equals(e.getValue()))
+            && made.values().stream().allMatch(this::isTyped);
     }
 }

@@ -27,7 +27,7 @@ public final class RandomRunsTest {
     private int calls;
     private boolean isWrong;
     private static final List<String> SMALL = List.of("update", "apply", "todo", "merge", "mergePatches", "work",
-        "test", "outcome", "fault", "collect", "goOn", "compose");
+        "test", "outcome", "fault", "collect", "goOn", "compose", "isSound");
     private static final Map<String, Integer> SEEN = new TreeMap<>();
 
     private RandomRunsTest(long seed) {
@@ -60,8 +60,11 @@ public final class RandomRunsTest {
         }
         // nodes have a limit of their own, and would be most of the calls
         calls += name.equals("node") ? 0 : 1;
-        Object got = answer(PROGRAM.get(name), program, args);
         Object due = answer(MODEL.get(name), model, args);
+        if ("Unclear".equals(due)) {
+            return due;
+        }
+        Object got = answer(PROGRAM.get(name), program, args);
         log.add(name + java.util.Arrays.toString(args) + " -> " + got);
         SEEN.merge(name + (got instanceof String s ? " " + s : SMALL.contains(name) ? " " + got : ""), 1, Integer::sum);
         if (!Objects.equals(got, due)) {
@@ -483,7 +486,7 @@ public final class RandomRunsTest {
             case 2 -> call("needs", name(), name());
             case 3 -> readLine(call("writeTerm", name()));
             case 4 -> readLine(call("writeType", name()));
-            default -> call(pick(List.of("isSound", "namedShare", "meanNeeded", "definitions")));
+            default -> call(pick(List.of("isSound", "namedShare", "meanNeeded", "definitions", "collect")));
         }
     }
 
