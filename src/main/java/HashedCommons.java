@@ -39,9 +39,10 @@ public final class HashedCommons {
     private static final int MOST_PARTS = 3000;
     private static final int PART_BITS = 11;
     private static final int PART = 1 << PART_BITS;
-    /** Parts that changes leave when they are carried along, that patches leave, and that are enough for one. */
+    /** Parts that are left to all others when changes are carried along, and when patches are kept. */
     private static final int CARRY_RESERVE = 64;
     private static final int PATCH_RESERVE = 32;
+    /** Parts that one definition can need, one in each row. */
     private static final int LEAST_PARTS = 4;
     private static final int ROWS_IN_BUCKET = 4;
     /** Drafts of what is staged, and then of what is carried along, are the first definitions. */
@@ -162,7 +163,7 @@ public final class HashedCommons {
         staging.settle();
         staging.noteChanges();
         staging.giveNames();
-        carrier.begin();
+        carrier.begin(true);
         for (int i = 0; i < MOST_GROUPS && carrier.findGroup(); i++) {
             carrier.carryGroup();
         }
@@ -285,7 +286,7 @@ public final class HashedCommons {
             before[name] = branches.at(name);
             takeWhatItBecame(name);
         }
-        carrier.begin();
+        carrier.begin(false);
         for (int i = 0; i < MOST_GROUPS && carrier.findGroup(); i++) {
             carrier.carryGroup();
         }
@@ -932,7 +933,8 @@ public final class HashedCommons {
      * names in them mean, data first, then terms; data itself stands for itself within it.
      *
      * <p>In the order each one stands behind those that it needs, but for what was settled together;
-     * this begins with one that has the bit START, and is in the order of its places.
+     * this begins with one that has the bit START, and is in the order of its places. What was settled
+     * as a group need not be one: a member can have a hash that was there before.
      */
     private static final class Codebase {
         private static final int HASH = 0;
@@ -1109,10 +1111,6 @@ public final class HashedCommons {
 
         // What is kept
 
-        int rowCount() {
-            return rows;
-        }
-
         int keptCount() {
             return kept;
         }
@@ -1154,7 +1152,7 @@ public final class HashedCommons {
             return definition >= 0 && definition < DRAFTS ? settled[definition] : definition;
         }
 
-        /** Keeps a draft; one with its hash that was dropped is no more what it was. */
+        /** Keeps a draft; one with its hash that was dropped is what the draft is then. */
         private int append(int dropped, int draft, boolean isStart) {
             if (partsLeft[0] < LEAST_PARTS) {
                 return NONE;
@@ -1167,16 +1165,12 @@ public final class HashedCommons {
                 }
                 row = newRow();
                 facts.put(row * FIELDS + HASH, hashAt(draft));
-                facts.put(row * FIELDS + STATE, 0);
                 link(row);
             }
             long state = facts.at(row * FIELDS + STATE);
             facts.put(row * FIELDS + STATE, state | KEPT | (isStart ? START : 0));
             facts.put(row * FIELDS + SHAPE, facts.at(draft * FIELDS + SHAPE));
             facts.put(row * FIELDS + NAMES_USED, facts.at(draft * FIELDS + NAMES_USED));
-            facts.put(row * FIELDS + MARK, 0);
-            facts.put(row * FIELDS + BECAME, 0);
-            facts.put(row * FIELDS + FOLLOW, 0);
             order.put(kept, row);
             kept++;
             return row;
@@ -1486,7 +1480,6 @@ public final class HashedCommons {
         private int itemCount;
         private int memberCount;
         private int left;
-        private boolean isGroup;
         private boolean isAnew;
 
         Groups(Nodes nodes, Codebase codebase) {
@@ -1590,7 +1583,6 @@ public final class HashedCommons {
                 codebase.setHash(members[0], rowOf(ROW_START, members[0], false), isAnew);
                 return;
             }
-            isGroup = true;
             for (int i = 0; i < memberCount; i++) {
                 int member = members[i];
                 long key = rowOf(ROW_START, member, true);
@@ -1607,7 +1599,6 @@ public final class HashedCommons {
             for (int i = 0; i < memberCount; i++) {
                 whole = rowOf(whole, members[i], false);
             }
-            isGroup = false;
             for (int i = 0; i < memberCount; i++) {
                 codebase.setHash(members[i], mix(mix(mix(ROW_START, 33), whole), i), isAnew);
             }
@@ -1702,7 +1693,7 @@ public final class HashedCommons {
         }
 
         private long nameRow(long row, int named, boolean isPlaceless) {
-            for (int place = 0; place < memberCount && isGroup; place++) {
+            for (int place = 0; place < memberCount; place++) {
                 if (members[place] == named) {
                     return mix(mix(row, 19), isPlaceless ? 0 : place);
                 }
@@ -2561,6 +2552,7 @@ public final class HashedCommons {
         private final Branches branches;
         private final int[] originals = new int[MOST_STAGED];
         private final boolean[] isTodo = new boolean[NAMES];
+        private boolean isForPatch;
         private int carried;
         private int old;
         private int next;
@@ -2598,8 +2590,9 @@ public final class HashedCommons {
             return carried;
         }
 
-        /** Begins to go through all that can be reached from the names of the branch. */
-        void begin() {
+        /** Begins to go through all that can be reached from the names of the branch, for a patch or not. */
+        void begin(boolean isForPatch) {
+            this.isForPatch = isForPatch;
             for (int name = 0; name < NAMES; name++) {
                 isTodo[name] = false;
             }
@@ -2652,7 +2645,7 @@ public final class HashedCommons {
             for (int i = 0; i < size; i++) {
                 codebase.copyReplaced(originals[i], FIRST_COPY + i, originals, size);
             }
-            boolean haveTypes = codebase.hasRoomFor(carried, CARRY_RESERVE);
+            boolean haveTypes = codebase.hasRoomFor(isForPatch ? carried : 0, CARRY_RESERVE);
             for (int i = 0; i < size && haveTypes; i++) {
                 int copy = FIRST_COPY + i;
                 haveTypes = codebase.isData(copy) || checker.hasItsType(copy);

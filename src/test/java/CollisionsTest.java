@@ -12,6 +12,7 @@ public final class CollisionsTest extends Check {
         test.droppedIsKnown();
         test.droppedForAJob();
         test.droppedGroup();
+        test.droppedMember();
         test.firstOfTwoStays();
         test.updateToTheSameHash();
         test.termIsData();
@@ -206,6 +207,32 @@ public final class CollisionsTest extends Check {
         due("both", 2, x.needed(B));
         due("both lack", 2, x.lacking(1, B));
         due("sound", true, x.isSound());
+    }
+
+    /** In the ring of a, b and c the hash of b is that of x; c is ahead of a, and is dropped. */
+    private void droppedMember() {
+        begin("a dropped member");
+        int name = 23;
+        x.stage(name, type(), op(num(196103992), '-', num(-184754942)));
+        x.define();
+        for (int i = 5; i < 13; i++) {
+            x.stage(i, type(), op(ref(i == 12 ? 5 : i + 1), '+', num(i)));
+        }
+        due("a full group", 8, x.define());
+        x.stage(A, type(), op(ref(B), '+', num(1)));
+        x.stage(B, type(), op(ref(C), '+', num(2)));
+        x.stage(C, type(), op(ref(A), '+', num(3)));
+        due("b is there", 2, x.define());
+        due("the same hash", x.hash(name), x.hash(B));
+        x.unname(C);
+        due("c is dropped", 1, x.collect());
+        due("a needs b", 1, x.needed(A));
+        due("a full group", 8, x.needed(5));
+        due("a is in no group", row(31, 1, 15, 0, 18, x.hash(B), 11, 1), x.hashAnew(A));
+        x.stage(name, type(), num(4));
+        due("a is carried along", 1, x.update());
+        due("a", "(b + 1)", written(A));
+        due("a", "5", value(A));
     }
 
     private void firstOfTwoStays() {

@@ -6,7 +6,8 @@ public final class LongChainsTest extends Check {
         LongChainsTest test = new LongChainsTest();
         test.updates();
         test.collects();
-        test.levels();
+        test.levels(3, 45);
+        test.room();
         end();
     }
 
@@ -82,13 +83,35 @@ public final class LongChainsTest extends Check {
         due("needs as many", needed, x.needed(A));
         due("as many", made, x.definitions());
         due("sound", true, x.isSound());
+        for (int name = A; name <= E; name++) {
+            x.unname(name);
+        }
+        due("dropped again", dropped, x.collect());
+        for (int name = 5; name < 25; name++) {
+            defineInt(name, op(num(name), '*', num(name)));
+        }
+        due("others in their place", made - dropped + 20, x.definitions());
+        due("sound", true, x.isSound());
+        due("one of them", "(24 * 24)", written(24));
+        due("one of them", "49", value(7));
     }
 
     /** Each patch makes the chain so much longer that some hundred thousand are carried along. */
-    private void levels() {
+    private void levels(int levels, int rounds) {
         begin("levels of chains");
-        int levels = 3;
-        int rounds = 45;
+        raise(levels, rounds);
+        due("a needs", true, x.needed(A) > Math.pow(rounds, levels));
+        due("a needs the first one", true, x.needs(A, 10 + levels));
+        x.stage(10 + levels, type(), num(6));
+        int needed = x.needed(A);
+        due("all are carried", needed, x.update());
+        due("to do", 0, x.todo());
+        due("a needs the new one", true, x.needs(A, 10 + levels));
+        due("sound", true, x.isSound());
+        due("as many", needed, x.needed(A));
+    }
+
+    private void raise(int levels, int rounds) {
         for (int level = 0; level < levels; level++) {
             x.stage(10 + level, type(), sum(11 + level));
         }
@@ -104,14 +127,36 @@ public final class LongChainsTest extends Check {
                 x.apply(level);
             }
         }
-        due("a needs", true, x.needed(A) > rounds * rounds * rounds);
-        due("a needs the first one", true, x.needs(A, 10 + levels));
-        x.stage(10 + levels, type(), num(6));
-        int needed = x.needed(A);
-        due("all are carried", needed, x.update());
-        due("to do", 0, x.todo());
-        due("a needs the new one", true, x.needs(A, 10 + levels));
+    }
+
+    /** Runs can be told in which there is no end; they stay in their room, and nothing else is lost. */
+    private void room() {
+        begin("room");
+        raise(4, 30);
+        int made = x.definitions();
+        due("some hundred thousand", true, made > 400_000 && made < 600_000);
+        x.apply(3);
+        due("no more", made, x.definitions());
         due("sound", true, x.isSound());
-        due("as many", needed, x.needed(A));
+        for (int i = 4; i < 19; i++) {
+            due("composed", i, x.compose(2, 3));
+        }
+        defineInt(8, num(8));
+        defineInt(9, op(ref(8), '+', num(1)));
+        due("two more", made + 2, x.definitions());
+        due("nine", "9", value(9));
+        x.stage(8, type(), num(10));
+        x.update();
+        due("there is no room for another nine", 1, x.todo());
+        for (int name = 0; name < 26; name++) {
+            if (x.kindOf(name) != '-') {
+                x.unname(name);
+            }
+        }
+        due("much is dropped", true, x.collect() > 0);
+        defineInt(8, num(8));
+        defineInt(9, op(ref(8), '+', num(1)));
+        x.stage(8, type(), num(11));
+        due("sound", true, x.isSound());
     }
 }

@@ -142,6 +142,36 @@ public final class PatchesTest extends Check {
         x.goTo(other);
         due("one", 1, x.apply(4));
         due("becomes three, ahead of two again", row(31, 2, 1, 1, 13, 1, 15, 0, 12, 0, 11, 3), x.hash(A));
+        promise23LongRing();
+    }
+
+    /** 0 to 1, 1 to 2, and from 2 on in a ring of five, told in an order of its own. */
+    private void promise23LongRing() {
+        begin("promise 23, into a long ring");
+        for (int i = 0; i < 7; i++) {
+            defineInt(i, num(i));
+        }
+        int other = x.branch();
+        int[] from = {4, 0, 6, 2, 1, 5, 3};
+        int[] to = {5, 1, 2, 3, 2, 6, 4};
+        int all = 0;
+        for (int i = 0; i < 7; i++) {
+            x.stage(from[i], type(), num(to[i]));
+            x.update();
+            x.unname(from[i]);
+            defineInt(from[i], num(from[i]));
+            if (i > 0) {
+                due("no conflict", 0, x.mergePatches(all, x.patches() - 1));
+                all = x.patches() - 1;
+            }
+        }
+        due("all", 7, x.patchSize(all));
+        x.goTo(other);
+        due("all change", 7, x.apply(all));
+        int[] due = {6, 6, 6, 2, 3, 4, 5};
+        for (int i = 0; i < 7; i++) {
+            due("from " + i, String.valueOf(due[i]), value(i));
+        }
     }
 
     private void promise23ToDo() {
@@ -236,6 +266,30 @@ public final class PatchesTest extends Check {
         due("b", 1, x.apply(1));
         due("not further by the first one", row(31, 2, 1, 1, 13, 1, 15, 0, 12, 0, 11, 1), x.hash(B));
         due("a stays", x.hash(A), x.hash(B));
+        begin("promise 24, by the last patch");
+        for (int i = 1; i <= 4; i++) {
+            defineInt(i, num(i));
+        }
+        x.alias(1, 11);
+        x.stage(1, type(), num(2));
+        x.stage(3, type(), num(4));
+        x.update();
+        x.stage(2, type(), num(3));
+        x.update();
+        due("one and three", 2, x.patchSize(0));
+        due("two", 1, x.patchSize(1));
+        due("composed", 2, x.compose(0, 1));
+        due("one, two and three", 3, x.patchSize(2));
+        x.unname(1);
+        defineInt(1, num(1));
+        x.stage(1, type(), num(3));
+        x.update();
+        due("one becomes three, and not further", 0, x.mergePatches(2, 3));
+        x.unname(1);
+        defineInt(1, num(1));
+        x.stage(1, type(), num(4));
+        x.update();
+        due("one does not become four", 1, x.mergePatches(2, 5));
     }
 
     private void promise25() {

@@ -15,6 +15,7 @@ public final class StagingTest extends Check {
         test.promise6Again();
         test.promise7();
         test.promise7Names();
+        test.promise7OldOnes();
         test.promise7Groups();
         test.promise7Data();
         test.promise8();
@@ -538,6 +539,24 @@ public final class StagingTest extends Check {
         due("b needs the given one", row(31, 2, 1, 1, 13, 1, 14, 18, given, 12, 0), x.hash(B));
         due("a is carried along", row(31, 2, 1, 1, 13, 1, 14, 18, x.hash(B), 12, 0), x.hash(A));
         due("another name belongs to the given one", given, x.hash(C));
+    }
+
+    /** What was carried along by an earlier update counts no more. */
+    private void promise7OldOnes() {
+        begin("promise 7, old ones");
+        defineInt(A, num(1));
+        defineInt(B, op(ref(A), '+', num(1)));
+        defineInt(C, num(9));
+        int other = x.branch();
+        long old = x.hash(B);
+        x.stage(A, type(), num(2));
+        due("b is carried along", 1, x.update());
+        x.goTo(other);
+        x.stage(B, type(), op(ref(A), '+', num(5)));
+        x.stage(C, type(), op(ref(A), '+', num(1)));
+        due("nothing is carried along", 0, x.update());
+        due("c has what b had", old, x.hash(C));
+        due("b", "(a + 5)", written(B));
     }
 
     private void promise7Groups() {

@@ -9,6 +9,7 @@ public final class WorkTest extends Check {
         test.promises36And37();
         test.promises38To42();
         test.promise39Order();
+        test.promise39Others();
         test.promise41();
         test.promises43To45();
         test.promises46And47();
@@ -261,6 +262,27 @@ public final class WorkTest extends Check {
         due("it waits alone", 1, x.retry(29, 2));
         due("and works", 29, x.goOn(2));
         missing("none waits", () -> x.goOn(2));
+    }
+
+    /** What was worked out for a job is not taken for another definition, also if the first one is gone. */
+    private void promise39Others() {
+        begin("promise 39, others");
+        defineInt(A, num(7));
+        x.job(0, A);
+        x.goOn(0);
+        x.unname(A);
+        x.down(0);
+        due("collected", 1, x.collect());
+        defineInt(B, num(8));
+        defineInt(C, op(ref(B), '+', num(1)));
+        x.job(1, B);
+        x.job(1, C);
+        due("b", 1, x.goOn(1));
+        due("c", 2, x.goOn(1));
+        due("a was", 7, x.result(0));
+        due("b is", 8, x.result(1));
+        due("c is", 9, x.result(2));
+        due("traffic", 3L, x.traffic());
     }
 
     private void promise39Order() {
