@@ -152,8 +152,8 @@ public final class PatchesTest extends Check {
             defineInt(i, num(i));
         }
         int other = x.branch();
-        int[] from = {4, 0, 6, 2, 1, 5, 3};
-        int[] to = {5, 1, 2, 3, 2, 6, 4};
+        int[] from = {0, 4, 6, 2, 1, 5, 3};
+        int[] to = {1, 5, 2, 3, 2, 6, 4};
         int all = 0;
         for (int i = 0; i < 7; i++) {
             x.stage(from[i], type(), num(to[i]));
