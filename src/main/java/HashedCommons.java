@@ -20,6 +20,7 @@ public final class HashedCommons {
     private static final int MOST_BEGUN = 300;
     private static final int MOST_UNDER_WAY = 25;
     private static final int MACHINES = 3;
+    private static final int ALL_MACHINES = (1 << MACHINES) - 1;
     private static final int MOST_JOBS = 30;
     private static final int LINE = 200;
     private static final int HASH_DIGITS = 16;
@@ -30,21 +31,33 @@ public final class HashedCommons {
     private static final int MOST_STEPS = 1_000_000;
     private static final int MOST_FRAMES = 600;
     /** No document limit: stands above the definitions for which there is room. */
-    private static final int MOST_GROUPS = 1_000_000;
+    private static final int MOST_GROUPS = 4_000_000;
+    /** No document limit: what is worked out or told by types takes at most 300 times 200 cells. */
+    private static final int MOST_CELLS = 1 << 16;
+    private static final int FIRST_CELL = 1;
+    private static final int NODE_BITS = 9;
+    /** No document limit: terms are tested in at most 512 calls. */
+    private static final int MOST_TESTED = 512;
 
     /**
      * No document limit: definitions and patches grow as long as a run has room for them, which is some
-     * 7.3 million numbers in all. The rest is for the constructors and for what is worked out.
+     * 7.3 million numbers in all. What the parts leave of it is for the constructors.
      */
-    private static final int MOST_PARTS = 3000;
+    private static final int MOST_PARTS = 3300;
     private static final int PART_BITS = 11;
     private static final int PART = 1 << PART_BITS;
+    /** No document limit: the number of a definition has so many bits, that three stand in one long. */
+    private static final int INDEX_BITS = 21;
+    private static final int MOST_DEFINITIONS = (1 << INDEX_BITS) - 1;
+    private static final int INDEX_PARTS = 1 << INDEX_BITS - PART_BITS;
     /** Parts that are left to all others when changes are carried along, and when patches are kept. */
-    private static final int CARRY_RESERVE = 64;
-    private static final int PATCH_RESERVE = 32;
-    /** Parts that one definition can need, one in each row. */
-    private static final int LEAST_PARTS = 4;
-    private static final int ROWS_IN_BUCKET = 4;
+    private static final int CARRY_RESERVE = 128;
+    private static final int PATCH_RESERVE = 96;
+    /** Definitions that are left to what is staged, which are at most 8 in each of 512 calls. */
+    private static final int CARRY_DEFINITIONS = 8192;
+    /** Parts that one definition can need, one in each row and a further one for its names. */
+    private static final int LEAST_PARTS = 6;
+    private static final int HEAD_LOAD = 4;
     /** Drafts of what is staged, and then of what is carried along, are the first definitions. */
     private static final int FIRST_COPY = MOST_STAGED;
     private static final int DRAFTS = 2 * MOST_STAGED;
@@ -61,6 +74,7 @@ public final class HashedCommons {
     private final Nodes nodes;
     private final Groups groups;
     private final Checker checker;
+    private final Machines machines;
     private final Codebase codebase;
     private final Branches branches;
     private final Staging staging;
@@ -68,30 +82,33 @@ public final class HashedCommons {
     private final Carrier carrier;
     private final Worker worker;
     private final Writer writer;
-    private final int[] before;
-    private final int[] jobDefinitions;
+    private final long[] testedHashes;
+    private final char[] testOutcomes;
+    private int testCount;
+    private final long[] jobHashes;
     private final int[] jobMachines;
     private final char[] jobStates;
     private final char[] jobOutcomes;
     private final int[] jobNumbers;
     private int jobCount;
-    private int downMachines;
-    private int testCount;
-    private long sent;
 
     public HashedCommons() {
+        Row room = new Row(0, new Row[MOST_PARTS], new int[] {MOST_PARTS, 0});
+        long[] cells = new long[MOST_CELLS];
         nodes = new Nodes();
-        codebase = new Codebase(nodes);
+        machines = new Machines(room);
+        codebase = new Codebase(nodes, machines, room);
         groups = new Groups(nodes, codebase);
-        checker = new Checker(nodes, codebase);
+        checker = new Checker(nodes, codebase, cells);
         branches = new Branches();
         staging = new Staging(nodes, groups, checker, codebase, branches);
-        patches = new Patches(codebase);
+        patches = new Patches(codebase, room);
         carrier = new Carrier(groups, checker, codebase, branches);
-        worker = new Worker(nodes, codebase);
-        writer = new Writer(nodes, codebase, branches);
-        before = new int[NAMES];
-        jobDefinitions = new int[MOST_JOBS];
+        worker = new Worker(nodes, codebase, cells);
+        writer = new Writer(nodes, codebase, branches, cells);
+        testedHashes = new long[MOST_TESTED];
+        testOutcomes = new char[MOST_TESTED];
+        jobHashes = new long[MOST_JOBS];
         jobMachines = new int[MOST_JOBS];
         jobStates = new char[MOST_JOBS];
         jobOutcomes = new char[MOST_JOBS];
@@ -167,7 +184,7 @@ public final class HashedCommons {
         for (int i = 0; i < MOST_GROUPS && carrier.findGroup(); i++) {
             carrier.carryGroup();
         }
-        patches.addChanges();
+        patches.addNoted();
         for (int name = 0; name < NAMES; name++) {
             if (!staging.isStaged(name) || codebase.isCarried(branches.at(name))) {
                 takeWhatItBecame(name);
@@ -220,7 +237,9 @@ public final class HashedCommons {
         int definition = definitionOf(name);
         markReachable(definition);
         codebase.hashMarkedAnew(groups);
-        return codebase.hashOf(definition, true);
+        long hash = codebase.hashOf(definition, true);
+        codebase.forgetAnew();
+        return hash;
     }
 
     public boolean needs(int name, int other) throws IllegalArgumentException, NoSuchElementException {
@@ -261,11 +280,18 @@ public final class HashedCommons {
         patches.markAll();
         for (int job = 0; job < jobCount; job++) {
             if (jobStates[job] != 'd') {
-                codebase.mark(jobDefinitions[job]);
+                codebase.mark(codebase.find(jobHashes[job]));
             }
         }
         codebase.sweep();
-        return codebase.dropUnmarked();
+        int dropped = codebase.keptCount() - codebase.markedCount();
+        if (dropped > 0) {
+            codebase.numberMarked();
+            branches.move(codebase);
+            patches.move();
+            codebase.dropUnmarked();
+        }
+        return dropped;
     }
 
     // Patches
@@ -282,23 +308,21 @@ public final class HashedCommons {
     public int apply(int patch) throws NoSuchElementException {
         requirePatch(patch);
         patches.noteChanges(patch);
+        branches.lookAtNames();
         for (int name = 0; name < NAMES; name++) {
-            before[name] = branches.at(name);
             takeWhatItBecame(name);
         }
         carrier.begin(false);
         for (int i = 0; i < MOST_GROUPS && carrier.findGroup(); i++) {
             carrier.carryGroup();
         }
-        int changed = 0;
         for (int name = 0; name < NAMES; name++) {
             if (codebase.isCarried(branches.at(name))) {
                 takeWhatItBecame(name);
             }
-            changed += branches.at(name) == before[name] ? 0 : 1;
         }
         codebase.forgetChanges();
-        return changed;
+        return branches.changedNames();
     }
 
     public int compose(int patch, int other) throws NoSuchElementException, IllegalStateException {
@@ -387,7 +411,7 @@ public final class HashedCommons {
 
     public int writeValue(int name)
         throws IllegalArgumentException, NoSuchElementException, UnsupportedOperationException {
-        Cell value = worker.workOut(termOf(name));
+        long value = worker.workOut(termOf(name));
         writer.clear();
         writer.value(value);
         return writer.lineLength();
@@ -398,12 +422,20 @@ public final class HashedCommons {
         if (nodes.kindAt(codebase.typeNode(definition)) != 'j') {
             throw new UnsupportedOperationException("it is no int");
         }
-        if (codebase.testedAs(definition) == 0) {
-            testCount++;
-            Cell value = worker.workOut(definition);
-            codebase.noteTested(definition, value == null ? 'l' : value.number != 0 ? 'p' : 'n');
+        long hash = codebase.hashAt(definition);
+        for (int i = 0; i < testCount && i < MOST_TESTED; i++) {
+            if (testedHashes[i] == hash) {
+                return testOutcomes[i];
+            }
         }
-        return codebase.testedAs(definition);
+        long value = worker.workOut(definition);
+        char outcome = value == 0 ? 'l' : numberOf(value) != 0 ? 'p' : 'n';
+        if (testCount < MOST_TESTED) {
+            testedHashes[testCount] = hash;
+            testOutcomes[testCount] = outcome;
+        }
+        testCount++;
+        return outcome;
     }
 
     public int tests() {
@@ -414,10 +446,10 @@ public final class HashedCommons {
         throws IllegalArgumentException, NoSuchElementException, UnsupportedOperationException, IllegalStateException {
         requireMachine(machine);
         int definition = termOf(name);
-        if (isDown(machine) || jobCount >= MOST_JOBS) {
+        if (machines.isDown(machine) || jobCount >= MOST_JOBS) {
             throw new IllegalStateException("the machine is down, or there are too many jobs");
         }
-        jobDefinitions[jobCount] = definition;
+        jobHashes[jobCount] = codebase.hashAt(definition);
         jobMachines[jobCount] = machine;
         jobStates[jobCount] = 'w';
         jobCount++;
@@ -426,22 +458,21 @@ public final class HashedCommons {
 
     public int goOn(int machine) throws IllegalArgumentException, IllegalStateException, NoSuchElementException {
         requireMachine(machine);
-        if (isDown(machine)) {
+        if (machines.isDown(machine)) {
             throw new IllegalStateException("the machine is down");
         }
         int job = firstWaiting(machine);
         if (job == NONE) {
             throw new NoSuchElementException("no job waits on the machine");
         }
-        int definition = jobDefinitions[job];
-        int done = firstDone(definition);
+        int done = firstDone(jobHashes[job]);
         if (done == NONE) {
+            int definition = codebase.find(jobHashes[job]);
             markReachable(definition);
-            sent += codebase.sendMarked(machine);
-            Cell value = worker.workOut(definition);
-            codebase.noteWorked(definition);
+            machines.noteSent(codebase.sendMarked(machine));
+            long value = worker.workOut(definition);
             jobOutcomes[job] = kindOfValue(value);
-            jobNumbers[job] = value == null ? 0 : value.number;
+            jobNumbers[job] = numberOf(value);
         } else {
             jobOutcomes[job] = jobOutcomes[done];
             jobNumbers[job] = jobNumbers[done];
@@ -474,7 +505,7 @@ public final class HashedCommons {
         throws NoSuchElementException, IllegalArgumentException, IllegalStateException {
         requireJob(job);
         requireMachine(machine);
-        if (jobStates[job] != 'f' || isDown(machine)) {
+        if (jobStates[job] != 'f' || machines.isDown(machine)) {
             throw new IllegalStateException("the job has not failed, or the machine is down");
         }
         jobStates[job] = 'w';
@@ -484,7 +515,7 @@ public final class HashedCommons {
 
     public int down(int machine) throws IllegalArgumentException, IllegalStateException {
         requireMachine(machine);
-        if (isDown(machine)) {
+        if (machines.isDown(machine)) {
             throw new IllegalStateException("the machine is down");
         }
         int failing = waitingOn(machine);
@@ -493,15 +524,16 @@ public final class HashedCommons {
                 jobStates[job] = 'f';
             }
         }
-        downMachines |= 1 << machine;
+        machines.stop(machine);
+        machines.empty(machine);
         codebase.emptyMachine(machine);
         return failing;
     }
 
     public boolean up(int machine) throws IllegalArgumentException {
         requireMachine(machine);
-        boolean wasDown = isDown(machine);
-        downMachines &= ~(1 << machine);
+        boolean wasDown = machines.isDown(machine);
+        machines.start(machine);
         return wasDown;
     }
 
@@ -512,7 +544,7 @@ public final class HashedCommons {
     }
 
     public long traffic() {
-        return sent;
+        return machines.sentCount();
     }
 
     // Writing and counting
@@ -541,8 +573,9 @@ public final class HashedCommons {
 
     public boolean isSound() {
         codebase.beginMarks();
-        codebase.markKept();
+        codebase.markAllKept();
         codebase.hashMarkedAnew(groups);
+        codebase.forgetAnew();
         return codebase.areMarkedSound(checker);
     }
 
@@ -666,12 +699,8 @@ public final class HashedCommons {
         codebase.sweep();
     }
 
-    private static char kindOfValue(Cell value) {
-        return value == null ? 'l' : value.kind;
-    }
-
-    private boolean isDown(int machine) {
-        return (downMachines >> machine & 1) != 0;
+    private static char kindOfValue(long value) {
+        return value == 0 ? 'l' : signOf(value);
     }
 
     private int firstWaiting(int machine) {
@@ -684,9 +713,9 @@ public final class HashedCommons {
     }
 
     /** A job for which a definition was worked out before, NONE if there is none. */
-    private int firstDone(int definition) {
+    private int firstDone(long hash) {
         for (int job = 0; job < jobCount; job++) {
-            if (jobStates[job] == 'd' && jobDefinitions[job] == definition) {
+            if (jobStates[job] == 'd' && jobHashes[job] == hash) {
                 return job;
             }
         }
@@ -699,6 +728,28 @@ public final class HashedCommons {
             waiting += jobStates[job] == 'w' && jobMachines[job] == machine ? 1 : 0;
         }
         return waiting;
+    }
+
+    // Cells: a sign, a number, and a place where more of it stands
+
+    private static long cell(char sign, int ref, int number) {
+        return (long) sign << 52 | (long) ref << 32 | number & 0xFFFFFFFFL;
+    }
+
+    private static char signOf(long cell) {
+        return (char) (cell >> 52);
+    }
+
+    private static int refOf(long cell) {
+        return (int) (cell >> 32) & 0xFFFFF;
+    }
+
+    private static int numberOf(long cell) {
+        return (int) cell;
+    }
+
+    private static long cellIn(long[] cells, int ref) {
+        return ref >= 0 && ref < cells.length ? cells[ref] : 0;
     }
 
     /** The nodes that were told, each with its depth, its weight and the names that stand in it. */
@@ -882,171 +933,266 @@ public final class HashedCommons {
     }
 
     /**
-     * A row of numbers, 0 at first, that grows by parts: what is there is never copied, so that a run
-     * with many definitions stays in its room. The rows of a commons share the parts that are left.
+     * A row of numbers, 0 at first, that grows by parts, so that what is there is never copied. The rows
+     * of a commons share the parts: what is cut off one row is there for all.
      */
     private static final class Row {
-        private final long[] numbers = new long[PART];
-        private final Row[] further;
-        private final int[] partsLeft;
+        private static final int UNMADE = 0;
+        private static final int SPARE = 1;
 
-        /** The further parts are null for a row that is a part itself. */
-        Row(Row[] further, int[] partsLeft) {
-            this.further = further;
-            this.partsLeft = partsLeft;
+        private final long[] numbers;
+        private final Row[] parts;
+        private final Row[] spare;
+        private final int[] left;
+
+        /** A part of a row. */
+        Row() {
+            numbers = new long[PART];
+            parts = null;
+            spare = null;
+            left = null;
+        }
+
+        /** A row of at most as many parts. */
+        Row(int most, Row[] spare, int[] left) {
+            numbers = null;
+            parts = new Row[Math.max(most, 0)];
+            this.spare = spare;
+            this.left = left;
+        }
+
+        /** A further row, with which this one shares the parts. */
+        Row another(int most) {
+            return new Row(most, spare, left);
+        }
+
+        /** How many parts can still be taken. */
+        int partsLeft() {
+            return left == null || left.length <= SPARE ? 0 : left[UNMADE] + left[SPARE];
         }
 
         long at(int index) {
-            if (index >= 0 && index < PART) {
-                return numbers[index];
-            }
-            int part = (index >> PART_BITS) - 1;
-            if (further == null || part < 0 || part >= further.length || further[part] == null) {
+            int part = index >> PART_BITS;
+            if (parts == null || part < 0 || part >= parts.length || parts[part] == null) {
                 return 0;
             }
-            return further[part].numbers[index & PART - 1];
+            long[] there = parts[part].numbers;
+            return there == null ? 0 : there[index & PART - 1];
         }
 
-        /** Nothing is put if no part is left for it. */
-        void put(int index, long number) {
-            if (index >= 0 && index < PART) {
-                numbers[index] = number;
+        /** Answers false, and puts nothing, if no part is left for it. */
+        boolean put(int index, long number) {
+            int part = index >> PART_BITS;
+            if (parts == null || part < 0 || part >= parts.length) {
+                return false;
+            }
+            if (parts[part] == null) {
+                parts[part] = take();
+            }
+            long[] there = parts[part] == null ? null : parts[part].numbers;
+            if (there == null) {
+                return false;
+            }
+            there[index & PART - 1] = number;
+            return true;
+        }
+
+        private Row take() {
+            if (spare == null || left == null || left.length <= SPARE) {
+                return null;
+            }
+            int last = left[SPARE] - 1;
+            if (last >= 0 && last < spare.length && spare[last] != null) {
+                Row part = spare[last];
+                spare[last] = null;
+                left[SPARE] = last;
+                part.takeOwnBits(-1L);
+                return part;
+            }
+            if (left[UNMADE] <= 0) {
+                return null;
+            }
+            left[UNMADE]--;
+            return new Row();
+        }
+
+        /** Takes bits out of all numbers. */
+        void takeBits(long bits) {
+            for (int part = 0; parts != null && part < parts.length; part++) {
+                if (parts[part] != null) {
+                    parts[part].takeOwnBits(bits);
+                }
+            }
+        }
+
+        private void takeOwnBits(long bits) {
+            for (int i = 0; numbers != null && i < numbers.length; i++) {
+                numbers[i] &= ~bits;
+            }
+        }
+
+        /** Gives back the parts that stand behind the first numbers. */
+        void cut(int length) {
+            int first = Math.max(length, 0) + PART - 1 >> PART_BITS;
+            for (int part = first; parts != null && part < parts.length; part++) {
+                giveBack(part);
+            }
+        }
+
+        private void giveBack(int part) {
+            if (parts == null || spare == null || left == null || left.length <= SPARE || parts[part] == null) {
                 return;
             }
-            int part = (index >> PART_BITS) - 1;
-            if (further == null || part < 0 || part >= further.length) {
-                return;
-            }
-            if (further[part] == null && partsLeft[0] > 0) {
-                partsLeft[0]--;
-                further[part] = new Row(null, partsLeft);
-            }
-            if (further[part] != null) {
-                further[part].numbers[index & PART - 1] = number;
+            int to = left[SPARE];
+            if (to >= 0 && to < spare.length) {
+                spare[to] = parts[part];
+                parts[part] = null;
+                left[SPARE]++;
             }
         }
     }
 
     /**
-     * The definitions, each a number: drafts first, then what is in the codebase, and what was dropped
-     * from it while machines, tests or jobs still know its hash. A definition is nodes, and what the
-     * names in them mean, data first, then terms; data itself stands for itself within it.
+     * The definitions, each a number: drafts first, then what is in the codebase, in the order in which it
+     * was made. A definition is nodes, and what the names in them mean, data first, then terms; data
+     * itself stands for itself within it.
      *
-     * <p>In the order each one stands behind those that it needs, but for what was settled together;
-     * this begins with one that has the bit START, and is in the order of its places. What was settled
-     * as a group need not be one: a member can have a hash that was there before.
+     * <p>Each one stands behind those that it needs, but for what was settled together; this begins with
+     * one that has the sign START, and is in the order of its places. What was settled as a group need not
+     * be one: a member can have a hash that was there before.
+     *
+     * <p>So that there is room for many, each one is three numbers: its hash; its link, which is what is
+     * next in its bucket, what it becomes, and signs; and what it says. For more than two names this tells
+     * where in a further row they stand, three to a number.
      */
     private static final class Codebase {
-        private static final int HASH = 0;
-        private static final int ANEW = 1;
-        private static final int SHAPE = 2;
-        private static final int NAMES_USED = 3;
-        private static final int MEANT = 4;
-        private static final int STATE = 5;
-        private static final int NEXT = 6;
-        private static final int MARK = 7;
-        private static final int BECAME = 8;
-        private static final int FOLLOW = 9;
-        private static final int FIELDS = 10;
+        private static final long INDEX = (1L << INDEX_BITS) - 1;
+        private static final long BOTH = (1L << 2 * INDEX_BITS) - 1;
 
-        private static final long KEPT = 1;
-        private static final long START = 2;
-        private static final long CARRIED = 4;
-        private static final long WORKED = 8;
-        private static final int MACHINE_SHIFT = 4;
-        private static final int TEST_SHIFT = 8;
-        private static final long CHARACTER = 0xFFFF;
+        private static final long START = 1L << 42;
+        private static final long MARK = 1L << 43;
+        private static final long CARRIED = 1L << 44;
+        private static final long RESOLVED = 1L << 45;
+        private static final long DIFFERS = 1L << 46;
+        private static final int MACHINE_SHIFT = 47;
+
+        private static final int COUNT_SHIFT = 42;
+        private static final int OUTSIDE = 3;
+        private static final long DATA = 1L << 44;
+        private static final int TERM_SHIFT = 45;
+        private static final int TERM = 0x1FF;
+        private static final int TYPE_SHIFT = 54;
+        private static final int TYPE = 0x3FF;
+        private static final int MEANINGS = 2 * NAMES;
 
         private final Nodes nodes;
-        private final int[] partsLeft = {MOST_PARTS};
-        private final Row facts = new Row(new Row[MOST_PARTS], partsLeft);
-        private final Row meanings = new Row(new Row[MOST_PARTS], partsLeft);
-        private final Row order = new Row(new Row[MOST_PARTS], partsLeft);
-        private final Row buckets = new Row(new Row[MOST_PARTS], partsLeft);
+        private final Machines machines;
+        private final Row hashes;
+        private final Row links;
+        private final Row bodies;
+        private final Row further;
+        private final Row heads;
+        private final Row anews;
+        private final int[] draftMeanings = new int[DRAFTS * MEANINGS];
         private final int[] settled = new int[DRAFTS];
-        private int bucketCount = PART;
-        private int rows = DRAFTS;
-        private int free;
-        private int kept;
-        private int meaningEnd = DRAFTS * 2 * NAMES;
-        private long stamp;
+        private int headCount = PART;
+        private int end = DRAFTS;
+        private int furtherEnd;
 
-        Codebase(Nodes nodes) {
+        Codebase(Nodes nodes, Machines machines, Row room) {
             this.nodes = nodes;
-        }
-
-        /** A row that shares the parts. */
-        Row furtherRow() {
-            return new Row(new Row[MOST_PARTS], partsLeft);
+            this.machines = machines;
+            hashes = room.another(INDEX_PARTS);
+            links = room.another(INDEX_PARTS);
+            bodies = room.another(INDEX_PARTS);
+            further = room.another(MOST_PARTS);
+            heads = room.another(INDEX_PARTS);
+            anews = room.another(INDEX_PARTS);
         }
 
         // What a definition says
 
         /** Shapes a draft; data has a number of its own, or 0, where a term has its type. */
         void shape(int draft, boolean isData, int typeOrOwn, int term) {
-            int type = isData ? NONE : typeOrOwn;
-            long data = nodes.dataNamesAt(type) | nodes.dataNamesAt(term);
-            facts.put(draft * FIELDS + SHAPE, (long) typeOrOwn << 32 | (long) term << 1 | (isData ? 1 : 0));
-            facts.put(draft * FIELDS + NAMES_USED, data << 32 | nodes.termNamesAt(term));
-            facts.put(draft * FIELDS + MEANT, draft * 2L * NAMES);
+            long says = (long) (typeOrOwn & TYPE) << TYPE_SHIFT | (long) (term & TERM) << TERM_SHIFT;
+            bodies.put(draft, isData ? says | DATA : says);
         }
 
         boolean isData(int definition) {
-            return (facts.at(definition * FIELDS + SHAPE) & 1) != 0;
+            return (bodies.at(definition) & DATA) != 0;
         }
 
         /** The number of its own that data has, 0 for none. */
         int ownOf(int data) {
-            return (int) (facts.at(data * FIELDS + SHAPE) >> 32);
+            return (int) (bodies.at(data) >> TYPE_SHIFT) & TYPE;
         }
 
         int typeNode(int term) {
-            long shape = facts.at(term * FIELDS + SHAPE);
-            return term < 0 || (shape & 1) != 0 ? NONE : (int) (shape >> 32);
+            long says = bodies.at(term);
+            return term < 0 || (says & DATA) != 0 ? NONE : (int) (says >> TYPE_SHIFT) & TYPE;
         }
 
         int termNode(int definition) {
-            return definition < 0 ? NONE : (int) facts.at(definition * FIELDS + SHAPE) >> 1;
+            return definition < 0 ? NONE : (int) (bodies.at(definition) >> TERM_SHIFT) & TERM;
         }
 
         int dataNames(int definition) {
-            return (int) (facts.at(definition * FIELDS + NAMES_USED) >> 32);
+            return nodes.dataNamesAt(typeNode(definition)) | nodes.dataNamesAt(termNode(definition));
         }
 
         int termNames(int definition) {
-            return (int) facts.at(definition * FIELDS + NAMES_USED);
+            return nodes.termNamesAt(termNode(definition));
         }
 
         /** What a name of data means in a definition, NONE if it is not in it. */
         int dataAt(int definition, int name) {
-            int data = (int) (facts.at(definition * FIELDS + NAMES_USED) >> 32);
+            int data = dataNames(definition);
             if (!isName(name) || (data >> name & 1) == 0) {
                 return NONE;
             }
-            int start = (int) facts.at(definition * FIELDS + MEANT);
-            return (int) meanings.at(start + Integer.bitCount(data & (1 << name) - 1));
+            return meaning(definition, Integer.bitCount(data & (1 << name) - 1));
         }
 
         int termAt(int definition, int name) {
-            long used = facts.at(definition * FIELDS + NAMES_USED);
-            int terms = (int) used;
+            int terms = termNames(definition);
             if (!isName(name) || (terms >> name & 1) == 0) {
                 return NONE;
             }
-            int start = (int) facts.at(definition * FIELDS + MEANT) + Integer.bitCount((int) (used >> 32));
-            return (int) meanings.at(start + Integer.bitCount(terms & (1 << name) - 1));
+            int behind = Integer.bitCount(dataNames(definition));
+            return meaning(definition, behind + Integer.bitCount(terms & (1 << name) - 1));
         }
 
         int meaningCount(int definition) {
-            return Long.bitCount(facts.at(definition * FIELDS + NAMES_USED));
+            int inside = (int) (bodies.at(definition) >> COUNT_SHIFT) & OUTSIDE;
+            if (definition >= DRAFTS && inside != OUTSIDE) {
+                return inside;
+            }
+            return Integer.bitCount(dataNames(definition)) + Integer.bitCount(termNames(definition));
         }
 
         int meaning(int definition, int slot) {
-            return (int) meanings.at((int) facts.at(definition * FIELDS + MEANT) + slot);
+            if (definition < DRAFTS) {
+                int at = definition * MEANINGS + slot;
+                return at >= 0 && at < draftMeanings.length ? draftMeanings[at] : NONE;
+            }
+            long says = bodies.at(definition);
+            if (((says >> COUNT_SHIFT) & OUTSIDE) == OUTSIDE) {
+                return indexIn(further.at((int) (says & BOTH) + slot / 3), slot % 3);
+            }
+            return indexIn(says, slot);
+        }
+
+        /** One of the definitions that stand together in a number, NONE for 0. */
+        private static int indexIn(long number, int place) {
+            int index = (int) (number >> place * INDEX_BITS & INDEX);
+            return index == 0 ? NONE : index;
         }
 
         void setMeaning(int draft, int slot, int meaning) {
-            meanings.put(draft * 2 * NAMES + slot, meaning);
+            int at = draft * MEANINGS + slot;
+            if (at >= 0 && at < draftMeanings.length) {
+                draftMeanings[at] = meaning;
+            }
         }
 
         /** Whether another one, or itself, is needed at first hand; data do not need themselves. */
@@ -1076,63 +1222,102 @@ public final class HashedCommons {
         // Hashes
 
         long hashAt(int definition) {
-            return facts.at(definition * FIELDS + HASH);
+            return hashes.at(definition);
         }
 
         /** The hash, or the one that was found anew last. */
         long hashOf(int definition, boolean isAnew) {
-            return facts.at(definition * FIELDS + (isAnew ? ANEW : HASH));
+            return isAnew && hasSign(definition, DIFFERS) ? anews.at(definition) : hashes.at(definition);
         }
 
+        /** Of what is found anew only that is noted which differs. */
         void setHash(int definition, long hash, boolean isAnew) {
-            facts.put(definition * FIELDS + (isAnew ? ANEW : HASH), hash);
+            if (!isAnew) {
+                hashes.put(definition, hash);
+            } else if (hashes.at(definition) != hash) {
+                anews.put(definition, hash);
+                setSign(definition, DIFFERS);
+            }
         }
 
-        private int bucketOf(long hash) {
-            return (int) (hash ^ hash >>> 32) & bucketCount - 1;
+        private int headOf(long hash) {
+            return (int) (hash ^ hash >>> 32) & headCount - 1;
         }
 
-        private int find(long hash) {
-            int found = (int) buckets.at(bucketOf(hash));
-            for (int i = 0; i < rows && found != 0; i++) {
-                if (facts.at(found * FIELDS + HASH) == hash) {
+        /** What is in the codebase with a hash, NONE for nothing. */
+        int find(long hash) {
+            int head = headOf(hash);
+            int found = indexIn(heads.at(head / 3), head % 3);
+            for (int i = 0; i < end && found != NONE; i++) {
+                if (hashes.at(found) == hash) {
                     return found;
                 }
-                found = (int) facts.at(found * FIELDS + NEXT);
+                found = indexIn(links.at(found), 0);
             }
             return NONE;
         }
 
         private void link(int row) {
-            int bucket = bucketOf(hashAt(row));
-            facts.put(row * FIELDS + NEXT, buckets.at(bucket));
-            buckets.put(bucket, row);
+            int head = headOf(hashes.at(row));
+            long three = heads.at(head / 3);
+            int shift = head % 3 * INDEX_BITS;
+            setNext(row, indexIn(three, head % 3));
+            heads.put(head / 3, three & ~(INDEX << shift) | (long) row << shift);
+        }
+
+        /** Makes all buckets anew, after what is next was used for something else, or with more or less of them. */
+        void linkAnew() {
+            for (int i = 0; i <= headCount / 3; i++) {
+                heads.put(i, 0);
+            }
+            heads.cut(headCount / 3 + 1);
+            for (int row = DRAFTS; row < end; row++) {
+                link(row);
+            }
+        }
+
+        private int next(int definition) {
+            return indexIn(links.at(definition), 0);
+        }
+
+        private void setNext(int row, int next) {
+            links.put(row, links.at(row) & ~INDEX | (next < 0 ? 0 : next));
         }
 
         // What is kept
 
+        int first() {
+            return DRAFTS;
+        }
+
+        /** The index behind all definitions. */
+        int behind() {
+            return end;
+        }
+
         int keptCount() {
-            return kept;
+            return end - DRAFTS;
         }
 
-        int at(int index) {
-            return index >= 0 && index < kept ? (int) order.at(index) : NONE;
+        /** Whether further numbers leave as many parts. */
+        boolean hasRoomFor(int numbers, int reserve) {
+            return hashes.partsLeft() - (numbers >> PART_BITS) > reserve;
         }
 
-        /** Whether further definitions, or as many parts of patches, leave enough for what is staged. */
-        boolean hasRoomFor(int more, int reserve) {
-            return partsLeft[0] - (more >> PART_BITS) > reserve;
+        /** Whether there is room for what is carried along, which leaves enough for what is staged. */
+        boolean canCarry(int numbers) {
+            return end < MOST_DEFINITIONS - CARRY_DEFINITIONS && hasRoomFor(numbers, CARRY_RESERVE);
         }
 
         /** Keeps the members of a group that is hashed, each hash once; answers how many are new. */
         int settle(Groups groups) {
-            int before = kept;
+            int before = end;
             int fresh = 0;
             for (int i = 0; i < groups.size(); i++) {
                 int draft = groups.member(i);
                 int there = find(hashAt(draft));
-                if (there == NONE || (facts.at(there * FIELDS + STATE) & KEPT) == 0) {
-                    there = append(there, draft, kept == before);
+                if (there == NONE) {
+                    there = append(draft, end == before);
                     fresh |= 1 << i;
                 }
                 if (draft >= 0 && draft < DRAFTS) {
@@ -1144,7 +1329,7 @@ public final class HashedCommons {
                     takeMeanings(groups.member(i));
                 }
             }
-            return kept - before;
+            return end - before;
         }
 
         /** What is kept for a draft that was settled; others are what they are. */
@@ -1152,116 +1337,167 @@ public final class HashedCommons {
             return definition >= 0 && definition < DRAFTS ? settled[definition] : definition;
         }
 
-        /** Keeps a draft; one with its hash that was dropped is what the draft is then. */
-        private int append(int dropped, int draft, boolean isStart) {
-            if (partsLeft[0] < LEAST_PARTS) {
+        private int append(int draft, boolean isStart) {
+            if (end >= MOST_DEFINITIONS || !hasRoomFor(0, LEAST_PARTS)) {
                 return NONE;
             }
-            int row = dropped;
-            if (row == NONE) {
-                if (rows > ROWS_IN_BUCKET * bucketCount && hasRoomFor(bucketCount, CARRY_RESERVE)) {
-                    bucketCount *= 2;
-                    linkAnew();
-                }
-                row = newRow();
-                facts.put(row * FIELDS + HASH, hashAt(draft));
-                link(row);
+            if (end > HEAD_LOAD * headCount && hasRoomFor(headCount, CARRY_RESERVE)) {
+                headCount *= 2;
+                linkAnew();
             }
-            long state = facts.at(row * FIELDS + STATE);
-            facts.put(row * FIELDS + STATE, state | KEPT | (isStart ? START : 0));
-            facts.put(row * FIELDS + SHAPE, facts.at(draft * FIELDS + SHAPE));
-            facts.put(row * FIELDS + NAMES_USED, facts.at(draft * FIELDS + NAMES_USED));
-            order.put(kept, row);
-            kept++;
+            int row = end;
+            long hash = hashes.at(draft);
+            end++;
+            hashes.put(row, hash);
+            bodies.put(row, bodies.at(draft));
+            links.put(row, (long) machines.maskOf(hash) << MACHINE_SHIFT | (isStart ? START : 0));
+            link(row);
             return row;
-        }
-
-        private int newRow() {
-            int row = free;
-            if (row != 0) {
-                free = (int) facts.at(row * FIELDS + NEXT);
-                return row;
-            }
-            rows++;
-            return rows - 1;
         }
 
         private void takeMeanings(int draft) {
             int row = settledFor(draft);
-            if (row == NONE) {
+            if (row < DRAFTS) {
                 return;
             }
             int count = meaningCount(draft);
-            for (int slot = 0; slot < count; slot++) {
-                meanings.put(meaningEnd + slot, settledFor(meaning(draft, slot)));
+            long says = bodies.at(draft);
+            if (count < OUTSIDE) {
+                bodies.put(row, says | (long) count << COUNT_SHIFT | settledMeanings(draft, 0, count));
+                return;
             }
-            facts.put(row * FIELDS + MEANT, meaningEnd);
-            meaningEnd += count;
+            bodies.put(row, says | (long) OUTSIDE << COUNT_SHIFT | furtherEnd);
+            for (int slot = 0; slot < count; slot += 3) {
+                further.put(furtherEnd, settledMeanings(draft, slot, count));
+                furtherEnd++;
+            }
         }
 
-        /** Drops what is not marked; what stays moves together, in its order. */
-        int dropUnmarked() {
-            int before = kept;
-            boolean isStart = false;
-            kept = 0;
-            meaningEnd = DRAFTS * 2 * NAMES;
-            for (int i = 0; i < before; i++) {
-                int row = (int) order.at(i);
-                long state = facts.at(row * FIELDS + STATE);
-                isStart = isStart || (state & START) != 0;
-                if (isMarked(row)) {
-                    facts.put(row * FIELDS + STATE, isStart ? state | START : state);
-                    isStart = false;
-                    moveMeanings(row);
-                    order.put(kept, row);
-                    kept++;
-                } else {
-                    facts.put(row * FIELDS + STATE, state & ~(KEPT | START));
+        /** At most three meanings, in one number. */
+        private long settledMeanings(int draft, int start, int end) {
+            long together = 0;
+            for (int i = 0; i < 3 && start + i < end; i++) {
+                int meaning = settledFor(meaning(draft, start + i));
+                together |= (meaning < 0 ? 0L : meaning) << i * INDEX_BITS;
+            }
+            return together;
+        }
+
+        // Dropping
+
+        /** Gives what is marked the numbers that it has when all else is dropped. */
+        void numberMarked() {
+            int to = DRAFTS;
+            for (int row = DRAFTS; row < end; row++) {
+                boolean stays = hasSign(row, MARK);
+                setNext(row, stays ? to : NONE);
+                to += stays ? 1 : 0;
+            }
+        }
+
+        /** The number that a definition is given, NONE if it is dropped. */
+        int movedTo(int definition) {
+            return definition < DRAFTS ? NONE : next(definition);
+        }
+
+        /** Drops what is given no number. What it says goes first, so that there is room for what machines keep. */
+        void dropUnmarked() {
+            int kept = moveBodies();
+            bodies.cut(kept);
+            further.cut(furtherEnd);
+            for (int row = DRAFTS; row < end; row++) {
+                int mask = (int) (links.at(row) >> MACHINE_SHIFT) & ALL_MACHINES;
+                if (next(row) == NONE && mask != 0) {
+                    machines.keep(hashes.at(row), mask);
                 }
+            }
+            moveLinks();
+            end = kept;
+            hashes.cut(end);
+            links.cut(end);
+            headCount = PART;
+            while (end > HEAD_LOAD * headCount && headCount < MOST_DEFINITIONS) {
+                headCount *= 2;
             }
             linkAnew();
-            return before - kept;
+            machines.arrange(this);
         }
 
-        private void moveMeanings(int row) {
-            int count = meaningCount(row);
-            for (int slot = 0; slot < count; slot++) {
-                meanings.put(meaningEnd + slot, meaning(row, slot));
-            }
-            facts.put(row * FIELDS + MEANT, meaningEnd);
-            meaningEnd += count;
-        }
-
-        /** Frees what was dropped, but for hashes that tests, jobs or machines know. */
-        private void linkAnew() {
-            for (int i = 0; i < bucketCount; i++) {
-                buckets.put(i, 0);
-            }
-            free = 0;
-            for (int row = rows - 1; row >= DRAFTS; row--) {
-                if (facts.at(row * FIELDS + STATE) != 0) {
-                    link(row);
+        private int moveBodies() {
+            int to = DRAFTS;
+            int from;
+            furtherEnd = 0;
+            for (int row = DRAFTS; row < end; row++) {
+                if (next(row) == NONE) {
+                    continue;
+                }
+                long says = bodies.at(row);
+                if (((says >> COUNT_SHIFT) & OUTSIDE) == OUTSIDE) {
+                    from = (int) (says & BOTH);
+                    says = says & ~BOTH | furtherEnd;
+                    int numbers = (meaningCount(row) + 2) / 3;
+                    for (int i = 0; i < numbers; i++) {
+                        further.put(furtherEnd, moved(further.at(from + i)));
+                        furtherEnd++;
+                    }
                 } else {
-                    facts.put(row * FIELDS + NEXT, free);
-                    free = row;
+                    says = says & ~BOTH | moved(says & BOTH);
+                }
+                bodies.put(to, says);
+                to++;
+            }
+            return to;
+        }
+
+        private long moved(long meanings) {
+            long to = 0;
+            for (int i = 0; i < 3; i++) {
+                int meaning = indexIn(meanings, i);
+                to |= (meaning < 0 ? 0L : Math.max(next(meaning), 0)) << i * INDEX_BITS;
+            }
+            return to;
+        }
+
+        private void moveLinks() {
+            boolean isStart = false;
+            for (int row = DRAFTS; row < end; row++) {
+                long link = links.at(row);
+                int to = indexIn(link, 0);
+                isStart = isStart || (link & START) != 0;
+                if (to != NONE) {
+                    hashes.put(to, hashes.at(row));
+                    links.put(to, isStart ? link | START : link);
+                    isStart = false;
                 }
             }
         }
 
-        // Marks
+        // Signs
+
+        private boolean hasSign(int definition, long sign) {
+            return (links.at(definition) & sign) != 0;
+        }
+
+        private void setSign(int definition, long sign) {
+            if (definition >= DRAFTS && definition < end) {
+                links.put(definition, links.at(definition) | sign);
+            }
+        }
+
+        private void takeSigns(long signs) {
+            links.takeBits(signs);
+        }
 
         void beginMarks() {
-            stamp++;
+            takeSigns(MARK);
         }
 
         void mark(int definition) {
-            if (definition >= 0) {
-                facts.put(definition * FIELDS + MARK, stamp);
-            }
+            setSign(definition, MARK);
         }
 
         boolean isMarked(int definition) {
-            return definition >= 0 && facts.at(definition * FIELDS + MARK) == stamp;
+            return hasSign(definition, MARK);
         }
 
         private void markUsed(int definition) {
@@ -1276,48 +1512,48 @@ public final class HashedCommons {
         }
 
         void markAllNeededBy(int definition) {
-            stamp++;
+            beginMarks();
             markUsed(definition);
             sweep();
         }
 
-        void markKept() {
-            for (int i = 0; i < kept; i++) {
-                mark(at(i));
+        void markAllKept() {
+            for (int row = DRAFTS; row < end; row++) {
+                mark(row);
             }
         }
 
-        /** Whether what was settled together begins at an index. */
-        boolean isStart(int index) {
-            return (facts.at(at(index) * FIELDS + STATE) & START) != 0;
+        /** Whether what was settled together begins with a definition. */
+        boolean isStart(int row) {
+            return hasSign(row, START);
         }
 
-        /** The index behind what was settled together from an index on. */
+        /** The index behind what was settled together from one on. */
         int endFrom(int start) {
-            int end = start + 1;
-            while (end < kept && !isStart(end)) {
-                end++;
+            int behind = start + 1;
+            while (behind < end && !isStart(behind)) {
+                behind++;
             }
-            return end;
+            return behind;
         }
 
-        /** One way through the order is enough: whatever is needed stands ahead, or was settled together. */
+        /** One way through all is enough: whatever is needed stands ahead, or was settled together. */
         void sweep() {
-            int end = kept;
-            for (int start = kept - 1; start >= 0; start--) {
+            int behind = end;
+            for (int start = end - 1; start >= DRAFTS; start--) {
                 if (isStart(start)) {
-                    spread(start, end);
-                    end = start;
+                    spread(start, behind);
+                    behind = start;
                 }
             }
         }
 
         /** Among those settled together marks go to and fro, at most once for each of them. */
-        private void spread(int start, int end) {
-            for (int round = start; round < end; round++) {
-                for (int i = start; i < end; i++) {
-                    if (isMarked(at(i))) {
-                        markUsed(at(i));
+        private void spread(int start, int behind) {
+            for (int round = start; round < behind; round++) {
+                for (int row = start; row < behind; row++) {
+                    if (isMarked(row)) {
+                        markUsed(row);
                     }
                 }
             }
@@ -1325,104 +1561,112 @@ public final class HashedCommons {
 
         int markedCount() {
             int count = 0;
-            for (int i = 0; i < kept; i++) {
-                count += isMarked(at(i)) ? 1 : 0;
+            for (int row = DRAFTS; row < end; row++) {
+                count += isMarked(row) ? 1 : 0;
             }
             return count;
         }
 
-        // What machines, tests and jobs know
+        // What machines have
 
         int markedWithout(int machine) {
             int count = 0;
-            for (int i = 0; i < kept; i++) {
-                int row = at(i);
-                boolean isThere = (facts.at(row * FIELDS + STATE) >> MACHINE_SHIFT + machine & 1) != 0;
-                count += isMarked(row) && !isThere ? 1 : 0;
+            for (int row = DRAFTS; row < end; row++) {
+                long link = links.at(row);
+                count += (link & MARK) != 0 && (link >> MACHINE_SHIFT + machine & 1) == 0 ? 1 : 0;
             }
             return count;
         }
 
         int sendMarked(int machine) {
             int count = markedWithout(machine);
-            for (int i = 0; i < kept; i++) {
-                int row = at(i);
+            for (int row = DRAFTS; row < end; row++) {
                 if (isMarked(row)) {
-                    setState(row, 1L << MACHINE_SHIFT + machine);
+                    setSign(row, 1L << MACHINE_SHIFT + machine);
                 }
             }
             return count;
         }
 
         void emptyMachine(int machine) {
-            long all = ~(1L << MACHINE_SHIFT + machine);
-            for (int row = DRAFTS; row < rows; row++) {
-                facts.put(row * FIELDS + STATE, facts.at(row * FIELDS + STATE) & all);
-            }
-        }
-
-        private void setState(int definition, long bits) {
-            facts.put(definition * FIELDS + STATE, facts.at(definition * FIELDS + STATE) | bits);
-        }
-
-        void noteWorked(int definition) {
-            setState(definition, WORKED);
-        }
-
-        /** The outcome of its test, 0 if there was none. */
-        char testedAs(int definition) {
-            return (char) (facts.at(definition * FIELDS + STATE) >> TEST_SHIFT & CHARACTER);
-        }
-
-        void noteTested(int definition, char outcome) {
-            setState(definition, (long) outcome << TEST_SHIFT);
+            takeSigns(1L << MACHINE_SHIFT + machine);
         }
 
         // Changes
 
         /** What its hash becomes by what is going on, NONE if it stays. */
         int became(int definition) {
-            int to = definition < 0 ? 0 : (int) facts.at(definition * FIELDS + BECAME);
-            return to == 0 ? NONE : to;
+            return definition < DRAFTS ? NONE : indexIn(links.at(definition), 1);
         }
 
         void setBecame(int definition, int to) {
-            if (definition >= 0) {
-                facts.put(definition * FIELDS + BECAME, to < 0 ? 0 : to);
+            if (definition >= DRAFTS && definition < end) {
+                long link = links.at(definition) & ~(INDEX << INDEX_BITS);
+                links.put(definition, link | (to < 0 ? 0L : to) << INDEX_BITS);
             }
         }
 
         boolean isCarried(int definition) {
-            return definition >= 0 && (facts.at(definition * FIELDS + STATE) & CARRIED) != 0;
+            return definition >= 0 && hasSign(definition, CARRIED);
         }
 
         void setCarried(int definition, int to) {
             setBecame(definition, to);
-            setState(definition, CARRIED);
+            setSign(definition, CARRIED);
         }
 
-        /** What a patch keeps with it, NONE for nothing. */
-        int follow(int definition) {
-            int to = definition < 0 ? 0 : (int) facts.at(definition * FIELDS + FOLLOW);
-            return to == 0 ? NONE : to;
+        /** Whether it is known what a definition becomes in the end. */
+        boolean isResolved(int definition) {
+            return definition >= 0 && hasSign(definition, RESOLVED);
         }
 
-        void setFollow(int definition, int to) {
-            facts.put(definition * FIELDS + FOLLOW, to < 0 ? 0 : to);
+        void setResolved(int definition, int to) {
+            setBecame(definition, to);
+            setSign(definition, RESOLVED);
+        }
+
+        void forgetResolved() {
+            takeSigns(RESOLVED);
         }
 
         void forgetChanges() {
-            for (int i = 0; i < kept; i++) {
-                int row = at(i);
-                facts.put(row * FIELDS + BECAME, 0);
-                facts.put(row * FIELDS + STATE, facts.at(row * FIELDS + STATE) & ~CARRIED);
+            takeSigns(INDEX << INDEX_BITS | CARRIED | RESOLVED);
+        }
+
+        /** Puts what they become aside, in place of what is next in the buckets. */
+        void putAside() {
+            for (int row = DRAFTS; row < end; row++) {
+                setNext(row, became(row));
             }
+            forgetChanges();
+        }
+
+        /** What was put aside goes on by what they become now. */
+        void composeAside() {
+            for (int row = DRAFTS; row < end; row++) {
+                int first = next(row);
+                int second = became(first == NONE ? row : first);
+                setNext(row, second == NONE ? first : second);
+            }
+            for (int row = DRAFTS; row < end; row++) {
+                setBecame(row, next(row));
+            }
+        }
+
+        /** Whether one of those that are marked, and become no other yet, needs one that does. */
+        boolean isToChange(int start, int behind) {
+            for (int row = start; row < behind; row++) {
+                if (isMarked(row) && became(row) == NONE && usesChanged(row)) {
+                    return true;
+                }
+            }
+            return false;
         }
 
         /** Makes a draft say what a definition says, each hash in it replaced once. */
         void copyReplaced(int definition, int draft, int[] originals, int count) {
-            long shape = facts.at(definition * FIELDS + SHAPE);
-            shape(draft, (shape & 1) != 0, (int) (shape >> 32), (int) shape >> 1);
+            boolean isData = isData(definition);
+            shape(draft, isData, isData ? ownOf(definition) : typeNode(definition), termNode(definition));
             int used = meaningCount(definition);
             for (int slot = 0; slot < used; slot++) {
                 int meaning = meaning(definition, slot);
@@ -1437,16 +1681,17 @@ public final class HashedCommons {
         // Finding anew
 
         void hashMarkedAnew(Groups groups) {
+            takeSigns(DIFFERS);
             groups.setAnew(true);
-            for (int start = 0; start < kept; start++) {
+            for (int start = DRAFTS; start < end; start++) {
                 if (!isStart(start)) {
                     continue;
                 }
-                int end = endFrom(start);
+                int behind = endFrom(start);
                 groups.clear();
-                for (int i = start; i < end; i++) {
-                    if (isMarked(at(i))) {
-                        groups.add(at(i));
+                for (int row = start; row < behind; row++) {
+                    if (isMarked(row)) {
+                        groups.add(row);
                     }
                 }
                 groups.connect();
@@ -1457,15 +1702,165 @@ public final class HashedCommons {
             groups.setAnew(false);
         }
 
+        /** Gives back what was taken for hashes that differ. */
+        void forgetAnew() {
+            anews.cut(0);
+        }
+
         boolean areMarkedSound(Checker checker) {
-            for (int i = 0; i < kept; i++) {
-                int row = at(i);
-                if (isMarked(row)
-                    && (hashAt(row) != hashOf(row, true) || !isData(row) && !checker.hasItsType(row))) {
+            for (int row = DRAFTS; row < end; row++) {
+                if (isMarked(row) && (hasSign(row, DIFFERS) || !isData(row) && !checker.hasItsType(row))) {
                     return false;
                 }
             }
             return true;
+        }
+    }
+
+    /**
+     * The machines: which are down, how much went to them, and what they have of what was dropped, by
+     * rising hashes, each with a sign for each machine. What they have of the rest is told there.
+     */
+    private static final class Machines {
+        private static final int MASKS = 21;
+
+        private final Row hashes;
+        private final Row masks;
+        private int count;
+        private boolean isOrdered = true;
+        private int downMachines;
+        private long sent;
+
+        Machines(Row room) {
+            hashes = room.another(MOST_PARTS);
+            masks = room.another(MOST_PARTS);
+        }
+
+        boolean isDown(int machine) {
+            return (downMachines >> machine & 1) != 0;
+        }
+
+        void stop(int machine) {
+            downMachines |= 1 << machine;
+        }
+
+        void start(int machine) {
+            downMachines &= ~(1 << machine);
+        }
+
+        void noteSent(int definitions) {
+            sent += definitions;
+        }
+
+        long sentCount() {
+            return sent;
+        }
+
+        /** Which machines have what was dropped with a hash, a sign for each. */
+        int maskOf(long hash) {
+            int low = 0;
+            int high = count - 1;
+            while (low <= high) {
+                int middle = low + high >>> 1;
+                long there = hashes.at(middle);
+                if (there == hash) {
+                    return maskAt(middle);
+                }
+                if (there < hash) {
+                    low = middle + 1;
+                } else {
+                    high = middle - 1;
+                }
+            }
+            return 0;
+        }
+
+        private int maskAt(int index) {
+            return (int) (masks.at(index / MASKS) >> index % MASKS * MACHINES) & ALL_MACHINES;
+        }
+
+        private boolean put(int index, long hash, int mask) {
+            int shift = index % MASKS * MACHINES;
+            long others = masks.at(index / MASKS) & ~((long) ALL_MACHINES << shift);
+            return hashes.put(index, hash) && masks.put(index / MASKS, others | (long) mask << shift);
+        }
+
+        /** Keeps what is dropped, behind the rest at first. */
+        void keep(long hash, int mask) {
+            if (put(count, hash, mask)) {
+                count++;
+                isOrdered = false;
+            }
+        }
+
+        private void swap(int one, int other) {
+            long hash = hashes.at(one);
+            int mask = maskAt(one);
+            put(one, hashes.at(other), maskAt(other));
+            put(other, hash, mask);
+        }
+
+        /** Puts all in their order, each hash once, and leaves out what is in the codebase. */
+        void arrange(Codebase codebase) {
+            if (!isOrdered) {
+                order();
+            }
+            int to = 0;
+            for (int i = 0; i < count; i++) {
+                long hash = hashes.at(i);
+                int mask = maskAt(i);
+                if (to > 0 && hashes.at(to - 1) == hash) {
+                    put(to - 1, hash, maskAt(to - 1) | mask);
+                } else if (codebase.find(hash) == NONE) {
+                    put(to, hash, mask);
+                    to++;
+                }
+            }
+            cut(to);
+        }
+
+        private void order() {
+            for (int root = count / 2 - 1; root >= 0; root--) {
+                sink(root, count);
+            }
+            for (int last = count - 1; last > 0; last--) {
+                swap(0, last);
+                sink(0, last);
+            }
+            isOrdered = true;
+        }
+
+        private void sink(int start, int behind) {
+            int at = start;
+            for (int child = 2 * at + 1; child < behind; child = 2 * at + 1) {
+                if (child + 1 < behind && hashes.at(child) < hashes.at(child + 1)) {
+                    child++;
+                }
+                if (hashes.at(at) >= hashes.at(child)) {
+                    return;
+                }
+                swap(at, child);
+                at = child;
+            }
+        }
+
+        private void cut(int to) {
+            count = to;
+            hashes.cut(count);
+            masks.cut(count / MASKS + 1);
+        }
+
+        /** A machine loses all that it has. */
+        void empty(int machine) {
+            int to = 0;
+            for (int i = 0; i < count; i++) {
+                int mask = maskAt(i) & ~(1 << machine);
+                if (mask != 0) {
+                    put(to, hashes.at(i), mask);
+                    to++;
+                }
+            }
+            cut(to);
         }
     }
 
@@ -1712,153 +2107,114 @@ public final class HashedCommons {
         }
     }
 
-    /** A type, a value or a variable that is bound; cells are made once and used again in each call. */
-    private static final class Cell {
-        private char kind;
-        private int number;
-        private int node;
-        private int definition;
-        /** From what a function type is, an argument that is had, the scope of a function, or what is bound. */
-        private Cell inner;
-        /** To what a function type is, or the scope outside of this one. */
-        private Cell outer;
-        private Cell after;
-
-        Cell following(char nextKind) {
-            if (after == null) {
-                after = new Cell();
-            }
-            after.kind = nextKind;
-            after.number = 0;
-            after.node = NONE;
-            after.definition = NONE;
-            after.inner = null;
-            after.outer = null;
-            return after;
-        }
-    }
-
-    /** Finds the types of terms. */
+    /** Finds the types of terms; a type is a cell, 0 if there is a fault. */
     private static final class Checker {
         private final Nodes nodes;
         private final Codebase codebase;
-        private final Cell[] bound = new Cell[DEEPEST];
-        private final Cell first = new Cell();
-        private Cell last;
+        private final long[] cells;
+        private final long[] bound = new long[DEEPEST];
+        private int used;
 
-        Checker(Nodes nodes, Codebase codebase) {
+        Checker(Nodes nodes, Codebase codebase, long[] cells) {
             this.nodes = nodes;
             this.codebase = codebase;
-            last = first;
+            this.cells = cells;
         }
 
         boolean hasItsType(int term) {
-            last = first;
-            Cell told = typeOf(codebase.typeNode(term), term, 0);
-            Cell found = infer(codebase.termNode(term), term, 0, 0);
+            used = FIRST_CELL;
+            long told = typeOf(codebase.typeNode(term), term, 0);
+            long found = infer(codebase.termNode(term), term, 0, 0);
             return isSame(told, found, 0);
         }
 
-        private Cell typeOf(int node, int in, int depth) {
+        private long typeOf(int node, int in, int depth) {
             if (depth > DEEPEST) {
-                return null;
+                return 0;
             }
             switch (nodes.kindAt(node)) {
                 case 'j':
-                    last = last.following('j');
-                    return last;
+                    return cell('j', 0, 0);
                 case '>':
-                    Cell from = typeOf(nodes.aAt(node), in, depth + 1);
-                    Cell to = typeOf(nodes.bAt(node), in, depth + 1);
-                    last = last.following('>');
-                    last.inner = from;
-                    last.outer = to;
-                    return last;
+                    long from = typeOf(nodes.aAt(node), in, depth + 1);
+                    return functionType(from, typeOf(nodes.bAt(node), in, depth + 1));
                 case 'd':
-                    last = last.following('d');
-                    last.definition = codebase.dataAt(in, nodes.aAt(node));
-                    return last;
+                    return cell('d', 0, codebase.dataAt(in, nodes.aAt(node)));
                 default:
-                    return null;
+                    return 0;
             }
         }
 
-        private Cell intType() {
-            last = last.following('j');
-            return last;
-        }
-
-        private Cell functionType(Cell from, Cell to) {
-            if (from == null || to == null) {
-                return null;
+        /** What it is from and what it is to stand behind one another. */
+        private long functionType(long from, long to) {
+            if (from == 0 || to == 0 || used < 0 || used + 1 >= cells.length) {
+                return 0;
             }
-            last = last.following('>');
-            last.inner = from;
-            last.outer = to;
-            return last;
+            cells[used] = from;
+            cells[used + 1] = to;
+            used += 2;
+            return cell('>', used - 2, 0);
         }
 
-        private Cell dataType(int data) {
-            last = last.following('d');
-            last.definition = data;
-            return last;
+        private long fromOf(long function) {
+            return cellIn(cells, refOf(function));
+        }
+
+        private long toOf(long function) {
+            return cellIn(cells, refOf(function) + 1);
         }
 
         /** What a function is to can be a long chain, so only what it is from is a recursion. */
-        private boolean isSame(Cell type, Cell other, int depth) {
-            Cell one = type;
-            Cell two = other;
-            for (int i = 0; i < MOST_STEPS && depth <= DEEPEST && one != null && two != null; i++) {
+        private boolean isSame(long type, long other, int depth) {
+            long one = type;
+            long two = other;
+            for (int i = 0; i < MOST_STEPS && depth <= DEEPEST && one != 0 && two != 0; i++) {
                 if (one == two) {
                     return true;
                 }
-                if (one.kind != two.kind) {
+                if (signOf(one) != signOf(two)) {
                     return false;
                 }
-                if (one.kind == 'd') {
-                    return codebase.hashAt(one.definition) == codebase.hashAt(two.definition);
+                if (signOf(one) == 'd') {
+                    return codebase.hashAt(numberOf(one)) == codebase.hashAt(numberOf(two));
                 }
-                if (one.kind != '>') {
-                    return true;
-                }
-                if (!isSame(one.inner, two.inner, depth + 1)) {
+                if (signOf(one) != '>' || !isSame(fromOf(one), fromOf(two), depth + 1)) {
                     return false;
                 }
-                one = one.outer;
-                two = two.outer;
+                one = toOf(one);
+                two = toOf(two);
             }
             return false;
         }
 
-        private static boolean isInt(Cell type) {
-            return type != null && type.kind == 'j';
+        private static boolean isInt(long type) {
+            return signOf(type) == 'j';
         }
 
-        private boolean isOf(Cell type, int data) {
-            return type != null && type.kind == 'd' && codebase.hashAt(type.definition) == codebase.hashAt(data);
+        private boolean isOf(long type, int data) {
+            return signOf(type) == 'd' && codebase.hashAt(numberOf(type)) == codebase.hashAt(data);
         }
 
-        /** Answers null if there is a fault. */
-        private Cell infer(int node, int in, int binders, int depth) {
+        private long infer(int node, int in, int binders, int depth) {
             if (depth > DEEPEST) {
-                return null;
+                return 0;
             }
             int a = nodes.aAt(node);
             int b = nodes.bAt(node);
             switch (nodes.kindAt(node)) {
                 case 'i':
-                    return intType();
+                    return cell('j', 0, 0);
                 case 'v':
-                    return a >= 0 && a < binders && binders <= bound.length ? bound[binders - 1 - a] : null;
+                    return a >= 0 && a < binders && binders <= bound.length ? bound[binders - 1 - a] : 0;
                 case 'f':
-                    Cell from = typeOf(a, in, 0);
+                    long from = typeOf(a, in, 0);
                     return functionType(from, inferInside(from, b, in, binders, depth + 1));
                 case 'a':
                     return inferApplication(node, in, binders, depth + 1);
                 case 'o':
                     boolean areInts = isInt(infer(a, in, binders, depth + 1));
                     areInts = areInts && isInt(infer(b, in, binders, depth + 1));
-                    return areInts ? intType() : null;
+                    return areInts ? cell('j', 0, 0) : 0;
                 case '?':
                     return inferChoice(node, in, binders, depth + 1);
                 case 'l':
@@ -1871,40 +2227,40 @@ public final class HashedCommons {
                 case 'c':
                     return inferBranches(node, in, binders, depth + 1);
                 default:
-                    return null;
+                    return 0;
             }
         }
 
-        private Cell inferInside(Cell type, int node, int in, int binders, int depth) {
-            if (type == null || binders >= bound.length) {
-                return null;
+        private long inferInside(long type, int node, int in, int binders, int depth) {
+            if (type == 0 || binders < 0 || binders >= bound.length) {
+                return 0;
             }
             bound[binders] = type;
             return infer(node, in, binders + 1, depth);
         }
 
-        private Cell inferApplication(int node, int in, int binders, int depth) {
-            Cell function = infer(nodes.aAt(node), in, binders, depth);
-            if (function == null || function.kind != '>') {
-                return null;
+        private long inferApplication(int node, int in, int binders, int depth) {
+            long function = infer(nodes.aAt(node), in, binders, depth);
+            if (signOf(function) != '>') {
+                return 0;
             }
-            Cell argument = infer(nodes.bAt(node), in, binders, depth);
-            return isSame(function.inner, argument, 0) ? function.outer : null;
+            long argument = infer(nodes.bAt(node), in, binders, depth);
+            return isSame(fromOf(function), argument, 0) ? toOf(function) : 0;
         }
 
-        private Cell inferChoice(int node, int in, int binders, int depth) {
+        private long inferChoice(int node, int in, int binders, int depth) {
             if (!isInt(infer(nodes.aAt(node), in, binders, depth))) {
-                return null;
+                return 0;
             }
-            Cell one = infer(nodes.bAt(node), in, binders, depth);
-            Cell other = infer(nodes.cAt(node), in, binders, depth);
-            return isSame(one, other, 0) ? one : null;
+            long one = infer(nodes.bAt(node), in, binders, depth);
+            long other = infer(nodes.cAt(node), in, binders, depth);
+            return isSame(one, other, 0) ? one : 0;
         }
 
-        private Cell inferConstructor(int node, int in, int binders, int depth) {
+        private long inferConstructor(int node, int in, int binders, int depth) {
             int data = codebase.dataAt(in, nodes.aAt(node));
             if (!codebase.isData(data)) {
-                return null;
+                return 0;
             }
             int constructor = codebase.termNode(data);
             for (int i = 0; i < nodes.bAt(node) && constructor >= 0; i++) {
@@ -1913,41 +2269,41 @@ public final class HashedCommons {
             int argument = nodes.aAt(constructor);
             int given = nodes.cAt(node);
             if (constructor < 0 || (argument < 0) != (given < 0)) {
-                return null;
+                return 0;
             }
             if (given >= 0 && !isSame(typeOf(argument, data, 0), infer(given, in, binders, depth), 0)) {
-                return null;
+                return 0;
             }
-            return dataType(data);
+            return cell('d', 0, data);
         }
 
-        private Cell inferBranches(int node, int in, int binders, int depth) {
+        private long inferBranches(int node, int in, int binders, int depth) {
             int data = codebase.dataAt(in, nodes.aAt(node));
             if (!codebase.isData(data) || !isOf(infer(nodes.bAt(node), in, binders, depth), data)) {
-                return null;
+                return 0;
             }
             int branch = nodes.cAt(node);
             int constructor = codebase.termNode(data);
-            Cell common = null;
+            long common = 0;
             for (int i = 0; i < MOST_WEIGHT && branch >= 0 && constructor >= 0; i++) {
                 int argument = nodes.aAt(constructor);
                 int term = nodes.aAt(branch);
-                Cell found = argument < 0 ? infer(term, in, binders, depth)
+                long found = argument < 0 ? infer(term, in, binders, depth)
                     : inferInside(typeOf(argument, data, 0), term, in, binders, depth);
-                if (found == null || common != null && !isSame(common, found, 0)) {
-                    return null;
+                if (found == 0 || common != 0 && !isSame(common, found, 0)) {
+                    return 0;
                 }
                 common = found;
                 branch = nodes.bAt(branch);
                 constructor = nodes.bAt(constructor);
             }
-            return branch < 0 && constructor < 0 ? common : null;
+            return branch < 0 && constructor < 0 ? common : 0;
         }
     }
-
     /** The names of each branch, and what the commits keep of them. */
     private static final class Branches {
         private final int[] names = new int[MOST_BRANCHES * NAMES];
+        private final int[] before = new int[NAMES];
         private final int[] lastCommits = new int[MOST_BRANCHES];
         private final int[] committed = new int[MOST_COMMITS * NAMES];
         private final int[] parents = new int[2 * MOST_COMMITS];
@@ -2013,6 +2369,32 @@ public final class HashedCommons {
             for (int i = 0; i < committed.length; i++) {
                 codebase.mark(committed[i]);
             }
+        }
+
+        /** Takes the numbers that definitions are given when others are dropped. */
+        void move(Codebase codebase) {
+            for (int i = 0; i < names.length; i++) {
+                names[i] = codebase.movedTo(names[i]);
+            }
+            for (int i = 0; i < committed.length; i++) {
+                committed[i] = codebase.movedTo(committed[i]);
+            }
+        }
+
+        /** Looks at the names of the present branch, for what they change from then on. */
+        void lookAtNames() {
+            for (int name = 0; name < NAMES; name++) {
+                before[name] = at(name);
+            }
+        }
+
+        /** How many names belong to another definition than when they were looked at. */
+        int changedNames() {
+            int count = 0;
+            for (int name = 0; name < NAMES; name++) {
+                count += at(name) == before[name] ? 0 : 1;
+            }
+            return count;
         }
 
         boolean hasBranch(int branch) {
@@ -2342,18 +2724,24 @@ public final class HashedCommons {
         }
     }
 
-    /** The patches, one behind the other: each hash that is kept, and what it becomes. */
+
+    /**
+     * The patches: each pair of what is kept and what it becomes stands here once, with a sign for each
+     * patch in which it is, so that patches that are made of others take no room but for pairs of their own.
+     */
     private static final class Patches {
+        private static final long INDEX = (1L << INDEX_BITS) - 1;
+        private static final int PATCH_SHIFT = 2 * INDEX_BITS;
+
         private final Codebase codebase;
-        /** What becomes another in the high half of each number, and what it becomes in the low one. */
-        private final Row entries;
-        private final int[] starts = new int[MOST_PATCHES + 1];
+        private final Row pairs;
+        private final int[] sizes = new int[MOST_PATCHES];
         private int count;
         private int end;
 
-        Patches(Codebase codebase) {
+        Patches(Codebase codebase, Row room) {
             this.codebase = codebase;
-            entries = codebase.furtherRow();
+            pairs = room.another(MOST_PARTS);
         }
 
         int patchCount() {
@@ -2364,38 +2752,24 @@ public final class HashedCommons {
             return count >= MOST_PATCHES;
         }
 
-        private int startOf(int patch) {
-            return patch >= 0 && patch <= count && patch < starts.length ? starts[patch] : end;
-        }
-
         int sizeOf(int patch) {
-            return startOf(patch + 1) - startOf(patch);
+            return patch >= 0 && patch < count && patch < sizes.length ? sizes[patch] : 0;
         }
 
         private int from(int index) {
-            return (int) (entries.at(index) >> 32);
+            return (int) (pairs.at(index) & INDEX);
         }
 
         private int to(int index) {
-            return (int) entries.at(index);
+            return (int) (pairs.at(index) >> INDEX_BITS & INDEX);
         }
 
-        private void set(int index, int from, int to) {
-            entries.put(index, (long) from << 32 | to);
+        private boolean isIn(int index, int patch) {
+            return (pairs.at(index) >> PATCH_SHIFT + patch & 1) != 0;
         }
 
-        private void add(int from, int to) {
-            if (codebase.hasRoomFor(0, PATCH_RESERVE)) {
-                set(end, from, to);
-                end++;
-            }
-        }
-
-        private void close() {
-            if (count < MOST_PATCHES) {
-                count++;
-                starts[count] = end;
-            }
+        private void takeIn(int index, int patch) {
+            pairs.put(index, pairs.at(index) | 1L << PATCH_SHIFT + patch);
         }
 
         void markAll() {
@@ -2405,66 +2779,97 @@ public final class HashedCommons {
             }
         }
 
-        void addChanges() {
-            for (int i = 0; i < codebase.keptCount(); i++) {
-                int definition = codebase.at(i);
-                if (codebase.became(definition) != NONE) {
-                    add(definition, codebase.became(definition));
+        /** Takes the numbers that definitions are given when others are dropped. */
+        void move() {
+            for (int i = 0; i < end; i++) {
+                long patches = pairs.at(i) >> PATCH_SHIFT << PATCH_SHIFT;
+                long from = Math.max(codebase.movedTo(from(i)), 0);
+                long to = Math.max(codebase.movedTo(to(i)), 0);
+                pairs.put(i, patches | to << INDEX_BITS | from);
+            }
+        }
+
+        private void close(int size) {
+            if (count >= 0 && count < sizes.length) {
+                sizes[count] = size;
+                count++;
+            }
+        }
+
+        /** Makes a patch of all that becomes another one, or itself, as is noted with the definitions. */
+        int addNoted() {
+            int size = 0;
+            codebase.beginMarks();
+            for (int i = 0; i < end; i++) {
+                if (codebase.became(from(i)) == to(i)) {
+                    takeIn(i, count);
+                    codebase.mark(from(i));
+                    size++;
                 }
             }
-            close();
+            for (int row = codebase.first(); row < codebase.behind(); row++) {
+                int to = codebase.became(row);
+                if (to != NONE && !codebase.isMarked(row) && codebase.hasRoomFor(0, PATCH_RESERVE)
+                    && pairs.put(end, (long) to << INDEX_BITS | row)) {
+                    takeIn(end, count);
+                    end++;
+                    size++;
+                }
+            }
+            close(size);
+            return count - 1;
         }
 
-        /** Notes at each definition that a patch keeps what is kept with it. */
-        private void setFollowing(int patch, boolean isFollowed) {
-            int until = startOf(patch + 1);
-            for (int i = startOf(patch); i < until; i++) {
-                codebase.setFollow(from(i), isFollowed ? to(i) : NONE);
+        /** Notes with each definition that a patch keeps what is kept with it. */
+        private void note(int patch) {
+            for (int i = 0; i < end; i++) {
+                if (isIn(i, patch)) {
+                    codebase.setBecame(from(i), to(i));
+                }
             }
         }
 
-        /** Notes at each definition that a patch keeps what it becomes by it, itself perhaps. */
+        /** Notes with each definition that a patch keeps what it becomes by it in the end, itself perhaps. */
         private void noteLasts(int patch) {
-            setFollowing(patch, true);
-            int until = startOf(patch + 1);
-            for (int i = startOf(patch); i < until; i++) {
-                if (codebase.became(from(i)) == NONE) {
+            note(patch);
+            codebase.beginMarks();
+            for (int i = 0; i < end; i++) {
+                if (isIn(i, patch) && !codebase.isResolved(from(i))) {
                     follow(from(i));
                 }
             }
-            setFollowing(patch, false);
+            codebase.forgetResolved();
         }
 
         /**
-         * Goes on from a definition until nothing follows, one comes again, or it is known what comes
-         * of one; then notes at all that were passed what they become.
+         * Goes on from a definition until nothing is kept, one comes again, or it is known what comes of
+         * one; then notes with all that were passed what they become.
          */
         private void follow(int start) {
-            codebase.beginMarks();
-            codebase.mark(start);
             int at = start;
-            int next = codebase.follow(at);
-            for (int i = 0; i < end && next != NONE && !codebase.isMarked(next)
-                && codebase.became(next) == NONE; i++) {
+            int next = codebase.became(at);
+            codebase.mark(at);
+            for (int i = 0; i < end && codebase.became(next) != NONE && !codebase.isMarked(next); i++) {
                 codebase.mark(next);
                 at = next;
-                next = codebase.follow(at);
+                next = codebase.became(at);
             }
-            if (next == NONE) {
-                notePassed(start, at, at);
-            } else if (codebase.became(next) != NONE) {
+            if (codebase.isResolved(next)) {
                 notePassed(start, next, codebase.became(next));
-            } else {
+            } else if (codebase.isMarked(next)) {
                 notePassed(start, next, at);
                 noteRing(next, at);
+            } else {
+                notePassed(start, next, next);
             }
         }
 
         private void notePassed(int start, int behind, int last) {
             int at = start;
             for (int i = 0; i < end && at != behind; i++) {
-                codebase.setBecame(at, last);
-                at = codebase.follow(at);
+                int next = codebase.became(at);
+                codebase.setResolved(at, last);
+                at = next;
             }
         }
 
@@ -2472,23 +2877,18 @@ public final class HashedCommons {
         private void noteRing(int start, int aheadOfStart) {
             int ahead = aheadOfStart;
             int at = start;
-            for (int i = 0; i < end && codebase.became(at) == NONE; i++) {
-                codebase.setBecame(at, ahead);
+            for (int i = 0; i < end && !codebase.isResolved(at); i++) {
+                int next = codebase.became(at);
+                codebase.setResolved(at, ahead);
                 ahead = at;
-                at = codebase.follow(at);
+                at = next;
             }
         }
 
-        private int lastOf(int definition) {
-            int last = codebase.became(definition);
-            return last == NONE ? definition : last;
-        }
-
-        /** Notes at each definition what it becomes by a patch, if that is another one. */
+        /** Notes with each definition what it becomes by a patch, if that is another one. */
         void noteChanges(int patch) {
             noteLasts(patch);
-            int until = startOf(patch + 1);
-            for (int i = startOf(patch); i < until; i++) {
+            for (int i = 0; i < end; i++) {
                 if (codebase.became(from(i)) == from(i)) {
                     codebase.setBecame(from(i), NONE);
                 }
@@ -2496,54 +2896,37 @@ public final class HashedCommons {
         }
 
         int addComposed(int patch, int other) {
-            int made = end;
-            int until = startOf(patch + 1);
             noteLasts(patch);
-            for (int i = startOf(patch); i < until; i++) {
-                add(from(i), lastOf(from(i)));
-            }
-            codebase.forgetChanges();
-            int madeUntil = end;
+            codebase.putAside();
             noteLasts(other);
-            for (int i = made; i < madeUntil; i++) {
-                set(i, from(i), lastOf(to(i)));
-            }
-            setFollowing(patch, true);
-            until = startOf(other + 1);
-            for (int i = startOf(other); i < until; i++) {
-                if (codebase.follow(from(i)) == NONE) {
-                    add(from(i), lastOf(from(i)));
-                }
-            }
-            setFollowing(patch, false);
+            codebase.composeAside();
+            int made = addNoted();
             codebase.forgetChanges();
-            close();
-            return count - 1;
+            codebase.linkAnew();
+            return made;
         }
 
         /** Answers the number of conflicts. */
         int addMerged(int patch, int other) {
             int conflicts = 0;
-            int until = startOf(patch + 1);
-            for (int i = startOf(patch); i < until; i++) {
-                add(from(i), to(i));
-            }
-            setFollowing(patch, true);
-            until = startOf(other + 1);
-            for (int i = startOf(other); i < until; i++) {
-                int there = codebase.follow(from(i));
-                if (there == NONE) {
-                    add(from(i), to(i));
-                } else {
-                    conflicts += there == to(i) ? 0 : 1;
+            int size = 0;
+            note(patch);
+            for (int i = 0; i < end; i++) {
+                boolean isTaken = isIn(i, patch);
+                if (!isTaken && isIn(i, other)) {
+                    isTaken = codebase.became(from(i)) == NONE;
+                    conflicts += isTaken ? 0 : 1;
+                }
+                if (isTaken) {
+                    takeIn(i, count);
+                    size++;
                 }
             }
-            setFollowing(patch, false);
-            close();
+            codebase.forgetChanges();
+            close(size);
             return conflicts;
         }
     }
-
     /** Carries changes along to what needs them, and keeps the names that are to do. */
     private static final class Carrier {
         private final Groups groups;
@@ -2597,12 +2980,10 @@ public final class HashedCommons {
                 isTodo[name] = false;
             }
             carried = 0;
-            next = 0;
-            old = codebase.keptCount();
+            next = codebase.first();
+            old = codebase.behind();
             codebase.beginMarks();
-            for (int name = 0; name < NAMES; name++) {
-                codebase.mark(branches.at(name));
-            }
+            branches.markNames(codebase);
             codebase.sweep();
             groups.clear();
         }
@@ -2610,25 +2991,24 @@ public final class HashedCommons {
         /** Finds the next group among what has not become another one already. */
         boolean findGroup() {
             boolean isFound = groups.nextGroup();
-            for (int i = next; i < old && !isFound; i++) {
-                if (codebase.isStart(i)) {
-                    next = codebase.endFrom(i);
-                    addUnchanged(i, next);
-                    isFound = groups.nextGroup();
+            for (int row = next; row < old && !isFound; row++) {
+                if (codebase.isStart(row)) {
+                    next = codebase.endFrom(row);
+                    isFound = codebase.isToChange(row, next) && findFirst(row);
                 }
             }
             return isFound;
         }
 
-        private void addUnchanged(int start, int end) {
+        private boolean findFirst(int start) {
             groups.clear();
-            for (int i = start; i < end; i++) {
-                int definition = codebase.at(i);
-                if (codebase.isMarked(definition) && codebase.became(definition) == NONE) {
-                    groups.add(definition);
+            for (int row = start; row < next; row++) {
+                if (codebase.isMarked(row) && codebase.became(row) == NONE) {
+                    groups.add(row);
                 }
             }
             groups.connect();
+            return groups.nextGroup();
         }
 
         /** Replaces the group that was found, if it is to be; it stays, too, if there is no room. */
@@ -2645,7 +3025,7 @@ public final class HashedCommons {
             for (int i = 0; i < size; i++) {
                 codebase.copyReplaced(originals[i], FIRST_COPY + i, originals, size);
             }
-            boolean haveTypes = codebase.hasRoomFor(isForPatch ? carried : 0, CARRY_RESERVE);
+            boolean haveTypes = codebase.canCarry(isForPatch ? carried : 0);
             for (int i = 0; i < size && haveTypes; i++) {
                 int copy = FIRST_COPY + i;
                 haveTypes = codebase.isData(copy) || checker.hasItsType(copy);
@@ -2678,44 +3058,47 @@ public final class HashedCommons {
         }
     }
 
-    /** Works terms out, with frames of its own in place of a recursion. */
+    /**
+     * Works terms out, with frames of its own in place of a recursion. A value is a cell, 0 if there is
+     * none; a scope is where what is bound stands, with the scope outside of it behind it.
+     */
     private static final class Worker {
         private final Nodes nodes;
         private final Codebase codebase;
         private final int[] frameNodes = new int[MOST_FRAMES];
         private final int[] frameSteps = new int[MOST_FRAMES];
         private final int[] frameDefinitions = new int[MOST_FRAMES];
-        private final Cell[] frameScopes = new Cell[MOST_FRAMES];
-        private final Cell[] frameHeld = new Cell[MOST_FRAMES];
-        private final Cell first = new Cell();
-        private Cell last;
-        private Cell answer;
+        private final int[] frameScopes = new int[MOST_FRAMES];
+        private final long[] frameHeld = new long[MOST_FRAMES];
+        private final long[] cells;
+        private int used;
+        private long answer;
         private int frames;
         private int begun;
         private int underWay;
         private boolean isStopped;
 
-        Worker(Nodes nodes, Codebase codebase) {
+        Worker(Nodes nodes, Codebase codebase, long[] cells) {
             this.nodes = nodes;
             this.codebase = codebase;
-            last = first;
+            this.cells = cells;
         }
 
-        /** Answers the value, which holds until the next call, or null if it was stopped. */
-        Cell workOut(int term) {
-            last = first;
-            answer = null;
+        /** Answers the value, which holds until the next call, or 0 if it was stopped. */
+        long workOut(int term) {
+            used = FIRST_CELL;
+            answer = 0;
             frames = 0;
             begun = 0;
             underWay = 0;
             isStopped = false;
             if (isBegun()) {
-                push(codebase.termNode(term), term, null);
+                push(codebase.termNode(term), term, 0);
             }
             for (int i = 0; i < MOST_STEPS && frames > 0 && !isStopped; i++) {
                 advance(frames - 1);
             }
-            return isStopped || frames > 0 ? null : answer;
+            return isStopped || frames > 0 ? 0 : answer;
         }
 
         private boolean isBegun() {
@@ -2728,7 +3111,7 @@ public final class HashedCommons {
             return true;
         }
 
-        private void push(int node, int in, Cell scope) {
+        private void push(int node, int in, int scope) {
             if (frames >= MOST_FRAMES) {
                 isStopped = true;
                 return;
@@ -2737,7 +3120,7 @@ public final class HashedCommons {
             frameSteps[frames] = 0;
             frameDefinitions[frames] = in;
             frameScopes[frames] = scope;
-            frameHeld[frames] = null;
+            frameHeld[frames] = 0;
             frames++;
         }
 
@@ -2748,28 +3131,32 @@ public final class HashedCommons {
         }
 
         /** What is worked out last in a frame takes its place. */
-        private void turnInto(int top, int node, Cell scope) {
+        private void turnInto(int top, int node, int scope) {
             frameNodes[top] = node;
             frameSteps[top] = 0;
             frameScopes[top] = scope;
         }
 
-        private void finish(Cell value) {
+        private void finish(long value) {
             answer = value;
-            isStopped = isStopped || value == null;
+            isStopped = isStopped || value == 0;
             frames--;
         }
 
-        private Cell cell(char kind, int number, Cell inner) {
-            last = last.following(kind);
-            last.number = number;
-            last.inner = inner;
-            return last;
+        /** Answers where a number stands then, 0 if there is no place for it. */
+        private int keep(long number) {
+            if (used < 0 || used >= cells.length) {
+                isStopped = true;
+                return 0;
+            }
+            cells[used] = number;
+            used++;
+            return used - 1;
         }
 
-        private Cell bind(Cell value, Cell outer) {
-            Cell scope = cell('s', 0, value);
-            scope.outer = outer;
+        private int bind(long value, int outer) {
+            int scope = keep(value);
+            keep(outer);
             return scope;
         }
 
@@ -2781,16 +3168,13 @@ public final class HashedCommons {
             int node = frameNodes[top];
             switch (nodes.kindAt(node)) {
                 case 'i':
-                    finish(cell('i', nodes.aAt(node), null));
+                    finish(cell('i', 0, nodes.aAt(node)));
                     break;
                 case 'v':
                     finish(lookUp(frameScopes[top], nodes.aAt(node)));
                     break;
                 case 'f':
-                    Cell function = cell('f', 0, frameScopes[top]);
-                    function.node = node;
-                    function.definition = frameDefinitions[top];
-                    finish(function);
+                    finish(cell('f', frameScopes[top], frameDefinitions[top] << NODE_BITS | node));
                     break;
                 case 'a':
                     advanceApplication(top, node);
@@ -2818,12 +3202,12 @@ public final class HashedCommons {
             }
         }
 
-        private static Cell lookUp(Cell scope, int variable) {
-            Cell at = scope;
-            for (int i = 0; i < variable && at != null; i++) {
-                at = at.outer;
+        private long lookUp(int scope, int variable) {
+            int at = scope;
+            for (int i = 0; i < variable && at != 0; i++) {
+                at = (int) cellIn(cells, at + 1);
             }
-            return at == null ? null : at.inner;
+            return at == 0 ? 0 : cellIn(cells, at);
         }
 
         private void advanceApplication(int top, int node) {
@@ -2836,12 +3220,13 @@ public final class HashedCommons {
                     pushPart(top, nodes.bAt(node));
                     break;
                 case 2:
-                    Cell function = frameHeld[top];
-                    if (function == null || function.kind != 'f') {
+                    long function = frameHeld[top];
+                    if (signOf(function) != 'f') {
                         isStopped = true;
                     } else if (isBegun()) {
                         frameSteps[top]++;
-                        push(nodes.bAt(function.node), function.definition, bind(answer, function.inner));
+                        int body = nodes.bAt(numberOf(function) & (1 << NODE_BITS) - 1);
+                        push(body, numberOf(function) >> NODE_BITS, bind(answer, refOf(function)));
                     }
                     break;
                 default:
@@ -2860,12 +3245,8 @@ public final class HashedCommons {
                     pushPart(top, nodes.bAt(node));
                     break;
                 default:
-                    Cell left = frameHeld[top];
-                    if (left == null || answer == null) {
-                        isStopped = true;
-                    } else {
-                        finish(cell('i', operate(nodes.cAt(node), left.number, answer.number), null));
-                    }
+                    int left = numberOf(frameHeld[top]);
+                    finish(cell('i', 0, operate(nodes.cAt(node), left, numberOf(answer))));
             }
         }
 
@@ -2888,8 +3269,7 @@ public final class HashedCommons {
             if (frameSteps[top] == 0) {
                 pushPart(top, nodes.aAt(node));
             } else {
-                boolean isTrue = answer != null && answer.number != 0;
-                turnInto(top, isTrue ? nodes.bAt(node) : nodes.cAt(node), frameScopes[top]);
+                turnInto(top, numberOf(answer) != 0 ? nodes.bAt(node) : nodes.cAt(node), frameScopes[top]);
             }
         }
 
@@ -2912,18 +3292,18 @@ public final class HashedCommons {
                 isStopped = true;
             } else if (isBegun()) {
                 frameSteps[top]++;
-                push(codebase.termNode(named), named, null);
+                push(codebase.termNode(named), named, 0);
             }
         }
 
         private void advanceConstructor(int top, int node) {
             int argument = nodes.cAt(node);
             if (argument < 0) {
-                finish(cell('c', nodes.bAt(node), null));
+                finish(cell('c', 0, nodes.bAt(node)));
             } else if (frameSteps[top] == 0) {
                 pushPart(top, argument);
             } else {
-                finish(cell('c', nodes.bAt(node), answer));
+                finish(cell('c', keep(answer), nodes.bAt(node)));
             }
         }
 
@@ -2932,31 +3312,29 @@ public final class HashedCommons {
                 pushPart(top, nodes.bAt(node));
                 return;
             }
-            if (answer == null) {
-                isStopped = true;
-                return;
-            }
             int branch = nodes.cAt(node);
-            for (int i = 0; i < answer.number && i < MOST_CONSTRUCTORS; i++) {
+            for (int i = 0; i < numberOf(answer) && i < MOST_CONSTRUCTORS; i++) {
                 branch = nodes.bAt(branch);
             }
-            Cell scope = answer.inner == null ? frameScopes[top] : bind(answer.inner, frameScopes[top]);
+            int held = refOf(answer);
+            int scope = held == 0 ? frameScopes[top] : bind(cellIn(cells, held), frameScopes[top]);
             turnInto(top, nodes.aAt(branch), scope);
         }
     }
-
     /** Writes the line. */
     private static final class Writer {
         private final Nodes nodes;
         private final Codebase codebase;
         private final Branches branches;
+        private final long[] cells;
         private final char[] line = new char[LINE];
         private int length;
 
-        Writer(Nodes nodes, Codebase codebase, Branches branches) {
+        Writer(Nodes nodes, Codebase codebase, Branches branches, long[] cells) {
             this.nodes = nodes;
             this.codebase = codebase;
             this.branches = branches;
+            this.cells = cells;
         }
 
         void clear() {
@@ -3010,22 +3388,22 @@ public final class HashedCommons {
             number(number);
         }
 
-        /** Writes a value, whose constructors are a chain; nothing is written for null. */
-        void value(Cell value) {
+        /** Writes a value, whose constructors are a chain; nothing is written for 0. */
+        void value(long value) {
             int open = 0;
-            Cell at = value;
-            for (int i = 0; i < LINE && at != null && at.kind == 'c'; i++) {
-                constructor(at.number);
-                at = at.inner;
-                if (at != null) {
+            long at = value;
+            for (int i = 0; i < LINE && signOf(at) == 'c'; i++) {
+                constructor(numberOf(at));
+                at = cellIn(cells, refOf(at));
+                if (at != 0) {
                     put('(');
                     open++;
                 }
             }
-            if (at != null && at.kind == 'i') {
-                number(at.number);
+            if (signOf(at) == 'i') {
+                number(numberOf(at));
             }
-            if (at != null && at.kind == 'f') {
+            if (signOf(at) == 'f') {
                 put("fn");
             }
             for (int i = 0; i < open; i++) {
@@ -3074,8 +3452,7 @@ public final class HashedCommons {
         private int digitsNeeded(int definition) {
             long hash = codebase.hashAt(definition);
             int digits = 1;
-            for (int i = 0; i < codebase.keptCount(); i++) {
-                int other = codebase.at(i);
+            for (int other = codebase.first(); other < codebase.behind(); other++) {
                 if (other != definition) {
                     digits = Math.max(digits, digitsApart(codebase.hashAt(other), hash));
                 }
@@ -3173,7 +3550,7 @@ public final class HashedCommons {
                 put("; ");
             } else {
                 put(' ');
-                put(signOf(node));
+                put(operatorOf(node));
                 put(' ');
             }
             term(nodes.bAt(node), in, isBinding ? binders + 1 : binders, depth);
@@ -3184,7 +3561,7 @@ public final class HashedCommons {
             put(')');
         }
 
-        private char signOf(int node) {
+        private char operatorOf(int node) {
             if (nodes.kindAt(node) == '?') {
                 return '?';
             }

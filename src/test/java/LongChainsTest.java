@@ -7,7 +7,6 @@ public final class LongChainsTest extends Check {
         test.updates();
         test.collects();
         test.levels(3, 45);
-        test.room();
         end();
     }
 
@@ -127,36 +126,5 @@ public final class LongChainsTest extends Check {
                 x.apply(level);
             }
         }
-    }
-
-    /** Runs can be told in which there is no end; they stay in their room, and nothing else is lost. */
-    private void room() {
-        begin("room");
-        raise(4, 30);
-        int made = x.definitions();
-        due("some hundred thousand", true, made > 400_000 && made < 600_000);
-        x.apply(3);
-        due("no more", made, x.definitions());
-        due("sound", true, x.isSound());
-        for (int i = 4; i < 19; i++) {
-            due("composed", i, x.compose(2, 3));
-        }
-        defineInt(8, num(8));
-        defineInt(9, op(ref(8), '+', num(1)));
-        due("two more", made + 2, x.definitions());
-        due("nine", "9", value(9));
-        x.stage(8, type(), num(10));
-        x.update();
-        due("there is no room for another nine", 1, x.todo());
-        for (int name = 0; name < 26; name++) {
-            if (x.kindOf(name) != '-') {
-                x.unname(name);
-            }
-        }
-        due("much is dropped", true, x.collect() > 0);
-        defineInt(8, num(8));
-        defineInt(9, op(ref(8), '+', num(1)));
-        x.stage(8, type(), num(11));
-        due("sound", true, x.isSound());
     }
 }
