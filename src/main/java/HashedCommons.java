@@ -32,9 +32,6 @@ public final class HashedCommons {
     private static final int MOST_FRAMES = 600;
     /** No document limit: stands above the definitions for which there is room. */
     private static final int MOST_GROUPS = 4_000_000;
-    /** No document limit: what is worked out or told by types takes at most 300 times 200 cells. */
-    private static final int MOST_CELLS = 1 << 16;
-    private static final int FIRST_CELL = 1;
     private static final int NODE_BITS = 9;
     /** No document limit: terms are tested in at most 512 calls. */
     private static final int MOST_TESTED = 512;
@@ -46,6 +43,9 @@ public final class HashedCommons {
     private static final int MOST_PARTS = 3300;
     private static final int PART_BITS = 11;
     private static final int PART = 1 << PART_BITS;
+    /** No document limit: what is worked out or told by types takes at most 300 times 200 cells. */
+    private static final int CELL_PARTS = 1 << 16 - PART_BITS;
+    private static final int FIRST_CELL = 1;
     /** No document limit: the number of a definition has so many bits, that three stand in one long. */
     private static final int INDEX_BITS = 21;
     private static final int MOST_DEFINITIONS = (1 << INDEX_BITS) - 1;
@@ -94,7 +94,7 @@ public final class HashedCommons {
 
     public HashedCommons() {
         Row room = new Row(0, new Row[MOST_PARTS], new int[] {MOST_PARTS, 0});
-        long[] cells = new long[MOST_CELLS];
+        Row cells = new Row(CELL_PARTS, new Row[CELL_PARTS], new int[] {CELL_PARTS, 0});
         nodes = new Nodes();
         machines = new Machines(room);
         codebase = new Codebase(nodes, machines, room);
@@ -290,6 +290,7 @@ public final class HashedCommons {
             branches.move(codebase);
             patches.move();
             codebase.dropUnmarked();
+            machines.arrange(codebase);
         }
         return dropped;
     }
@@ -748,10 +749,6 @@ public final class HashedCommons {
         return (int) cell;
     }
 
-    private static long cellIn(long[] cells, int ref) {
-        return ref >= 0 && ref < cells.length ? cells[ref] : 0;
-    }
-
     /** The nodes that were told, each with its depth, its weight and the names that stand in it. */
     private static final class Nodes {
         private final char[] kinds = new char[MOST_NODES];
@@ -983,11 +980,18 @@ public final class HashedCommons {
         /** Answers false, and puts nothing, if no part is left for it. */
         boolean put(int index, long number) {
             int part = index >> PART_BITS;
-            if (parts == null || part < 0 || part >= parts.length) {
+            if (parts == null || left == null || left.length <= SPARE || part < 0 || part >= parts.length) {
                 return false;
             }
-            if (parts[part] == null) {
-                parts[part] = take();
+            int last = left[SPARE] - 1;
+            if (parts[part] == null && spare != null && last >= 0 && last < spare.length) {
+                parts[part] = spare[last];
+                spare[last] = null;
+                left[SPARE] = last;
+            }
+            if (parts[part] == null && left[UNMADE] > 0) {
+                parts[part] = new Row();
+                left[UNMADE]--;
             }
             long[] there = parts[part] == null ? null : parts[part].numbers;
             if (there == null) {
@@ -995,25 +999,6 @@ public final class HashedCommons {
             }
             there[index & PART - 1] = number;
             return true;
-        }
-
-        private Row take() {
-            if (spare == null || left == null || left.length <= SPARE) {
-                return null;
-            }
-            int last = left[SPARE] - 1;
-            if (last >= 0 && last < spare.length && spare[last] != null) {
-                Row part = spare[last];
-                spare[last] = null;
-                left[SPARE] = last;
-                part.takeOwnBits(-1L);
-                return part;
-            }
-            if (left[UNMADE] <= 0) {
-                return null;
-            }
-            left[UNMADE]--;
-            return new Row();
         }
 
         /** Takes bits out of all numbers. */
@@ -1031,7 +1016,7 @@ public final class HashedCommons {
             }
         }
 
-        /** Gives back the parts that stand behind the first numbers. */
+        /** Gives back the parts that stand behind the first numbers, emptied. */
         void cut(int length) {
             int first = Math.max(length, 0) + PART - 1 >> PART_BITS;
             for (int part = first; parts != null && part < parts.length; part++) {
@@ -1045,6 +1030,7 @@ public final class HashedCommons {
             }
             int to = left[SPARE];
             if (to >= 0 && to < spare.length) {
+                parts[part].takeOwnBits(-1L);
                 spare[to] = parts[part];
                 parts[part] = null;
                 left[SPARE]++;
@@ -1136,30 +1122,37 @@ public final class HashedCommons {
             return definition < 0 ? NONE : (int) (bodies.at(definition) >> TERM_SHIFT) & TERM;
         }
 
+        /** The names of data that stand in a definition, a bit for each; they are the first ones. */
         int dataNames(int definition) {
-            return nodes.dataNamesAt(typeNode(definition)) | nodes.dataNamesAt(termNode(definition));
+            long says = bodies.at(definition);
+            int inType = (says & DATA) != 0 ? 0 : nodes.dataNamesAt((int) (says >> TYPE_SHIFT) & TYPE);
+            return inType | nodes.dataNamesAt((int) (says >> TERM_SHIFT) & TERM);
         }
 
         int termNames(int definition) {
-            return nodes.termNamesAt(termNode(definition));
+            return nodes.termNamesAt((int) (bodies.at(definition) >> TERM_SHIFT) & TERM);
+        }
+
+        /** Which one of the names in a definition a name of data or of a term is, NONE if it is not in it. */
+        int slotOf(int definition, int name, boolean isTerm) {
+            long says = bodies.at(definition);
+            int term = (int) (says >> TERM_SHIFT) & TERM;
+            int inType = (says & DATA) != 0 ? 0 : nodes.dataNamesAt((int) (says >> TYPE_SHIFT) & TYPE);
+            int data = inType | nodes.dataNamesAt(term);
+            int names = isTerm ? nodes.termNamesAt(term) : data;
+            if (definition < 0 || !isName(name) || (names >> name & 1) == 0) {
+                return NONE;
+            }
+            return Integer.bitCount(names & (1 << name) - 1) + (isTerm ? Integer.bitCount(data) : 0);
         }
 
         /** What a name of data means in a definition, NONE if it is not in it. */
         int dataAt(int definition, int name) {
-            int data = dataNames(definition);
-            if (!isName(name) || (data >> name & 1) == 0) {
-                return NONE;
-            }
-            return meaning(definition, Integer.bitCount(data & (1 << name) - 1));
+            return meaning(definition, slotOf(definition, name, false));
         }
 
         int termAt(int definition, int name) {
-            int terms = termNames(definition);
-            if (!isName(name) || (terms >> name & 1) == 0) {
-                return NONE;
-            }
-            int behind = Integer.bitCount(dataNames(definition));
-            return meaning(definition, behind + Integer.bitCount(terms & (1 << name) - 1));
+            return meaning(definition, slotOf(definition, name, true));
         }
 
         int meaningCount(int definition) {
@@ -1171,6 +1164,9 @@ public final class HashedCommons {
         }
 
         int meaning(int definition, int slot) {
+            if (slot < 0) {
+                return NONE;
+            }
             if (definition < DRAFTS) {
                 int at = definition * MEANINGS + slot;
                 return at >= 0 && at < draftMeanings.length ? draftMeanings[at] : NONE;
@@ -1227,7 +1223,7 @@ public final class HashedCommons {
 
         /** The hash, or the one that was found anew last. */
         long hashOf(int definition, boolean isAnew) {
-            return isAnew && hasSign(definition, DIFFERS) ? anews.at(definition) : hashes.at(definition);
+            return isAnew && (links.at(definition) & DIFFERS) != 0 ? anews.at(definition) : hashes.at(definition);
         }
 
         /** Of what is found anew only that is noted which differs. */
@@ -1261,7 +1257,8 @@ public final class HashedCommons {
             int head = headOf(hashes.at(row));
             long three = heads.at(head / 3);
             int shift = head % 3 * INDEX_BITS;
-            setNext(row, indexIn(three, head % 3));
+            int next = Math.max(indexIn(three, head % 3), 0);
+            links.put(row, links.at(row) & ~INDEX | next);
             heads.put(head / 3, three & ~(INDEX << shift) | (long) row << shift);
         }
 
@@ -1420,7 +1417,6 @@ public final class HashedCommons {
                 headCount *= 2;
             }
             linkAnew();
-            machines.arrange(this);
         }
 
         private int moveBodies() {
@@ -1493,7 +1489,9 @@ public final class HashedCommons {
         }
 
         void mark(int definition) {
-            setSign(definition, MARK);
+            if (definition >= DRAFTS && definition < end) {
+                links.put(definition, links.at(definition) | MARK);
+            }
         }
 
         boolean isMarked(int definition) {
@@ -1621,8 +1619,10 @@ public final class HashedCommons {
         }
 
         void setResolved(int definition, int to) {
-            setBecame(definition, to);
-            setSign(definition, RESOLVED);
+            if (definition >= DRAFTS && definition < end) {
+                long link = links.at(definition) & ~(INDEX << INDEX_BITS) | RESOLVED;
+                links.put(definition, link | (to < 0 ? 0L : to) << INDEX_BITS);
+            }
         }
 
         void forgetResolved() {
@@ -2037,7 +2037,7 @@ public final class HashedCommons {
                     long from = typeRow(mix(row, 2), nodes.aAt(node), in, depth + 1);
                     return typeRow(from, nodes.bAt(node), in, depth + 1);
                 case 'd':
-                    int data = codebase.dataAt(in, nodes.aAt(node));
+                    int data = codebase.meaning(in, codebase.slotOf(in, nodes.aAt(node), false));
                     return data == in ? mix(row, 4) : mix(mix(row, 3), codebase.hashOf(data, isAnew));
                 default:
                     return mix(row, 1);
@@ -2111,11 +2111,11 @@ public final class HashedCommons {
     private static final class Checker {
         private final Nodes nodes;
         private final Codebase codebase;
-        private final long[] cells;
+        private final Row cells;
         private final long[] bound = new long[DEEPEST];
         private int used;
 
-        Checker(Nodes nodes, Codebase codebase, long[] cells) {
+        Checker(Nodes nodes, Codebase codebase, Row cells) {
             this.nodes = nodes;
             this.codebase = codebase;
             this.cells = cells;
@@ -2147,21 +2147,19 @@ public final class HashedCommons {
 
         /** What it is from and what it is to stand behind one another. */
         private long functionType(long from, long to) {
-            if (from == 0 || to == 0 || used < 0 || used + 1 >= cells.length) {
+            if (from == 0 || to == 0 || !cells.put(used, from) || !cells.put(used + 1, to)) {
                 return 0;
             }
-            cells[used] = from;
-            cells[used + 1] = to;
             used += 2;
             return cell('>', used - 2, 0);
         }
 
         private long fromOf(long function) {
-            return cellIn(cells, refOf(function));
+            return cells.at(refOf(function));
         }
 
         private long toOf(long function) {
-            return cellIn(cells, refOf(function) + 1);
+            return cells.at(refOf(function) + 1);
         }
 
         /** What a function is to can be a long chain, so only what it is from is a recursion. */
@@ -3070,7 +3068,7 @@ public final class HashedCommons {
         private final int[] frameDefinitions = new int[MOST_FRAMES];
         private final int[] frameScopes = new int[MOST_FRAMES];
         private final long[] frameHeld = new long[MOST_FRAMES];
-        private final long[] cells;
+        private final Row cells;
         private int used;
         private long answer;
         private int frames;
@@ -3078,7 +3076,7 @@ public final class HashedCommons {
         private int underWay;
         private boolean isStopped;
 
-        Worker(Nodes nodes, Codebase codebase, long[] cells) {
+        Worker(Nodes nodes, Codebase codebase, Row cells) {
             this.nodes = nodes;
             this.codebase = codebase;
             this.cells = cells;
@@ -3145,11 +3143,10 @@ public final class HashedCommons {
 
         /** Answers where a number stands then, 0 if there is no place for it. */
         private int keep(long number) {
-            if (used < 0 || used >= cells.length) {
+            if (!cells.put(used, number)) {
                 isStopped = true;
                 return 0;
             }
-            cells[used] = number;
             used++;
             return used - 1;
         }
@@ -3205,9 +3202,9 @@ public final class HashedCommons {
         private long lookUp(int scope, int variable) {
             int at = scope;
             for (int i = 0; i < variable && at != 0; i++) {
-                at = (int) cellIn(cells, at + 1);
+                at = (int) cells.at(at + 1);
             }
-            return at == 0 ? 0 : cellIn(cells, at);
+            return at == 0 ? 0 : cells.at(at);
         }
 
         private void advanceApplication(int top, int node) {
@@ -3317,7 +3314,7 @@ public final class HashedCommons {
                 branch = nodes.bAt(branch);
             }
             int held = refOf(answer);
-            int scope = held == 0 ? frameScopes[top] : bind(cellIn(cells, held), frameScopes[top]);
+            int scope = held == 0 ? frameScopes[top] : bind(cells.at(held), frameScopes[top]);
             turnInto(top, nodes.aAt(branch), scope);
         }
     }
@@ -3326,11 +3323,11 @@ public final class HashedCommons {
         private final Nodes nodes;
         private final Codebase codebase;
         private final Branches branches;
-        private final long[] cells;
+        private final Row cells;
         private final char[] line = new char[LINE];
         private int length;
 
-        Writer(Nodes nodes, Codebase codebase, Branches branches, long[] cells) {
+        Writer(Nodes nodes, Codebase codebase, Branches branches, Row cells) {
             this.nodes = nodes;
             this.codebase = codebase;
             this.branches = branches;
@@ -3394,7 +3391,7 @@ public final class HashedCommons {
             long at = value;
             for (int i = 0; i < LINE && signOf(at) == 'c'; i++) {
                 constructor(numberOf(at));
-                at = cellIn(cells, refOf(at));
+                at = cells.at(refOf(at));
                 if (at != 0) {
                     put('(');
                     open++;
