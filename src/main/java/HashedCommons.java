@@ -1723,6 +1723,8 @@ public final class HashedCommons {
      */
     private static final class Machines {
         private static final int MASKS = 21;
+        /** What has an int as its count is halved so often at most. */
+        private static final int MOST_HALVINGS = 32;
 
         private final Row hashes;
         private final Row masks;
@@ -1760,7 +1762,7 @@ public final class HashedCommons {
         int maskOf(long hash) {
             int low = 0;
             int high = count - 1;
-            while (low <= high) {
+            for (int i = 0; i < MOST_HALVINGS && low <= high; i++) {
                 int middle = low + high >>> 1;
                 long there = hashes.at(middle);
                 if (there == hash) {
@@ -1832,7 +1834,8 @@ public final class HashedCommons {
 
         private void sink(int start, int behind) {
             int at = start;
-            for (int child = 2 * at + 1; child < behind; child = 2 * at + 1) {
+            for (int i = 0; i < MOST_HALVINGS && 2 * at + 1 < behind; i++) {
+                int child = 2 * at + 1;
                 if (child + 1 < behind && hashes.at(child) < hashes.at(child + 1)) {
                     child++;
                 }
