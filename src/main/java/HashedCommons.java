@@ -1346,7 +1346,6 @@ public final class HashedCommons {
             long hash = hashes.at(draft);
             end++;
             hashes.put(row, hash);
-            bodies.put(row, bodies.at(draft));
             links.put(row, (long) machines.maskOf(hash) << MACHINE_SHIFT | (isStart ? START : 0));
             link(row);
             return row;
@@ -1623,10 +1622,6 @@ public final class HashedCommons {
                 long link = links.at(definition) & ~(INDEX << INDEX_BITS) | RESOLVED;
                 links.put(definition, link | (to < 0 ? 0L : to) << INDEX_BITS);
             }
-        }
-
-        void forgetResolved() {
-            takeSigns(RESOLVED);
         }
 
         void forgetChanges() {
@@ -2839,7 +2834,6 @@ public final class HashedCommons {
                     follow(from(i));
                 }
             }
-            codebase.forgetResolved();
         }
 
         /**

@@ -6,33 +6,61 @@ public final class LittleRoom extends Check {
     private static final int LEVELS = 4;
     private static final int ROUNDS = 22;
     private static final int FULL = 9;
-    private static final int OLD = 26 - LEVELS;
+    private static final int OTHER = 16;
+
+    /** How many further names there are in what is carried along. */
+    private int others;
+    private HashedCommons told;
+    private final int[] terms = new int[LEVELS + 1];
+    private int anInt;
+    private int change;
 
     public static void main(String[] args) {
         LittleRoom test = new LittleRoom();
         test.grows();
         test.givesBack();
-        test.givesBackAgain();
+        test.givesBackAgain("room again and again");
+        test.others = 2;
+        test.givesBackAgain("room again and again, with three names in each");
+        test.others = 0;
         test.keepsPatches();
         test.keepsForMachines();
         end();
     }
 
-    private int sum(int name) {
-        return op(ref(name), '+', num(0));
+    private int sum(int name, int number) {
+        int sum = op(ref(name), '+', num(number));
+        return others == 0 ? sum : op(op(sum, '+', ref(OTHER)), '+', ref(OTHER + 1));
+    }
+
+    /** The nodes are told once for each object. */
+    private void tell() {
+        if (told == x) {
+            return;
+        }
+        told = x;
+        anInt = type();
+        for (int level = 0; level < LEVELS; level++) {
+            terms[level] = sum(11 + level, 0);
+        }
+        terms[LEVELS] = num(5);
+        change = sum(A, 7);
     }
 
     /** Each patch makes the chain of a as many times as long, the last one as often as it is applied. */
     private void raise(int last) {
-        for (int level = 0; level < LEVELS; level++) {
-            x.stage(10 + level, type(), sum(11 + level));
+        tell();
+        for (int level = 0; level <= LEVELS; level++) {
+            x.stage(10 + level, anInt, terms[level]);
         }
-        x.stage(10 + LEVELS, type(), num(5));
+        for (int i = 0; i < others; i++) {
+            x.stage(OTHER + i, anInt, terms[LEVELS]);
+        }
         x.define();
         x.alias(10, A);
         for (int level = 0; level < LEVELS; level++) {
             x.alias(10 + level, 25 - level);
-            x.stage(10 + level, type(), op(ref(A), '+', num(7)));
+            x.stage(10 + level, anInt, change);
             x.update();
             x.alias(10 + level, A);
             apply(level, level == LEVELS - 1 ? last : ROUNDS);
@@ -98,8 +126,8 @@ public final class LittleRoom extends Check {
     }
 
     /** What is made and dropped and made again has the room that it had. */
-    private void givesBackAgain() {
-        begin("room again and again");
+    private void givesBackAgain(String what) {
+        begin(what);
         raise(FULL);
         int made = x.definitions();
         int needed = x.needed(A);

@@ -9,6 +9,7 @@ public final class PatchesTest extends Check {
         test.promise23ToDo();
         test.promise24();
         test.promise25();
+        test.patchesAfterCollecting();
         end();
     }
 
@@ -317,5 +318,41 @@ public final class PatchesTest extends Check {
         due("the other way, too", 1, x.mergePatches(1, 0));
         due("with itself", 0, x.mergePatches(1, 1));
         due("two", 2, x.patchSize(4));
+    }
+
+    /** What patches keep is not dropped, and is the same when others are. */
+    private void patchesAfterCollecting() {
+        begin("patches after collecting");
+        for (int name = 0; name < 6; name++) {
+            defineInt(name, num(name));
+        }
+        x.stage(2, type(), num(12));
+        due("the first one", 0, x.update());
+        x.unname(0);
+        x.stage(4, type(), num(14));
+        x.update();
+        x.unname(1);
+        due("composed", 2, x.compose(0, 1));
+        due("merged", 0, x.mergePatches(1, 0));
+        due("two are dropped", 2, x.collect());
+        due("six are left", 6, x.definitions());
+        for (int patch = 0; patch < 4; patch++) {
+            x.goTo(0);
+            x.unname(2);
+            x.unname(4);
+            defineInt(2, num(2));
+            defineInt(4, num(4));
+            due("names by " + patch, patch < 2 ? 1 : 2, x.apply(patch));
+            due("two by " + patch, patch == 1 ? "2" : "12", value(2));
+            due("four by " + patch, patch == 0 ? "4" : "14", value(4));
+            due("size of " + patch, patch < 2 ? 1 : 2, x.patchSize(patch));
+            due("three", "3", value(3));
+            due("none is dropped", 0, x.collect());
+        }
+        x.unname(3);
+        due("three is dropped", 1, x.collect());
+        due("no conflict", 0, x.mergePatches(2, 3));
+        due("the same", 2, x.patchSize(4));
+        due("sound", true, x.isSound());
     }
 }
