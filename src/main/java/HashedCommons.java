@@ -2296,6 +2296,7 @@ public final class HashedCommons {
             return branch < 0 && constructor < 0 ? common : 0;
         }
     }
+
     /** The names of each branch, and what the commits keep of them. */
     private static final class Branches {
         private final int[] names = new int[MOST_BRANCHES * NAMES];
@@ -2720,7 +2721,6 @@ public final class HashedCommons {
         }
     }
 
-
     /**
      * The patches: each pair of what is kept and what it becomes stands here once, with a sign for each
      * patch in which it is, so that patches that are made of others take no room but for pairs of their own.
@@ -2922,6 +2922,7 @@ public final class HashedCommons {
             return conflicts;
         }
     }
+
     /** Carries changes along to what needs them, and keeps the names that are to do. */
     private static final class Carrier {
         private final Groups groups;
@@ -3315,6 +3316,7 @@ public final class HashedCommons {
             turnInto(top, nodes.aAt(branch), scope);
         }
     }
+
     /** Writes the line. */
     private static final class Writer {
         private final Nodes nodes;

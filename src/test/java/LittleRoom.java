@@ -23,6 +23,7 @@ public final class LittleRoom extends Check {
         test.others = 2;
         test.givesBackAgain("room again and again, with three names in each");
         test.others = 0;
+        test.givesToOthers();
         test.keepsPatches();
         test.keepsForMachines();
         end();
@@ -49,6 +50,10 @@ public final class LittleRoom extends Check {
 
     /** Each patch makes the chain of a as many times as long, the last one as often as it is applied. */
     private void raise(int last) {
+        raise(ROUNDS, last);
+    }
+
+    private void raise(int rounds, int last) {
         tell();
         for (int level = 0; level <= LEVELS; level++) {
             x.stage(10 + level, anInt, terms[level]);
@@ -63,7 +68,7 @@ public final class LittleRoom extends Check {
             x.stage(10 + level, anInt, change);
             x.update();
             x.alias(10 + level, A);
-            apply(level, level == LEVELS - 1 ? last : ROUNDS);
+            apply(x.patches() - 1, level == LEVELS - 1 ? last : rounds);
         }
     }
 
@@ -147,6 +152,32 @@ public final class LittleRoom extends Check {
         }
         due("sound", true, x.isSound());
         due("many", true, dropped > 100_000);
+    }
+
+    /** What rows of one kind give back others can take: definitions with three names have a row more. */
+    private void givesToOthers() {
+        begin("room for one name");
+        int one = fill(0);
+        begin("room for three names");
+        int three = fill(2);
+        due("less", true, three < one * 5 / 6);
+        due("one name after three", true, fill(0) > one - 8000);
+        due("three names after one", true, fill(2) > three - 4000);
+        due("sound", true, x.isSound());
+        others = 0;
+    }
+
+    /** Drops what is there, and makes as many as there is room for; answers how many. */
+    private int fill(int others) {
+        this.others = others;
+        told = null;
+        unnameAll();
+        x.collect();
+        raise(14, 55);
+        int made = x.definitions();
+        x.apply(x.patches() - 1);
+        due("no more with " + others, made, x.definitions());
+        return made;
     }
 
     /** A patch takes room for those pairs alone that are in no other one. */
