@@ -6,6 +6,7 @@ public final class CollisionsTest extends Check {
     public static void main(String[] args) {
         CollisionsTest test = new CollisionsTest();
         test.memberIsThere();
+        test.notSoundAtFirst();
         test.memberIsCarried();
         test.memberComesFirst();
         test.droppedIsGone();
@@ -61,6 +62,36 @@ public final class CollisionsTest extends Check {
         due("collected", 1, x.collect());
         due("left", 2, x.definitions());
         due("sound again", true, x.isSound());
+    }
+
+    /** That it is not sound is found without a look at its hash ahead of that. */
+    private void notSoundAtFirst() {
+        begin("not sound at first");
+        defineInt(C, there());
+        due("sound", true, x.isSound());
+        stageGroupWithMemberThere();
+        due("new ones", 1, x.define());
+        due("a has not the hash of its row any more", false, x.isSound());
+        x.unname(A);
+        due("dropped", 1, x.collect());
+        due("sound", true, x.isSound());
+        begin("no type at first");
+        defineFunction(A, fn(type(), var(0)));
+        x.stage(B, type(), op(num(20995957), '-', num(-1866922843)));
+        due("it is there", 0, x.define());
+        due("sound", true, x.isSound());
+        x.stage(D, type(), num(20995957));
+        x.define();
+        due("sound", true, x.isSound());
+        begin("a type that is lost");
+        x.stage(A, intToInt(), fn(type(), var(0)));
+        x.stage(B, type(), op(num(20995957), '-', num(-1866922843)));
+        x.stage(C, type(), op(ref(B), '+', num(1)));
+        due("a or b, and c", 2, x.define());
+        due("c has not its type", false, x.isSound());
+        x.unname(C);
+        x.collect();
+        due("sound", true, x.isSound());
     }
 
     private void memberIsCarried() {
