@@ -35,7 +35,7 @@ public final class RunEdgesTest extends Check {
         test.hashesInCommits();
         test.operatorsGoRound();
         test.choices();
-        test.leftToRight();
+        test.valuesAsTheyAre();
         test.namesBegun();
         test.applicationsBegun();
         test.namesUnderWay();
@@ -631,7 +631,7 @@ public final class RunEdgesTest extends Check {
         due("the first one is", 'l', x.work(D));
     }
 
-    private void leftToRight() {
+    private void valuesAsTheyAre() {
         begin("functions and constructors are values, whose insides are not worked out further");
         x.stage(A, type(), ref(A));
         x.stage(B, arrow(type(), type()), fn(type(), ref(A)));
