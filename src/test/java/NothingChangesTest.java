@@ -12,7 +12,8 @@ import java.util.TreeMap;
 
 /**
  * "A method that throws an exception changes nothing": two commons get the same calls, which chance makes up (fixed
- * seeds), but the second one not those that the first one refuses. Whatever is asked later, they answer alike.
+ * seeds), but the second one not those that the first one refuses. Whatever is asked later, they answer alike. What is
+ * thrown is one of the exceptions that the document tells for the method, whatever the operands are.
  */
 public final class NothingChangesTest {
     private static final int RUNS = 150;
@@ -46,6 +47,8 @@ public final class NothingChangesTest {
     /** Methods that are called often in this run, so that it comes to its limits. */
     private final List<String> often = new ArrayList<>();
     private int nodes;
+    /** Whether operands can be any ints in this run. */
+    private boolean isWild;
     private boolean isWrong;
 
     private NothingChangesTest(long seed) {
@@ -77,6 +80,9 @@ public final class NothingChangesTest {
         Object first = answer(one, name, operands);
         log.add(name + Arrays.toString(operands) + " -> " + first);
         if (first instanceof Class) {
+            if (!Arrays.asList(METHODS.get(name).getExceptionTypes()).contains(first)) {
+                alike(name + " throws what is not told", first, null);
+            }
             REFUSED.merge(name + " " + ((Class<?>) first).getSimpleName(), 1, Integer::sum);
         } else {
             alike(name, first, answer(other, name, operands));
@@ -137,7 +143,16 @@ public final class NothingChangesTest {
         return random.nextInt(12) == 0 ? (random.nextBoolean() ? -1 : count) : random.nextInt(Math.max(count, 1));
     }
 
+    private static int anyInt(Random random) {
+        int[] edges = {Integer.MIN_VALUE, Integer.MAX_VALUE, -1, 0, 1 << random.nextInt(32), -(1 << random.nextInt(32))};
+        return random.nextInt(3) == 0 ? random.nextInt() : edges[random.nextInt(edges.length)];
+    }
+
     private Object operand(char what) {
+        if (isWild && random.nextInt(3) == 0) {
+            return what == 'K' ? (Object) (char) random.nextInt() : what == 'u' ? (Object) random.nextBoolean()
+                : (Object) anyInt(random);
+        }
         switch (what) {
             case 'K':
                 return "j>divfao?lrmcb+z".charAt(random.nextInt(16));
@@ -283,6 +298,7 @@ public final class NothingChangesTest {
             often.add(NAMES.get(random.nextInt(NAMES.size())));
         }
         often.addAll(List.of("stage", "stageData", "define", "update", "unstage"));
+        isWild = random.nextInt(6) == 0;
         tell();
         for (int i = 0; i < CALLS && !isWrong; i++) {
             if (random.nextInt(250) == 0) {
